@@ -914,7 +914,8 @@ public final class Twopassworks {
         if (found == NONE) {
             return FAULT_UNKNOWN;
         }
-        reckoner.push(image.factOfSymbol(found, 1), image.factOfSymbol(found, 2));
+        Name name = image.symbolAt(found);
+        reckoner.push(name.number, name.base);
         return 0;
     }
 
@@ -932,19 +933,26 @@ public final class Twopassworks {
         }
 
         void add(int number) {
-            if (count >= all.length) {
-                if (all.length >= MOST_ROOM) {
-                    return;
-                }
-                all = Arrays.copyOf(all, all.length * 2);
+            if (count >= all.length && count < MOST_ROOM) {
+                all = Arrays.copyOf(all, count * 2);
             }
-            all[count] = number;
-            count++;
+            if (count < all.length) {
+                all[count] = number;
+                count++;
+            }
         }
 
-        void set(int place, int number) {
-            if (place >= 0 && place < count) {
+        void insert(int place, int number) {
+            if (place < 0 || place > count) {
+                return;
+            }
+            if (count >= all.length && count < MOST_ROOM) {
+                all = Arrays.copyOf(all, count * 2);
+            }
+            if (count < all.length) {
+                System.arraycopy(all, place, all, place + 1, count - place);
                 all[place] = number;
+                count++;
             }
         }
 
@@ -957,7 +965,7 @@ public final class Twopassworks {
 
     /** A text that can be changed. */
     private static final class Text {
-        private char[] signs = new char[32];
+        private byte[] signs = new byte[32];
         private int count;
 
         int size() {
@@ -974,9 +982,11 @@ public final class Twopassworks {
         }
 
         void add(char sign) {
-            makeRoom(1);
+            if (count >= signs.length && count < MOST_ROOM) {
+                signs = Arrays.copyOf(signs, count * 2);
+            }
             if (count < signs.length) {
-                signs[count] = sign;
+                signs[count] = (byte) sign;
                 count++;
             }
         }
@@ -988,11 +998,14 @@ public final class Twopassworks {
         }
 
         void addPiece(Text other, int from, int size) {
-            makeRoom(size);
-            if (from >= 0 && size > 0 && from + size <= other.count && count + size <= signs.length) {
-                System.arraycopy(other.signs, from, signs, count, size);
-                count += size;
+            if (from < 0 || size <= 0 || size > other.count - from || size > MOST_ROOM - count) {
+                return;
             }
+            if (count + size > signs.length) {
+                signs = Arrays.copyOf(signs, (count + size) * 2);
+            }
+            System.arraycopy(other.signs, from, signs, count, size);
+            count += size;
         }
 
         void addNumber(int number) {
@@ -1014,11 +1027,11 @@ public final class Twopassworks {
         }
 
         void insert(int place, char sign) {
-            makeRoom(1);
-            if (place >= 0 && place <= count && count < signs.length) {
-                System.arraycopy(signs, place, signs, place + 1, count - place);
-                signs[place] = sign;
-                count++;
+            int last = count;
+            add(sign);
+            if (place >= 0 && place < last && count > last) {
+                System.arraycopy(signs, place, signs, place + 1, last - place);
+                signs[place] = (byte) sign;
             }
         }
 
@@ -1026,7 +1039,7 @@ public final class Twopassworks {
             if (place < 0 || place >= count) {
                 return 0;
             }
-            char sign = signs[place];
+            int sign = signs[place];
             System.arraycopy(signs, place + 1, signs, place, count - place - 1);
             count--;
             return sign;
@@ -1038,16 +1051,16 @@ public final class Twopassworks {
         }
 
         boolean same(Text other) {
-            if (count != other.count) {
-                return false;
-            }
-            return samePiece(0, other, 0, count);
+            return count == other.count && samePiece(0, other, 0, count);
         }
 
         /** Whether so many signs from a place on are those of another text from a place on. */
         boolean samePiece(int from, Text other, int otherFrom, int size) {
+            if (from < 0 || otherFrom < 0 || size > count - from || size > other.count - otherFrom) {
+                return false;
+            }
             for (int i = 0; i < size; i++) {
-                if (at(from + i) != other.at(otherFrom + i)) {
+                if (signs[from + i] != other.signs[otherFrom + i]) {
                     return false;
                 }
             }
@@ -1056,17 +1069,10 @@ public final class Twopassworks {
 
         String told() {
             char[] exact = new char[count];
-            System.arraycopy(signs, 0, exact, 0, count);
-            return new String(exact);
-        }
-
-        private void makeRoom(int more) {
-            if (more <= 0 || more > MOST_ROOM || count + more <= signs.length || count + more > MOST_ROOM) {
-                return;
+            for (int i = 0; i < count; i++) {
+                exact[i] = (char) signs[i];
             }
-            char[] wider = new char[Math.max(count + more, signs.length * 2)];
-            System.arraycopy(signs, 0, wider, 0, count);
-            signs = wider;
+            return new String(exact);
         }
     }
 
@@ -1111,17 +1117,19 @@ public final class Twopassworks {
         }
     }
 
-    /** A row of TOKENS: a stretch among all TOKENS, and the number of its line. */
+    /** A row of TOKENS: where it stands among all TOKENS, the number of its line, the word that its ORDER WORD is. */
     private static final class Row {
         private int start;
         private int count;
         private int line;
+        private int word;
     }
 
     /** All TOKENS of one source, each a number (8 * what it says + its kind), and the NAMES in them. */
     private static final class Tokens {
         private static final int SLOTS = 128;
-        private final Ints all = new Ints();
+        private int[] all = new int[256];
+        private int count;
         private final ArrayList<Name> names = new ArrayList<Name>();
         private int nameCount;
         private final Name nobody = new Name();
@@ -1132,7 +1140,6 @@ public final class Twopassworks {
         private int illColumn;
 
         void restart() {
-            all.cutTo(0);
             nameCount = 0;
             letters.wipe();
             Arrays.fill(heads, NONE);
@@ -1140,40 +1147,44 @@ public final class Twopassworks {
             scrap.wipe();
             scrap.addAll(WORDS);
             read(scrap);
-            all.cutTo(0);
+            count = 0;
         }
 
         int size() {
-            return all.size();
+            return count;
         }
 
         void cutTo(int size) {
-            all.cutTo(size);
+            count = Math.max(0, Math.min(count, size));
         }
 
         boolean isFull() {
-            return all.size() >= MOST_ROOM || letters.size() >= MOST_ROOM / 2;
+            return count >= MOST_ROOM || letters.size() >= MOST_ROOM / 2;
         }
 
         /** Puts the TOKENS of a text behind the others; answers how many, or minus the code of the fault. */
         int read(Text text) {
-            int first = all.size();
+            int first = count;
             int at = 0;
             while (at < text.size()) {
                 if (text.at(at) == ' ') {
                     at++;
                     continue;
                 }
+                if (text.at(at) == ';') {
+                    readRemark(text, at + 1);
+                    break;
+                }
                 illCode = FAULT_SIGN;
                 int end = readOne(text, at);
                 if (end <= at) {
                     illColumn = at;
-                    all.cutTo(first);
+                    count = first;
                     return -illCode;
                 }
                 at = end;
             }
-            return all.size() - first;
+            return count - first;
         }
 
         int illColumn() {
@@ -1202,10 +1213,6 @@ public final class Twopassworks {
             }
             if (isDigit(sign)) {
                 return readNumber(text, at, 10);
-            }
-            if (sign == ';') {
-                readRemark(text, at + 1);
-                return text.size();
             }
             if (SIGNS.indexOf((char) sign) >= 0) {
                 add(SIGN, sign);
@@ -1257,7 +1264,7 @@ public final class Twopassworks {
         }
 
         private static int digitOf(int sign, int base) {
-            if (isDigit(sign)) {
+            if (sign >= '0' && sign <= '9') {
                 return sign - '0';
             }
             return base == 16 && sign >= 'a' && sign <= 'f' ? sign - 'a' + 10 : NONE;
@@ -1272,13 +1279,19 @@ public final class Twopassworks {
         }
 
         void add(int kind, int worth) {
-            all.add(worth * 8 + kind);
+            if (count >= all.length && count < MOST_ROOM) {
+                all = Arrays.copyOf(all, count * 2);
+            }
+            if (count < all.length) {
+                all[count] = worth * 8 + kind;
+                count++;
+            }
         }
 
         /** Puts TOKENS that stand somewhere behind the others once more. */
         void addAgain(int from, int to) {
-            for (int i = from; i < to; i++) {
-                all.add(all.at(i));
+            for (int i = Math.max(from, 0); i < to && i < count; i++) {
+                add(all[i] & 7, all[i] >> 3);
             }
         }
 
@@ -1297,21 +1310,14 @@ public final class Twopassworks {
                 }
                 found = name.next;
             }
-            Name name = nextName();
-            name.begin(letters.size(), to - from, heads[slot]);
+            if (nameCount >= names.size()) {
+                names.add(new Name());
+            }
+            names.get(nameCount).begin(letters.size(), to - from, heads[slot]);
             letters.addPiece(text, from, to - from);
             heads[slot] = nameCount;
             nameCount++;
             return nameCount - 1;
-        }
-
-        private Name nextName() {
-            if (nameCount < names.size()) {
-                return names.get(nameCount);
-            }
-            Name name = new Name();
-            names.add(name);
-            return name;
         }
 
         /** The number of the NAME x_k that a LOCAL @x becomes. */
@@ -1344,22 +1350,29 @@ public final class Twopassworks {
             return name.size < other.size;
         }
 
+        /** 8 * what a TOKEN says + its kind, 0 where the row has none. */
+        int tokenAt(Row row, int place) {
+            int at = row.start + place;
+            return place >= 0 && place < row.count && at >= 0 && at < count ? all[at] : 0;
+        }
+
         /** The kind of a TOKEN, 0 where the row has none. */
         int kindAt(Row row, int place) {
-            return place >= 0 && place < row.count ? all.at(row.start + place) & 7 : 0;
+            return tokenAt(row, place) & 7;
         }
 
         /** What a TOKEN says: a NUMBER that number, a SIGN its code, a PARAMETER which, else the number of a NAME. */
         int worthAt(Row row, int place) {
-            return place >= 0 && place < row.count ? all.at(row.start + place) >> 3 : 0;
+            return tokenAt(row, place) >> 3;
         }
 
         boolean isSign(Row row, int place, char sign) {
-            return kindAt(row, place) == SIGN && worthAt(row, place) == sign;
+            return tokenAt(row, place) == sign * 8 + SIGN;
         }
 
         Name nameAt(Row row, int place) {
-            return kindAt(row, place) == NAME ? named(worthAt(row, place)) : nobody;
+            int token = tokenAt(row, place);
+            return (token & 7) == NAME ? named(token >> 3) : nobody;
         }
 
         /** The place of the first TOKEN of a kind, NONE without one. */
@@ -1374,25 +1387,25 @@ public final class Twopassworks {
 
         /** The place behind LABEL and ":", or the first one. */
         int orderPlace(Row row) {
-            int kind = kindAt(row, 0);
-            return (kind == NAME || kind == LOCAL || kind == PARAMETER) && isSign(row, 1, ':') ? 2 : 0;
+            int kind = tokenAt(row, 0) & 7;
+            boolean names = kind == NAME || kind == LOCAL || kind == PARAMETER;
+            return names && tokenAt(row, 1) == ':' * 8 + SIGN ? 2 : 0;
         }
 
         /** The number of the word that the NAME at a place is, 0 where it is none. */
         int wordAt(Row row, int place) {
-            if (kindAt(row, place) != NAME) {
-                return 0;
-            }
-            int name = worthAt(row, place);
-            return name < ELSE ? name + 1 : 0;
+            int token = tokenAt(row, place);
+            int name = token >> 3;
+            return (token & 7) == NAME && name < ELSE ? name + 1 : 0;
         }
 
         /** Each LOCAL of a row becomes the NAME that it is in an EXPANSION. */
         void nameLocals(Row row, int expansion) {
             for (int place = 0; place < row.count; place++) {
-                if (kindAt(row, place) == LOCAL) {
-                    int name = localName(worthAt(row, place), expansion);
-                    all.set(row.start + place, name * 8 + NAME);
+                int token = tokenAt(row, place);
+                int at = row.start + place;
+                if ((token & 7) == LOCAL && at >= 0 && at < count) {
+                    all[at] = localName(token >> 3, expansion) * 8 + NAME;
                 }
             }
         }
@@ -1465,7 +1478,7 @@ public final class Twopassworks {
     private static final class Reckoner {
         private static final int MOST_WAITING = 32;
         private final Tokens tokens;
-        // The EXPRESSION in the order in which it is reckoned: 2 * place in its row, and 1 more for a "-" before a FACTOR.
+        // In the order in which they are reckoned: 2 * place in the row, and 1 more for a "-" before a FACTOR.
         private final Ints steps = new Ints();
         private final int[] waiting = new int[MOST_WAITING];
         private int waitingCount;
@@ -1510,8 +1523,9 @@ public final class Twopassworks {
             int parens = 0;
             boolean wantsFactor = true;
             for (int place = from; place < row.count; place++) {
-                int kind = tokens.kindAt(row, place);
-                int sign = kind == SIGN ? tokens.worthAt(row, place) : 0;
+                int token = tokens.tokenAt(row, place);
+                int kind = token & 7;
+                int sign = kind == SIGN ? token >> 3 : 0;
                 if (wantsFactor) {
                     if (sign == '(' || sign == '-') {
                         if (inside >= MOST_INSIDE) {
@@ -1572,32 +1586,33 @@ public final class Twopassworks {
             }
         }
 
-        /** Reckons what was read last, by NUMBERS and KNOWN NAMES alone; answers whether there was no fault. */
-        boolean reckonKnown(Row row) {
-            return reckon(row, true, 0, NONE);
-        }
-
-        /** Reckons what was read last by the SYMBOLS, for a FLAT line at that OFFSET. */
-        boolean reckonFor(Row row, int offset, int part) {
-            return reckon(row, false, offset, part);
-        }
-
-        private boolean reckon(Row row, boolean known, int offset, int part) {
+        /**
+         * Reckons what was read last; answers whether there was no fault. It is reckoned by KNOWN NAMES alone, or by
+         * the SYMBOLS for a FLAT line at that OFFSET in that PART.
+         */
+        boolean reckon(Row row, boolean known, int offset, int part) {
             count = 0;
             for (int i = 0; i < steps.size(); i++) {
                 int place = steps.at(i) >> 1;
+                int token = tokens.tokenAt(row, place);
                 int code = 0;
                 if ((steps.at(i) & 1) != 0) {
                     code = negate();
-                } else if (tokens.kindAt(row, place) == NUMBER) {
-                    push(tokens.worthAt(row, place), NONE);
-                } else if (tokens.kindAt(row, place) == NAME) {
-                    code = pushName(tokens.nameAt(row, place), known);
-                } else if (!tokens.isSign(row, place, '.')) {
-                    code = join(tokens.worthAt(row, place));
-                } else if (known) {
-                    code = FAULT_KNOWN;
+                } else if ((token & 7) == NUMBER) {
+                    push(token >> 3, NONE);
+                } else if ((token & 7) == NAME) {
+                    Name name = tokens.named(token >> 3);
+                    if (known) {
+                        code = name.known == LET_KNOWN ? 0 : FAULT_KNOWN;
+                        push(name.told, NONE);
+                    } else {
+                        code = name.ready ? 0 : FAULT_UNKNOWN;
+                        push(name.number, name.base);
+                    }
+                } else if (token >> 3 != '.') {
+                    code = join(token >> 3);
                 } else {
+                    code = known ? FAULT_KNOWN : 0;
                     push(offset, part);
                 }
                 if (code != 0) {
@@ -1606,15 +1621,6 @@ public final class Twopassworks {
                 }
             }
             return true;
-        }
-
-        private int pushName(Name name, boolean known) {
-            if (known) {
-                push(name.told, NONE);
-                return name.known == LET_KNOWN ? 0 : FAULT_KNOWN;
-            }
-            push(name.number, name.base);
-            return name.ready ? 0 : FAULT_UNKNOWN;
         }
 
         void forget() {
@@ -1686,11 +1692,11 @@ public final class Twopassworks {
         private final int[] numbers = new int[MOST_EXPRESSIONS];
         private final int[] bases = new int[MOST_EXPRESSIONS];
 
-        void begin(Row itsRow, int itsExpansion, int itsPart, int itsWord) {
+        void begin(Row itsRow, int itsExpansion, int itsPart) {
             row = itsRow;
             expansion = itsExpansion;
             part = itsPart;
-            word = itsWord;
+            word = itsRow.word;
             label = null;
             operands = 0;
             expressions = 0;
@@ -1719,7 +1725,7 @@ public final class Twopassworks {
         }
     }
 
-    /** Rows that are being HANDLED one after the other: the SOURCE, or a BODY with the rounds that are still to begin. */
+    /** Rows that are being HANDLED one after the other: the SOURCE, or a BODY and the rounds still to begin. */
     private static final class Frame {
         private int next;
         private int end;
@@ -1740,7 +1746,7 @@ public final class Twopassworks {
         private int rowCount;
         private final ArrayList<Flat> flats = new ArrayList<Flat>();
         private int flatCount;
-        private final ArrayList<Frame> frames = new ArrayList<Frame>();
+        private final Frame[] frames = new Frame[MOST_BODIES + 1];
         private int depth;
         private int expansions;
         private int macros;
@@ -1755,6 +1761,10 @@ public final class Twopassworks {
         private int faultPlace;
         private final Row noRow = new Row();
         private final Flat noFlat = new Flat();
+
+        Expander() {
+            noFlat.begin(noRow, 0, 0);
+        }
 
         int faultCode() {
             return faultCode;
@@ -1790,15 +1800,9 @@ public final class Twopassworks {
         }
 
         void writeFlat(int at, Text to) {
-            to.wipe();
-            addFlatForm(at, to);
-        }
-
-        void addFlatForm(int at, Text to) {
             Row row = flatAt(at).row;
-            if (row != null) {
-                tokens.addForm(row, row.count, to);
-            }
+            to.wipe();
+            tokens.addForm(row, row.count, to);
         }
 
         void fail(int code, Row row, int place) {
@@ -1827,12 +1831,20 @@ public final class Twopassworks {
             part = 0;
             failAt(0, NONE, 0);
             for (int i = 0; i < count && i < lines.length && faultCode == 0; i++) {
-                loadLine(i == replaced ? other : lines[i], i);
+                Text text = i == replaced ? other : lines[i];
+                if (text != null) {
+                    addLine(tokens.read(text), i);
+                }
             }
-            Frame source = pushFrame();
-            source.end = rowCount;
+            Frame frame = pushFrame(noRow, 0);
+            if (frame != null) {
+                frame.end = rowCount;
+            }
             for (int step = 0; step < MOST_STEPS && depth > 0 && faultCode == 0; step++) {
-                Frame frame = frameAt(depth - 1);
+                frame = depth <= frames.length ? frames[depth - 1] : null;
+                if (frame == null) {
+                    return;
+                }
                 if (frame.next < frame.end) {
                     frame.next++;
                     handle(frame.next - 1, frame);
@@ -1844,17 +1856,13 @@ public final class Twopassworks {
             }
         }
 
-        private void loadLine(Text text, int line) {
-            if (text == null) {
-                return;
-            }
-            int start = tokens.size();
-            int count = tokens.read(text);
+        /** Makes a row of the TOKENS of a line that were read last. */
+        private void addLine(int count, int line) {
             if (count < 0) {
                 failAt(-count, line, tokens.illColumn());
                 return;
             }
-            Row row = addRow(start, count, line);
+            Row row = addRow(tokens.size() - count, count, line);
             // A REMARK is left out at once: it is the last TOKEN and moves no COLUMN ahead of it.
             if (tokens.kindAt(row, count - 1) == REMARK) {
                 row.count--;
@@ -1873,6 +1881,7 @@ public final class Twopassworks {
             row.start = start;
             row.count = count;
             row.line = line;
+            row.word = tokens.wordAt(row, tokens.orderPlace(row));
             return row;
         }
 
@@ -1880,33 +1889,23 @@ public final class Twopassworks {
             return at >= 0 && at < rowCount && at < rows.size() ? rows.get(at) : noRow;
         }
 
-        private Frame frameAt(int at) {
-            if (at >= 0 && at < frames.size()) {
-                return frames.get(at);
+        /** Takes a frame for the SOURCE, or for a BODY that a row asks for; answers null with a fault. */
+        private Frame pushFrame(Row row, int order) {
+            if (depth < 0 || depth >= frames.length) {
+                fail(FAULT_DEEP, row, order);
+                return null;
             }
-            Frame frame = new Frame();
-            frames.add(frame);
-            return frame;
-        }
-
-        private Frame pushFrame() {
-            Frame frame = frameAt(depth);
+            Frame frame = frames[depth];
+            if (frame == null) {
+                frame = new Frame();
+                frames[depth] = frame;
+            }
             depth++;
             frame.next = 0;
             frame.end = 0;
             frame.expansion = 0;
             frame.rounds = 0;
             frame.called = false;
-            return frame;
-        }
-
-        /** Takes a frame for a BODY that a row asks for; answers null with a fault. */
-        private Frame pushBody(Row row, int order) {
-            if (depth - 1 >= MOST_BODIES) {
-                fail(FAULT_DEEP, row, order);
-                return null;
-            }
-            Frame frame = pushFrame();
             frame.row = row;
             frame.order = order;
             return frame;
@@ -1916,7 +1915,7 @@ public final class Twopassworks {
         private void beginRound(Frame frame) {
             frame.rounds--;
             if (expansions >= MOST_EXPANSIONS) {
-                fail(FAULT_DEEP, frame.row == null ? noRow : frame.row, frame.order);
+                fail(FAULT_DEEP, frame.row, frame.order);
                 return;
             }
             expansions++;
@@ -1971,28 +1970,33 @@ public final class Twopassworks {
             int order = tokens.orderPlace(row);
             if (order >= row.count) {
                 if (order > 0) {
-                    addFlat(row, frame.expansion, 0, order);
+                    addFlat(row, order, frame.expansion);
                 }
                 return;
             }
             Name name = tokens.nameAt(row, order);
-            int word = tokens.wordAt(row, order);
             if (tokens.kindAt(row, order) != NAME) {
                 fail(FAULT_LINE, row, order);
-            } else if (word == 0 && name.bodyFrom == NONE) {
+            } else if (row.word == 0 && name.bodyFrom == NONE) {
                 fail(FAULT_ORDER, row, order);
-            } else if (labelStandsRight(row, order, word)) {
-                if (word == 0) {
-                    callMacro(row, order, name, frame);
-                } else if (operandsAreRight(row, order, word)) {
-                    obey(at, order, word, frame);
-                }
+            } else if (!labelStandsRight(row, order)) {
+                return;
+            } else if (row.word == 0) {
+                callMacro(row, order, name, frame);
+            } else if (expressionsOf(row.word) > 0 ? !expressionsAreRight(row, order) : !nameIsRight(row, order)) {
+                return;
+            } else if (hadToBeKnown(row.word) && !isKnownWithin(row, order)) {
+                return;
+            } else if (row.word <= WEAK) {
+                addOrder(row, order, frame.expansion);
+            } else {
+                openBlock(at, order, frame);
             }
         }
 
-        private boolean labelStandsRight(Row row, int order, int word) {
-            boolean may = word <= LET || word == MACRO;
-            boolean must = word == LET || word == MACRO;
+        private boolean labelStandsRight(Row row, int order) {
+            boolean must = row.word == LET || row.word == MACRO;
+            boolean may = must || row.word <= STOP;
             if (must && order == 0) {
                 fail(FAULT_LINE, row, order);
                 return false;
@@ -2004,43 +2008,44 @@ public final class Twopassworks {
             return true;
         }
 
-        private boolean operandsAreRight(Row row, int order, int word) {
-            int from = order + 1;
-            expressions = 0;
+        /** How many EXPRESSIONS may stand behind a word. */
+        private static int expressionsOf(int word) {
             switch (word) {
                 case BYTE:
                 case WORD:
-                    return expressionsAreRight(row, from, MOST_EXPRESSIONS);
-                case LOAD:
-                    return expressionsAreRight(row, tokens.isSign(row, from, '=') ? from + 1 : from, 1);
+                    return MOST_EXPRESSIONS;
+                case STOP:
                 case SHARE:
                 case WANT:
                 case WEAK:
-                    if (tokens.kindAt(row, from) != NAME) {
-                        fail(FAULT_LINE, row, from);
-                        return false;
-                    }
-                    return endsAt(row, from + 1);
-                case STOP:
                 case MACRO:
                 case END:
                 case ELSE:
-                    return endsAt(row, from);
+                    return 0;
                 default:
-                    return expressionsAreRight(row, from, 1);
+                    return 1;
             }
         }
 
-        private boolean endsAt(Row row, int place) {
-            if (place < row.count) {
+        /** Looks at what stands behind a word that asks for no EXPRESSION: one NAME, or nothing. */
+        private boolean nameIsRight(Row row, int order) {
+            int place = order + 1;
+            boolean wantsName = row.word == SHARE || row.word == WANT || row.word == WEAK;
+            boolean hasName = wantsName && tokens.kindAt(row, place) == NAME;
+            expressions = 0;
+            if (hasName) {
+                place++;
+            }
+            if (hasName != wantsName || place < row.count) {
                 fail(FAULT_LINE, row, place);
                 return false;
             }
             return true;
         }
 
-        private boolean expressionsAreRight(Row row, int from, int most) {
-            int at = from;
+        private boolean expressionsAreRight(Row row, int order) {
+            int most = expressionsOf(row.word);
+            int at = row.word == LOAD && tokens.isSign(row, order + 1, '=') ? order + 2 : order + 1;
             for (expressions = 1; expressions <= most; expressions++) {
                 at = reckoner.parse(row, at);
                 if (at == NONE) {
@@ -2059,31 +2064,24 @@ public final class Twopassworks {
             return false;
         }
 
-        /** Does what a row asks for that has been found right. */
-        private void obey(int at, int order, int word, Frame frame) {
-            Row row = rowAt(at);
-            if (word == END || word == ELSE) {
-                fail(FAULT_BLOCK, row, order);
-                return;
-            }
-            if (hadToBeKnown(word) && !isKnownWithin(row, order, word)) {
-                return;
-            }
-            if (word > WEAK) {
-                openBlock(at, order, word, frame);
-                return;
-            }
-            if (word == PART) {
+        /** Makes the FLAT line of a row with one of the words byte to weak. */
+        private void addOrder(Row row, int order, int expansion) {
+            if (row.word == PART) {
                 part = reckoner.number();
             }
-            Flat flat = addFlat(row, frame.expansion, word, order);
-            if (flat != null) {
-                flat.expressions = expressions;
-                if (word == LET) {
-                    noteLet(flat);
-                } else if (hadToBeKnown(word)) {
-                    flat.told = reckoner.number();
-                }
+            Flat flat = addFlat(row, order, expansion);
+            if (flat == null) {
+                return;
+            }
+            flat.expressions = expressions;
+            if (hadToBeKnown(row.word)) {
+                flat.told = reckoner.number();
+            }
+            // Just the first let of a NAME can make it KNOWN.
+            if (row.word == LET && flat.label != null && flat.label.known == NOT_LET) {
+                boolean known = reckoner.reckon(row, true, 0, NONE);
+                flat.label.known = known ? LET_KNOWN : LET_UNKNOWN;
+                flat.label.told = known ? reckoner.number() : 0;
             }
         }
 
@@ -2092,12 +2090,12 @@ public final class Twopassworks {
         }
 
         /** Reckons what had to be KNOWN; answers whether it could be and is as the word asks. */
-        private boolean isKnownWithin(Row row, int order, int word) {
-            if (!reckoner.reckonKnown(row)) {
+        private boolean isKnownWithin(Row row, int order) {
+            if (!reckoner.reckon(row, true, 0, NONE)) {
                 fail(reckoner.missCode(), row, reckoner.missPlace());
                 return false;
             }
-            if (!isWithin(word, reckoner.number())) {
+            if (!isWithin(row.word, reckoner.number())) {
                 fail(FAULT_RANGE, row, order + 1);
                 return false;
             }
@@ -2122,7 +2120,7 @@ public final class Twopassworks {
         }
 
         /** Puts a FLAT line behind the others; answers null with a fault. */
-        private Flat addFlat(Row row, int expansion, int word, int order) {
+        private Flat addFlat(Row row, int order, int expansion) {
             if (flatCount >= MOST_LINES) {
                 fail(FAULT_LONG, row, 0);
                 return null;
@@ -2135,26 +2133,13 @@ public final class Twopassworks {
                 flats.add(flat);
             }
             flatCount++;
-            flat.begin(row, expansion, part, word);
-            flat.pooled = word == LOAD && tokens.isSign(row, order + 1, '=');
+            flat.begin(row, expansion, part);
+            flat.pooled = row.word == LOAD && tokens.isSign(row, order + 1, '=');
             flat.operands = flat.pooled ? order + 2 : order + 1;
             if (order > 0) {
                 flat.label = tokens.nameAt(row, 0);
             }
             return flat;
-        }
-
-        /** Just the first let of a NAME can make it KNOWN. */
-        private void noteLet(Flat flat) {
-            Name name = flat.label;
-            if (name == null || name.known != NOT_LET) {
-                return;
-            }
-            name.known = LET_UNKNOWN;
-            if (reckoner.reckonKnown(flat.row)) {
-                name.known = LET_KNOWN;
-                name.told = reckoner.number();
-            }
         }
 
         private void callMacro(Row row, int order, Name name, Frame frame) {
@@ -2163,11 +2148,11 @@ public final class Twopassworks {
             }
             if (order > 0) {
                 Row label = addRow(row.start, order, row.line);
-                if (addFlat(label, frame.expansion, 0, order) == null) {
+                if (addFlat(label, order, frame.expansion) == null) {
                     return;
                 }
             }
-            Frame body = pushBody(row, order);
+            Frame body = pushFrame(row, order);
             if (body != null) {
                 body.from = name.bodyFrom;
                 body.to = name.bodyTo;
@@ -2195,41 +2180,41 @@ public final class Twopassworks {
             return true;
         }
 
-        private void openBlock(int at, int order, int word, Frame frame) {
+        private void openBlock(int at, int order, Frame frame) {
             Row row = rowAt(at);
-            int number = word == MACRO ? 0 : reckoner.number();
-            int end = endOf(at + 1, frame.end);
+            int end = row.word == END || row.word == ELSE ? NONE : endOf(at + 1, frame.end);
             if (end == NONE) {
                 fail(FAULT_BLOCK, row, order);
                 return;
             }
             frame.next = end + 1;
-            if (word == MACRO) {
+            if (row.word == MACRO) {
                 defineMacro(row, at + 1, end);
-            } else if (word == IF) {
-                int parting = elseOf(at + 1, end);
-                int ahead = parting == NONE ? end : parting;
-                int behind = parting == NONE ? end : parting + 1;
-                int expansion = frame.expansion;
-                Frame body = pushBody(row, order);
-                if (body != null) {
-                    body.next = number != 0 ? at + 1 : behind;
-                    body.end = number != 0 ? ahead : end;
-                    body.expansion = expansion;
-                }
-            } else if (number > 0) {
-                Frame body = pushBody(row, order);
-                if (body != null) {
-                    body.from = at + 1;
-                    body.to = end;
-                    body.rounds = number;
-                }
+                return;
             }
-        }
-
-        private int orderWordOf(int at) {
-            Row row = rowAt(at);
-            return tokens.wordAt(row, tokens.orderPlace(row));
+            int number = reckoner.number();
+            if (row.word == REPEAT && number == 0) {
+                return;
+            }
+            Frame body = pushFrame(row, order);
+            if (body == null) {
+                return;
+            }
+            if (row.word == REPEAT) {
+                body.from = at + 1;
+                body.to = end;
+                body.rounds = number;
+                return;
+            }
+            int parting = elseOf(at + 1, end);
+            if (number != 0) {
+                body.next = at + 1;
+                body.end = parting == NONE ? end : parting;
+            } else {
+                body.next = parting == NONE ? end : parting + 1;
+                body.end = end;
+            }
+            body.expansion = frame.expansion;
         }
 
         private static boolean opens(int word) {
@@ -2240,7 +2225,7 @@ public final class Twopassworks {
         private int endOf(int from, int to) {
             int open = 1;
             for (int i = from; i < to; i++) {
-                int word = orderWordOf(i);
+                int word = rowAt(i).word;
                 if (opens(word)) {
                     open++;
                 } else if (word == END) {
@@ -2257,7 +2242,7 @@ public final class Twopassworks {
         private int elseOf(int from, int to) {
             int open = 0;
             for (int i = from; i < to; i++) {
-                int word = orderWordOf(i);
+                int word = rowAt(i).word;
                 if (opens(word)) {
                     open++;
                 } else if (word == END) {
@@ -2276,7 +2261,7 @@ public final class Twopassworks {
                 return;
             }
             for (int i = from; i < to; i++) {
-                if (orderWordOf(i) == MACRO) {
+                if (rowAt(i).word == MACRO) {
                     fail(FAULT_BLOCK, rowAt(i), tokens.orderPlace(rowAt(i)));
                     return;
                 }
@@ -2347,11 +2332,16 @@ public final class Twopassworks {
             return NONE;
         }
 
+        /** Puts a MOVE in at its place by addresses. */
         void addMove(int address, int kind, int base, int number) {
-            moveAddresses.add(address);
-            moveKinds.add(kind);
-            moveBases.add(base);
-            moveNumbers.add(number);
+            int at = moveAddresses.size();
+            while (at > 0 && moveAddresses.at(at - 1) > address) {
+                at--;
+            }
+            moveAddresses.insert(at, address);
+            moveKinds.insert(at, kind);
+            moveBases.insert(at, base);
+            moveNumbers.insert(at, number);
         }
 
         int moveCount() {
@@ -2499,7 +2489,7 @@ public final class Twopassworks {
                 placeParts();
             }
             if (stands()) {
-                writeParts();
+                writeBytes();
             }
         }
 
@@ -2590,7 +2580,7 @@ public final class Twopassworks {
             }
         }
 
-        private Name symbolAt(int at) {
+        Name symbolAt(int at) {
             Name name = at >= 0 && at < symbolCount && at < MOST_LINES ? symbols[at] : null;
             return name == null ? nobody : name;
         }
@@ -2719,7 +2709,7 @@ public final class Twopassworks {
         private int reckonInto(Flat flat, int place, int which) {
             Reckoner reckoner = expander.reckoner;
             int behind = reckoner.parse(flat.row, place);
-            if (!reckoner.reckonFor(flat.row, flat.offset, flat.part)) {
+            if (!reckoner.reckon(flat.row, false, flat.offset, flat.part)) {
                 expander.fail(reckoner.missCode(), flat.row, reckoner.missPlace());
                 return behind;
             }
@@ -2732,46 +2722,36 @@ public final class Twopassworks {
         private void askValues() {
             for (int i = 0; i < flatCount() && stands(); i++) {
                 Flat flat = expander.flatAt(i);
-                switch (flat.word) {
-                    case BYTE:
-                    case WORD:
-                    case JUMP:
-                    case CALL:
-                    case LOAD:
-                        askValuesOf(flat);
-                        break;
-                    case SHARE:
-                        int kind = expander.tokens.nameAt(flat.row, flat.operands).kind;
-                        if (kind != LABEL && kind != EQUATE) {
-                            expander.fail(FAULT_UNKNOWN, flat.row, flat.operands);
-                        }
-                        break;
-                    default:
-                        break;
+                if (flat.word == SHARE) {
+                    int kind = expander.tokens.nameAt(flat.row, flat.operands).kind;
+                    if (kind != LABEL && kind != EQUATE) {
+                        expander.fail(FAULT_UNKNOWN, flat.row, flat.operands);
+                    }
+                }
+                int place = flat.operands;
+                int asked = isAsked(flat.word) ? flat.expressions : 0;
+                for (int which = 0; which < asked && stands(); which++) {
+                    int behind = reckonInto(flat, place, which);
+                    int fault = stands() ? askedOf(flat, which) : 0;
+                    if (fault != 0) {
+                        expander.fail(fault, flat.row, place);
+                    }
+                    place = behind + 1;
+                }
+                if (flat.pooled && stands()) {
+                    poolLiteral(flat);
                 }
             }
         }
 
-        private void askValuesOf(Flat flat) {
-            int place = flat.operands;
-            for (int which = 0; which < flat.expressions && which < MOST_EXPRESSIONS; which++) {
-                int behind = reckonInto(flat, place, which);
-                int fault = stands() ? askedOf(flat, flat.number(which), flat.base(which)) : 0;
-                if (fault != 0) {
-                    expander.fail(fault, flat.row, place);
-                }
-                if (!stands()) {
-                    return;
-                }
-                place = behind + 1;
-            }
-            if (flat.pooled) {
-                poolLiteral(flat);
-            }
+        private static boolean isAsked(int word) {
+            return word == BYTE || word == WORD || word == JUMP || word == CALL || word == LOAD;
         }
 
         /** The code of the fault that a VALUE is in a FLAT line, 0 where it may stand there. */
-        private static int askedOf(Flat flat, int number, int base) {
+        private static int askedOf(Flat flat, int which) {
+            int number = flat.number(which);
+            int base = flat.base(which);
             if (flat.word == BYTE || flat.word == LOAD && !flat.pooled) {
                 if (base != NONE) {
                     return FAULT_BASE;
@@ -2841,35 +2821,12 @@ public final class Twopassworks {
                 && memory.startOf(part) < memory.endOf(other) && memory.startOf(other) < memory.endOf(part);
         }
 
-        /** Writes the PARTS by rising START, so that their MOVES come by addresses. */
-        private void writeParts() {
-            int done = 0;
-            for (int round = 0; round < PARTS; round++) {
-                int next = NONE;
-                for (int part = 0; part < PARTS; part++) {
-                    boolean open = memory.sizeOf(part) > 0 && (done >> part & 1) == 0;
-                    if (open && (next == NONE || memory.startOf(part) < memory.startOf(next))) {
-                        next = part;
-                    }
-                }
-                if (next == NONE) {
-                    return;
-                }
-                done |= 1 << next;
-                writePart(next);
-            }
-        }
-
-        private void writePart(int part) {
+        private void writeBytes() {
             for (int i = 0; i < flatCount(); i++) {
-                if (expander.flatAt(i).part == part) {
-                    writeFlatLine(expander.flatAt(i), i);
-                }
+                writeFlatLine(expander.flatAt(i), i);
             }
             for (int i = 0; i < literalParts.size(); i++) {
-                if (literalParts.at(i) == part) {
-                    writeValue(part, literalOffset(i), literalNumbers.at(i), literalBases.at(i));
-                }
+                writeValue(literalParts.at(i), literalOffset(i), literalNumbers.at(i), literalBases.at(i));
             }
         }
 
@@ -2898,7 +2855,13 @@ public final class Twopassworks {
                     }
                     break;
                 case JUMP:
-                    writeJump(flat, at);
+                    if (isShort(at)) {
+                        memory.write(part, offset, CODE_SHORT);
+                        memory.write(part, offset + 1, reachBy(sizes, at));
+                    } else {
+                        memory.write(part, offset, CODE_LONG);
+                        writeValue(part, offset + 1, flat.number(0), flat.base(0));
+                    }
                     break;
                 case CALL:
                     writeCall(flat);
@@ -2908,16 +2871,6 @@ public final class Twopassworks {
                     break;
                 default:
                     break;
-            }
-        }
-
-        private void writeJump(Flat flat, int at) {
-            if (isShort(at)) {
-                memory.write(flat.part, flat.offset, CODE_SHORT);
-                memory.write(flat.part, flat.offset + 1, reachNow(at));
-            } else {
-                memory.write(flat.part, flat.offset, CODE_LONG);
-                writeValue(flat.part, flat.offset + 1, flat.number(0), flat.base(0));
             }
         }
 
@@ -3023,7 +2976,8 @@ public final class Twopassworks {
                 to.addHex(memory.cellAt(address + i), 2);
             }
             to.addAll(size > LISTED_BYTES ? "+  " : "  ");
-            expander.addFlatForm(at, to);
+            Row row = expander.flatAt(at).row;
+            expander.tokens.addForm(row, row.count, to);
         }
 
         int factOfAll(int what) {
@@ -3241,30 +3195,28 @@ public final class Twopassworks {
             return false;
         }
 
-        /** Writes the FORMS of all FLAT lines, a STRETCH and the next one exchanged; answers how many texts that are. */
+        /** Writes the FORMS of all FLAT lines, a STRETCH and the next one exchanged; answers how many texts. */
         int writeExchanged(int stretch, Text[] texts) {
             int first = stretch == NONE ? 0 : beginOf(stretch);
             int second = stretch == NONE ? 0 : beginOf(stretch + 1);
             int end = stretch == NONE ? 0 : beginOf(stretch + 2);
-            int count = writeForms(0, first, texts, 0);
-            count = writeForms(second, end, texts, count);
-            if (stretch == 0) {
-                Text text = textOf(texts, count);
-                text.wipe();
-                text.addAll("part 0");
+            int parting = first + end - second;
+            int count = 0;
+            for (int i = 0; i < flatCount(); i++) {
+                if (i == parting && stretch == 0) {
+                    Text text = textOf(texts, count);
+                    text.wipe();
+                    text.addAll("part 0");
+                    count++;
+                }
+                int from = i;
+                if (i >= first && i < end) {
+                    from = i < parting ? i + second - first : i + second - end;
+                }
+                expander.writeFlat(from, textOf(texts, count));
                 count++;
             }
-            count = writeForms(first, second, texts, count);
-            return writeForms(end, flatCount(), texts, count);
-        }
-
-        private int writeForms(int from, int to, Text[] texts, int count) {
-            int next = count;
-            for (int i = from; i < to; i++) {
-                expander.writeFlat(i, textOf(texts, next));
-                next++;
-            }
-            return next;
+            return count;
         }
 
         /** Whether all SHORT jumps reach and no choice of SHORT ones that all reach leaves fewer LONG. */
