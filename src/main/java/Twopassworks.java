@@ -11,6 +11,7 @@ public final class Twopassworks {
     private static final int MOST_BODIES = 4;
     private static final int MOST_INSIDE = 3;
     private static final int MOST_EXPRESSIONS = 3;
+    private static final int MOST_ARGUMENTS = 3;
     private static final int PARTS = 4;
     private static final int MOST_LENGTH = 400;
     private static final int WANTED_BASE = 10;
@@ -119,7 +120,8 @@ public final class Twopassworks {
 
     // ---- the source
 
-    public int put(int at, int label, int order, int shape, int x, int y) {
+    public int put(int at, int label, int order, int shape, int x, int y)
+        throws IndexOutOfBoundsException, IllegalArgumentException, IllegalStateException {
         if (at < 0 || at > lineCount) {
             throw new IndexOutOfBoundsException();
         }
@@ -135,7 +137,8 @@ public final class Twopassworks {
         return lineCount;
     }
 
-    public int remark(int at, int number) {
+    public int remark(int at, int number)
+        throws IndexOutOfBoundsException, IllegalArgumentException, IllegalStateException {
         if (!hasLine(at)) {
             throw new IndexOutOfBoundsException();
         }
@@ -151,7 +154,8 @@ public final class Twopassworks {
         return text.size();
     }
 
-    public int sign(int at, int column, int code) {
+    public int sign(int at, int column, int code)
+        throws IndexOutOfBoundsException, IllegalArgumentException, IllegalStateException {
         if (!hasLine(at) || column < 0 || column > textOf(lines, at).size()) {
             throw new IndexOutOfBoundsException();
         }
@@ -166,14 +170,14 @@ public final class Twopassworks {
         return text.size();
     }
 
-    public int rub(int at, int column) {
+    public int rub(int at, int column) throws IndexOutOfBoundsException {
         if (!hasSign(at, column)) {
             throw new IndexOutOfBoundsException();
         }
         return textOf(lines, at).takeOut(column);
     }
 
-    public int cut(int at) {
+    public int cut(int at) throws IndexOutOfBoundsException {
         if (!hasLine(at)) {
             throw new IndexOutOfBoundsException();
         }
@@ -182,7 +186,7 @@ public final class Twopassworks {
         return lineCount;
     }
 
-    public int move(int from, int to) {
+    public int move(int from, int to) throws IndexOutOfBoundsException {
         if (!hasLine(from) || !hasLine(to)) {
             throw new IndexOutOfBoundsException();
         }
@@ -248,28 +252,28 @@ public final class Twopassworks {
         return lineCount;
     }
 
-    public int length(int at) {
+    public int length(int at) throws IndexOutOfBoundsException {
         if (!hasLine(at)) {
             throw new IndexOutOfBoundsException();
         }
         return textOf(lines, at).size();
     }
 
-    public int signAt(int at, int column) {
+    public int signAt(int at, int column) throws IndexOutOfBoundsException {
         if (!hasSign(at, column)) {
             throw new IndexOutOfBoundsException();
         }
         return textOf(lines, at).at(column);
     }
 
-    public String text(int at) {
+    public String text(int at) throws IndexOutOfBoundsException {
         if (!hasLine(at)) {
             throw new IndexOutOfBoundsException();
         }
         return textOf(lines, at).told();
     }
 
-    public String form(int at) {
+    public String form(int at) throws IndexOutOfBoundsException {
         if (!hasLine(at)) {
             throw new IndexOutOfBoundsException();
         }
@@ -277,7 +281,7 @@ public final class Twopassworks {
         return out.told();
     }
 
-    public int token(int at, int place, int what) {
+    public int token(int at, int place, int what) throws IndexOutOfBoundsException, IllegalArgumentException {
         if (!hasLine(at) || place < 0 || place >= tokensOf(at)) {
             throw new IndexOutOfBoundsException();
         }
@@ -287,14 +291,14 @@ public final class Twopassworks {
         return factOfToken(place, what);
     }
 
-    public int tokens(int at) {
+    public int tokens(int at) throws IndexOutOfBoundsException {
         if (!hasLine(at)) {
             throw new IndexOutOfBoundsException();
         }
         return tokensOf(at);
     }
 
-    public int fault(int what) {
+    public int fault(int what) throws IllegalArgumentException {
         if (what < 0 || what > 2) {
             throw new IllegalArgumentException();
         }
@@ -303,14 +307,14 @@ public final class Twopassworks {
 
     // ---- what was assembled last
 
-    public int flatLines() {
+    public int flatLines() throws IllegalStateException {
         if (!made) {
             throw new IllegalStateException();
         }
         return image.expander.flatCount();
     }
 
-    public String flat(int at) {
+    public String flat(int at) throws IllegalStateException, IndexOutOfBoundsException {
         if (!made) {
             throw new IllegalStateException();
         }
@@ -321,7 +325,8 @@ public final class Twopassworks {
         return out.told();
     }
 
-    public int ofFlat(int at, int what) {
+    public int ofFlat(int at, int what)
+        throws IllegalStateException, IndexOutOfBoundsException, IllegalArgumentException {
         if (!made) {
             throw new IllegalStateException();
         }
@@ -334,7 +339,7 @@ public final class Twopassworks {
         return image.factOfFlat(at, what);
     }
 
-    public String row(int at) {
+    public String row(int at) throws IllegalStateException, IndexOutOfBoundsException {
         if (!made) {
             throw new IllegalStateException();
         }
@@ -345,7 +350,7 @@ public final class Twopassworks {
         return out.told();
     }
 
-    public int image(int what) {
+    public int image(int what) throws IllegalStateException, IllegalArgumentException {
         if (!made) {
             throw new IllegalStateException();
         }
@@ -355,7 +360,7 @@ public final class Twopassworks {
         return image.factOfAll(what);
     }
 
-    public int byteAt(int address) {
+    public int byteAt(int address) throws IllegalStateException, IllegalArgumentException {
         if (!made) {
             throw new IllegalStateException();
         }
@@ -365,7 +370,8 @@ public final class Twopassworks {
         return image.memory.cellAt(address);
     }
 
-    public int part(int part, int what) {
+    public int part(int part, int what)
+        throws IllegalStateException, IndexOutOfBoundsException, IllegalArgumentException {
         if (!made) {
             throw new IllegalStateException();
         }
@@ -378,7 +384,7 @@ public final class Twopassworks {
         return image.factOfPart(part, what);
     }
 
-    public String symbol(int at) {
+    public String symbol(int at) throws IllegalStateException, IndexOutOfBoundsException {
         if (!made) {
             throw new IllegalStateException();
         }
@@ -389,7 +395,8 @@ public final class Twopassworks {
         return out.told();
     }
 
-    public int ofSymbol(int at, int what) {
+    public int ofSymbol(int at, int what)
+        throws IllegalStateException, IndexOutOfBoundsException, IllegalArgumentException {
         if (!made) {
             throw new IllegalStateException();
         }
@@ -402,7 +409,7 @@ public final class Twopassworks {
         return image.factOfSymbol(at, what);
     }
 
-    public int use(int at, int place) {
+    public int use(int at, int place) throws IllegalStateException, IndexOutOfBoundsException {
         if (!made) {
             throw new IllegalStateException();
         }
@@ -413,7 +420,7 @@ public final class Twopassworks {
         return flat;
     }
 
-    public int moves(int base) {
+    public int moves(int base) throws IllegalStateException, IllegalArgumentException {
         if (!made) {
             throw new IllegalStateException();
         }
@@ -423,7 +430,8 @@ public final class Twopassworks {
         return image.memory.movesWith(base);
     }
 
-    public int ofMove(int at, int what) {
+    public int ofMove(int at, int what)
+        throws IllegalStateException, IndexOutOfBoundsException, IllegalArgumentException {
         if (!made) {
             throw new IllegalStateException();
         }
@@ -436,7 +444,8 @@ public final class Twopassworks {
         return image.memory.factOfMove(at, what);
     }
 
-    public int literal(int part, int place, int what) {
+    public int literal(int part, int place, int what)
+        throws IllegalStateException, IndexOutOfBoundsException, IllegalArgumentException {
         if (!made) {
             throw new IllegalStateException();
         }
@@ -450,7 +459,7 @@ public final class Twopassworks {
         return image.factOfLiteral(found, what);
     }
 
-    public int jumps(int what) {
+    public int jumps(int what) throws IllegalStateException, IllegalArgumentException {
         if (!made) {
             throw new IllegalStateException();
         }
@@ -460,7 +469,7 @@ public final class Twopassworks {
         return image.factOfJumps(what);
     }
 
-    public int reach(int at) {
+    public int reach(int at) throws IllegalStateException, IndexOutOfBoundsException, IllegalArgumentException {
         if (!made) {
             throw new IllegalStateException();
         }
@@ -473,7 +482,7 @@ public final class Twopassworks {
         return image.reachNow(at);
     }
 
-    public int changed(int what) {
+    public int changed(int what) throws IllegalStateException, IllegalArgumentException {
         if (!made) {
             throw new IllegalStateException();
         }
@@ -483,7 +492,7 @@ public final class Twopassworks {
         return old.difference(image.memory, what);
     }
 
-    public boolean mayChangePlaces(int stretch) {
+    public boolean mayChangePlaces(int stretch) throws IllegalStateException, IndexOutOfBoundsException {
         if (!made) {
             throw new IllegalStateException();
         }
@@ -495,7 +504,8 @@ public final class Twopassworks {
 
     // ---- what would be
 
-    public int trial(int at, int label, int order, int shape, int x, int y) {
+    public int trial(int at, int label, int order, int shape, int x, int y)
+        throws IndexOutOfBoundsException, IllegalArgumentException {
         if (!hasLine(at)) {
             throw new IndexOutOfBoundsException();
         }
@@ -515,7 +525,7 @@ public final class Twopassworks {
         return before.difference(spare.memory, 0);
     }
 
-    public int value(int shape, int x, int y, int what) {
+    public int value(int shape, int x, int y, int what) throws IllegalStateException, IllegalArgumentException {
         if (!made) {
             throw new IllegalStateException();
         }
@@ -1477,7 +1487,7 @@ public final class Twopassworks {
     /** Reads EXPRESSIONS and reckons them. */
     private static final class Reckoner {
         private static final int MOST_WAITING = 32;
-        private final Tokens tokens;
+        private final Tokens tokens = new Tokens();
         // In the order in which they are reckoned: 2 * place in the row, and 1 more for a "-" before a FACTOR.
         private final Ints steps = new Ints();
         private final int[] waiting = new int[MOST_WAITING];
@@ -1488,10 +1498,6 @@ public final class Twopassworks {
         private int count;
         private int missCode;
         private int missPlace;
-
-        Reckoner(Tokens itsTokens) {
-            tokens = itsTokens;
-        }
 
         int missCode() {
             return missCode;
@@ -1740,8 +1746,8 @@ public final class Twopassworks {
 
     /** From a source to FLAT lines (section 3); it keeps the fault that was met, here or later. */
     private static final class Expander {
-        private final Tokens tokens = new Tokens();
-        private final Reckoner reckoner = new Reckoner(tokens);
+        private final Reckoner reckoner = new Reckoner();
+        private final Tokens tokens = reckoner.tokens;
         private final ArrayList<Row> rows = new ArrayList<Row>();
         private int rowCount;
         private final ArrayList<Flat> flats = new ArrayList<Flat>();
@@ -1752,8 +1758,8 @@ public final class Twopassworks {
         private int macros;
         private int part;
         private int expressions;
-        private final int[] argumentFrom = new int[MOST_EXPRESSIONS];
-        private final int[] argumentTo = new int[MOST_EXPRESSIONS];
+        // Where each argument of the last macro call begins among all TOKENS, and where one more would.
+        private final int[] argumentsFrom = new int[MOST_ARGUMENTS + 1];
         private int arguments;
         private int faultCode;
         private Row faultRow;
@@ -1761,10 +1767,6 @@ public final class Twopassworks {
         private int faultPlace;
         private final Row noRow = new Row();
         private final Flat noFlat = new Flat();
-
-        Expander() {
-            noFlat.begin(noRow, 0, 0);
-        }
 
         int faultCode() {
             return faultCode;
@@ -1829,6 +1831,7 @@ public final class Twopassworks {
             expansions = 0;
             macros = 0;
             part = 0;
+            noFlat.begin(noRow, 0, 0);
             failAt(0, NONE, 0);
             for (int i = 0; i < count && i < lines.length && faultCode == 0; i++) {
                 Text text = i == replaced ? other : lines[i];
@@ -1934,11 +1937,11 @@ public final class Twopassworks {
                 int kind = tokens.kindAt(row, place);
                 int worth = tokens.worthAt(row, place);
                 if (kind == PARAMETER && frame.called) {
-                    if (worth < 1 || worth > arguments || worth > MOST_EXPRESSIONS) {
+                    if (worth < 1 || worth > arguments || worth > MOST_ARGUMENTS) {
                         fail(FAULT_ARGUMENT, row, place);
                         return;
                     }
-                    tokens.addAgain(argumentFrom[worth - 1], argumentTo[worth - 1]);
+                    tokens.addAgain(argumentsFrom[worth - 1], argumentsFrom[worth] - 1);
                     changes = true;
                 } else if (kind == LOCAL) {
                     tokens.add(NAME, tokens.localName(worth, frame.expansion));
@@ -2162,19 +2165,19 @@ public final class Twopassworks {
         }
 
         private boolean argumentsAreRight(Row row, int from) {
-            arguments = 0;
             int begin = from;
+            arguments = 0;
+            argumentsFrom[0] = row.start + from;
             for (int place = from; place <= row.count && row.count > from; place++) {
                 boolean ends = place == row.count || tokens.isSign(row, place, ',');
-                if (ends ? place == begin : arguments >= MOST_EXPRESSIONS) {
+                if (ends ? place == begin : arguments >= MOST_ARGUMENTS) {
                     fail(FAULT_LINE, row, place);
                     return false;
                 }
-                if (ends && arguments < MOST_EXPRESSIONS) {
-                    argumentFrom[arguments] = row.start + begin;
-                    argumentTo[arguments] = row.start + place;
-                    arguments++;
+                if (ends && arguments < MOST_ARGUMENTS) {
                     begin = place + 1;
+                    arguments++;
+                    argumentsFrom[arguments] = row.start + begin;
                 }
             }
             return true;
