@@ -20,6 +20,7 @@ public final class JumpsTest {
         Due.same("wanted twice", "8 1 5", Due.faultOf("want a", "want a"));
         Due.same("a LABEL ahead of a call", "8 3 0", Due.faultOf("m: macro", "end", "a:", "a: m"));
         Due.same("marks", "0 -1 0", Due.faultOf("weak a", "weak a", "share a", "share a", "a: stop"));
+        Due.same("NAMES of one length", "0 -1 0", Due.faultOf("ab: stop", "ef: stop", "a1: stop", "word ab-ef+a1"));
         Due.same("a macro and a label", "0 -1 0", Due.faultOf("a: macro", "end", "a: a"));
     }
 

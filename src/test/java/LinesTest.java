@@ -78,6 +78,15 @@ public final class LinesTest {
         Due.same("rub at the front", (int) 'x', w.rub(0, 0));
         Due.same("rub within", (int) ';', w.rub(0, 6));
         Due.same("text", " stop r0 ;r99", w.text(0));
+        StringBuilder wide = new StringBuilder();
+        Twopassworks full = Due.source("");
+        for (int i = 0; i < 80; i++) {
+            full.sign(0, i, 'a' + i % 26);
+            wide.append((char) ('a' + i % 26));
+            Due.same("rub of " + (i + 1), (int) 'a', full.rub(0, 0));
+            full.sign(0, 0, 'a');
+            Due.same("text of " + (i + 1), wide, full.text(0));
+        }
         Twopassworks one = Due.source("s");
         Due.same("rub the last sign", (int) 's', one.rub(0, 0));
         Due.same("length", 0, one.length(0));
@@ -209,6 +218,9 @@ public final class LinesTest {
         Due.same("ILL", "! x", w.text(2));
         Due.same("last", "10 ; q", w.text(3));
         Due.same("tidy again", 0, w.tidy());
+        w.sign(3, 0, ' ');
+        w.cut(3);
+        Due.same("tidy without the line that was cut", 0, w.tidy());
     }
 
     private static void knock() {
