@@ -1542,7 +1542,6 @@ public final class Twopassworks {
                         hold(place, sign == '(' ? RANK_OPEN : RANK_MINUS);
                     } else if (kind == NUMBER || kind == NAME || sign == '.') {
                         steps.add(place * 2);
-                        release(RANK_MINUS);
                         wantsFactor = false;
                     } else {
                         return miss(FAULT_LINE, place);
@@ -1552,7 +1551,6 @@ public final class Twopassworks {
                     waitingCount--;
                     inside--;
                     parens--;
-                    release(RANK_MINUS);
                 } else if (rankOf(sign) != RANK_OPEN) {
                     release(rankOf(sign));
                     hold(place, rankOf(sign));

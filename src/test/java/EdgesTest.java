@@ -51,6 +51,10 @@ public final class EdgesTest {
         Due.outside("move to 120", () -> w.move(0, 120));
         Due.outside("move from -1", () -> w.move(-1, 0));
         Due.same("text after refusals", "stop", w.text(0));
+        w.cut(119);
+        Due.same("put the 120th at the front", 120, w.put(0, 1, 0, 0, 0, 0));
+        Due.same("the first", "a:", w.text(0));
+        Due.same("the last", "stop", w.text(119));
         full();
     }
 

@@ -200,6 +200,8 @@ public final class FlatTest {
         fault("8 1 0", "repeat 2", "m: macro", "end", "end");
         flat("m_1:|stop", "repeat 1", "@m: macro", "stop", "end", "m_1:", "m_1", "end");
         fault("16 1 5", "repeat 1", "byte %1", "end");
+        fault("16 4 5", "m: macro", "end", "m 5", "repeat 1", "byte %1", "end");
+        fault("4 1 0", "repeat 1", "foo", "byte %1", "end");
         Due.same("no EXPANSION of repeat 0", 0, Due.assembled("repeat 0", "end").image(7));
         Due.same("EXPANSIONS without rows", 5, Due.assembled("repeat 5", "end").image(7));
     }

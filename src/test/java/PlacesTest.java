@@ -52,6 +52,7 @@ public final class PlacesTest {
         fault("15 -1 1", "byte 1,2", "part 1", "from 1", "stop");
         fault("0 -1 0", "byte 1,2", "part 1", "from 2", "stop");
         fault("0 -1 0", "byte 1,2", "part 1", "from 1");
+        fault("0 -1 0", "from 1", "part 1", "from 0", "byte 1,2,3");
         fault("15 -1 3", "part 3", "from 0", "stop", "part 1", "stop");
         fault("15 -1 2", "from 5", "stop", "part 1", "from 0", "byte 1,2,3", "part 2", "from 2", "byte 1", "part 3",
             "from 5",

@@ -35,6 +35,8 @@ public final class ValuesTest {
         first(8, -1, "word 9/2*2");
         first(-3, -1, "word -(1+2)");
         first(-1, -1, "word -3+2");
+        first(-3, -1, "word 1-(-(2))*-2");
+        first(5, -1, "word -(1-2)*(7-2)");
         first(65535, -1, "word 65535");
         fault("12 0 10", "word 65535+1");
         first(65535, -1, "word 65534+1");
