@@ -17,9 +17,14 @@ public final class Twopassworks {
     private static final int WANTED_BASE = 10;
     private static final int STRETCHES_LOOKED_AT = 6;
     private static final int JUMPS_CHOSEN_FROM = 6;
-    // The document sets no bound to a row of TOKENS; these stand far above what a run can need.
-    private static final int MOST_ROOM = 1 << 20;
+    // The document sets no bound to these; they stand far above what a run can need.
+    private static final int MOST_ROOM = 1 << 26;
     private static final int MOST_STEPS = 1000000;
+    private static final long MOST_WALKED = 1L << 40;
+    // A row or text may be longer than can be counted: it counts as so long then.
+    private static final long MOST_COUNTED = 1L << 60;
+    // More signs than all calls of a run have room for are not told.
+    private static final int MOST_TOLD = 1 << 23;
 
     private static final int NAME = 1;
     private static final int LOCAL = 2;
@@ -27,6 +32,18 @@ public final class Twopassworks {
     private static final int NUMBER = 4;
     private static final int SIGN = 5;
     private static final int REMARK = 6;
+    // TOKENS that are written once and stand in several rows (see Tokens).
+    private static final int PIECE = 7;
+    private static final int SHARED = 128;
+    // TOKENS that are more, and NAMES and TOKENS that have more signs, are shared.
+    private static final int MOST_COPIED = 8;
+    private static final int MOST_SPELLED = 100;
+    // A text that is shorter shares nothing. So long a one cannot get so short that a sign may be put in.
+    private static final int MOST_WRITTEN = 640;
+    private static final int MOST_HEAD = 4;
+    private static final int STATES = 32;
+    private static final long CHECK_BASE = 1000003;
+    private static final long CHECK_PRIME = 2147483647;
 
     private static final int FAULT_SIGN = 1;
     private static final int FAULT_NUMBER = 2;
@@ -79,12 +96,6 @@ public final class Twopassworks {
     private static final int LET_UNKNOWN = 1;
     private static final int LET_KNOWN = 2;
 
-    // How tightly what waits on the stack of a parse binds.
-    private static final int RANK_OPEN = 0;
-    private static final int RANK_ADD = 1;
-    private static final int RANK_MULTIPLY = 2;
-    private static final int RANK_MINUS = 3;
-
     private static final int KIND_OF_WORD = 1;
     private static final int KIND_OF_WANTED = 2;
     private static final int KIND_OF_CALL = 3;
@@ -99,21 +110,24 @@ public final class Twopassworks {
     private static final int CODE_LOAD = 48;
     private static final int CODE_LOAD_LITERAL = 49;
 
-    private final Text[] lines = new Text[MOST_LINES];
+    private final Codes[] lines = new Codes[MOST_LINES];
     private int lineCount;
     private Assembly image = new Assembly();
     private Assembly spare = new Assembly();
     private boolean made;
     private final Memory old = new Memory();
     private final Memory before = new Memory();
-    private final Text[] again = new Text[MOST_LINES + 1];
+    private final Codes[] again = new Codes[MOST_LINES + 1];
     private int faultCode;
     private int faultLine = NONE;
     private int faultColumn;
     private int refused;
+    // The texts of the SOURCE are its; it reads one of them at a time.
     private final Tokens scan = new Tokens();
     private final Row scanned = new Row();
-    private final Text out = new Text();
+    private final Codes out = new Codes();
+    private final StringBuilder builder = new StringBuilder();
+    private String told = "";
 
     public Twopassworks() {
     }
@@ -145,36 +159,40 @@ public final class Twopassworks {
         if (number < 0 || number > 99) {
             throw new IllegalArgumentException();
         }
-        Text text = textOf(lines, at);
-        if (text.size() >= MOST_SIGNS) {
+        Codes text = textOf(lines, at);
+        if (scan.lengthOf(text) >= MOST_SIGNS) {
             throw new IllegalStateException();
         }
         text.addAll(" ;r");
         text.addNumber(number);
-        return text.size();
+        return lengthOf(at);
     }
 
     public int sign(int at, int column, int code)
         throws IndexOutOfBoundsException, IllegalArgumentException, IllegalStateException {
-        if (!hasLine(at) || column < 0 || column > textOf(lines, at).size()) {
+        if (!hasLine(at) || column < 0 || column > lengthOf(at)) {
             throw new IndexOutOfBoundsException();
         }
         if (code < 32 || code > 126) {
             throw new IllegalArgumentException();
         }
-        Text text = textOf(lines, at);
-        if (text.size() >= MOST_SIGNS) {
+        Codes text = textOf(lines, at);
+        if (scan.lengthOf(text) >= MOST_SIGNS) {
             throw new IllegalStateException();
         }
-        text.insert(column, (char) code);
-        return text.size();
+        text.insert(scan.openAt(text, column), code);
+        return lengthOf(at);
     }
 
     public int rub(int at, int column) throws IndexOutOfBoundsException {
         if (!hasSign(at, column)) {
             throw new IndexOutOfBoundsException();
         }
-        return textOf(lines, at).takeOut(column);
+        Codes text = textOf(lines, at);
+        int place = scan.openAt(text, column);
+        int sign = text.takeOut(place);
+        scan.close(text, place);
+        return sign;
     }
 
     public int cut(int at) throws IndexOutOfBoundsException {
@@ -203,9 +221,11 @@ public final class Twopassworks {
     public int tidy() {
         int changes = 0;
         for (int i = 0; i < lineCount; i++) {
-            Text text = textOf(lines, i);
+            Codes text = textOf(lines, i);
             writeFormOf(text);
-            if (!out.same(text)) {
+            scan.spellUnkept(out);
+            scan.spellShort(out);
+            if (!scan.areSame(out, text)) {
                 text.become(out);
                 changes++;
             }
@@ -215,19 +235,21 @@ public final class Twopassworks {
 
     public int flatten() {
         Expander expander = spare.expander;
-        expander.expand(lines, lineCount, NONE, out);
+        expander.expand(lines, lineCount, NONE, out, scan);
         takeFault(expander);
         if (faultCode == 0) {
             lineCount = expander.flatCount();
             for (int i = 0; i < lineCount; i++) {
                 expander.writeFlat(i, textOf(lines, i));
             }
+            scan.takeOver(lines, lineCount, expander.tokens);
         }
         return faultCode;
     }
 
     public int assemble() {
-        build(NONE);
+        spare.expander.expand(lines, lineCount, NONE, out, scan);
+        spare.finish();
         takeFault(spare.expander);
         if (faultCode == 0) {
             if (made) {
@@ -256,21 +278,21 @@ public final class Twopassworks {
         if (!hasLine(at)) {
             throw new IndexOutOfBoundsException();
         }
-        return textOf(lines, at).size();
+        return lengthOf(at);
     }
 
     public int signAt(int at, int column) throws IndexOutOfBoundsException {
         if (!hasSign(at, column)) {
             throw new IndexOutOfBoundsException();
         }
-        return textOf(lines, at).at(column);
+        return scan.signAt(textOf(lines, at), column);
     }
 
     public String text(int at) throws IndexOutOfBoundsException {
         if (!hasLine(at)) {
             throw new IndexOutOfBoundsException();
         }
-        return textOf(lines, at).told();
+        return tell(scan, textOf(lines, at));
     }
 
     public String form(int at) throws IndexOutOfBoundsException {
@@ -278,7 +300,7 @@ public final class Twopassworks {
             throw new IndexOutOfBoundsException();
         }
         writeFormOf(textOf(lines, at));
-        return out.told();
+        return tell(scan, out);
     }
 
     public int token(int at, int place, int what) throws IndexOutOfBoundsException, IllegalArgumentException {
@@ -322,7 +344,7 @@ public final class Twopassworks {
             throw new IndexOutOfBoundsException();
         }
         image.expander.writeFlat(at, out);
-        return out.told();
+        return tell(image.expander.tokens, out);
     }
 
     public int ofFlat(int at, int what)
@@ -347,7 +369,7 @@ public final class Twopassworks {
             throw new IndexOutOfBoundsException();
         }
         image.writeListing(at, out);
-        return out.told();
+        return tell(image.expander.tokens, out);
     }
 
     public int image(int what) throws IllegalStateException, IllegalArgumentException {
@@ -392,7 +414,7 @@ public final class Twopassworks {
             throw new IndexOutOfBoundsException();
         }
         image.writeSymbol(at, out);
-        return out.told();
+        return tell(image.expander.tokens, out);
     }
 
     public int ofSymbol(int at, int what)
@@ -512,13 +534,15 @@ public final class Twopassworks {
         if (!isLine(label, order, shape, x, y)) {
             throw new IllegalArgumentException();
         }
-        build(NONE);
+        spare.expander.expand(lines, lineCount, NONE, out, scan);
+        spare.finish();
         if (spare.expander.faultCode() != 0) {
             return -spare.expander.faultCode();
         }
         before.become(spare.memory);
         writeLine(out, label, order, shape, x, y);
-        build(at);
+        spare.expander.expand(lines, lineCount, at, out, scan);
+        spare.finish();
         if (spare.expander.faultCode() != 0) {
             return -spare.expander.faultCode();
         }
@@ -556,7 +580,7 @@ public final class Twopassworks {
         for (int first = NONE; first < STRETCHES_LOOKED_AT && first < pairs && sound; first++) {
             if (first == NONE || image.haveNoNameInCommon(first)) {
                 int count = image.writeExchanged(first, again);
-                spare.expander.expand(again, count, NONE, out);
+                spare.expander.expand(again, count, NONE, out, image.expander.tokens);
                 spare.finish();
                 sound = spare.expander.faultCode() == 0 && spare.memory.same(image.memory);
             }
@@ -567,10 +591,9 @@ public final class Twopassworks {
     public long digest() {
         long d = mix(6401, lineCount);
         for (int i = 0; i < lineCount; i++) {
-            Text text = textOf(lines, i);
-            d = mix(d, text.size());
-            writeFormOf(text);
-            d = mixText(d);
+            d = mix(d, lengthOf(i));
+            writeFormOf(textOf(lines, i));
+            d = scan.mixed(d, out);
             d = mix(d, tokensOf(i));
         }
         d = mix(mix(mix(d, faultCode), faultLine), faultColumn);
@@ -588,14 +611,6 @@ public final class Twopassworks {
         return d * 31 + v;
     }
 
-    private long mixText(long d) {
-        long mixed = d;
-        for (int i = 0; i < out.size(); i++) {
-            mixed = mix(mixed, out.at(i));
-        }
-        return mixed;
-    }
-
     private long mixFlats(long d) {
         int count = image.expander.flatCount();
         long mixed = mix(d, count);
@@ -604,7 +619,7 @@ public final class Twopassworks {
                 mixed = mix(mixed, image.factOfFlat(i, what));
             }
             image.writeListing(i, out);
-            mixed = mixText(mixed);
+            mixed = image.expander.tokens.mixed(mixed, out);
         }
         for (int what = 0; what <= 9; what++) {
             mixed = mix(mixed, image.factOfAll(what));
@@ -638,7 +653,7 @@ public final class Twopassworks {
         long mixed = d;
         for (int i = 0; i < image.symbolCount(); i++) {
             image.writeSymbol(i, out);
-            mixed = mixText(mixed);
+            mixed = image.expander.tokens.mixed(mixed, out);
             for (int what = 0; what <= 6; what++) {
                 mixed = mix(mixed, image.factOfSymbol(i, what));
             }
@@ -672,7 +687,7 @@ public final class Twopassworks {
     }
 
     private boolean hasSign(int at, int column) {
-        return hasLine(at) && column >= 0 && column < textOf(lines, at).size();
+        return hasLine(at) && column >= 0 && column < lengthOf(at);
     }
 
     private boolean hasFlat(int at) {
@@ -684,13 +699,13 @@ public final class Twopassworks {
     }
 
     /** The text at a place; it is made where none was needed so far. */
-    private static Text textOf(Text[] texts, int at) {
+    private static Codes textOf(Codes[] texts, int at) {
         if (at < 0 || at >= texts.length) {
-            return new Text();
+            return new Codes();
         }
-        Text text = texts[at];
+        Codes text = texts[at];
         if (text == null) {
-            text = new Text();
+            text = new Codes();
             texts[at] = text;
         }
         return text;
@@ -701,7 +716,7 @@ public final class Twopassworks {
         if (from < 0 || from >= lines.length || to < 0 || to >= lines.length) {
             return;
         }
-        Text moved = lines[from];
+        Codes moved = lines[from];
         if (from < to) {
             System.arraycopy(lines, from + 1, lines, from, to - from);
         } else {
@@ -710,52 +725,74 @@ public final class Twopassworks {
         lines[to] = moved;
     }
 
-    /** Assembles the SOURCE in the spare assembly, with what is in out in place of one line (or of none). */
-    private void build(int replaced) {
-        spare.expander.expand(lines, lineCount, replaced, out);
-        spare.finish();
-    }
-
     private void takeFault(Expander expander) {
         faultCode = expander.faultCode();
         faultLine = expander.faultLine();
-        faultColumn = expander.faultColumn(out);
+        faultColumn = clipped(expander.faultColumn());
+    }
+
+    private int lengthOf(int at) {
+        return clipped(scan.lengthOf(textOf(lines, at)));
+    }
+
+    /** A number that may be more than an int can tell. */
+    private static int clipped(long number) {
+        return (int) Math.min(number, Integer.MAX_VALUE);
+    }
+
+    /** The signs of a text; the same ones are told by the same String, which takes no more room. */
+    private String tell(Tokens tokens, Codes text) {
+        int size = (int) Math.min(tokens.lengthOf(text), MOST_TOLD);
+        tokens.tell(text, builder, size);
+        boolean same = told.length() == size;
+        for (int i = 0; i < size && same; i++) {
+            same = told.charAt(i) == builder.charAt(i);
+        }
+        if (!same) {
+            told = builder.toString();
+        }
+        return told;
     }
 
     /** Reads the TOKENS of a line; answers how many, or minus the code of the fault. */
     private int tokensOf(int at) {
-        return readTokens(textOf(lines, at));
+        int ill = readTokens(textOf(lines, at));
+        return ill < 0 ? ill : clipped(scan.placeOf(scanned, scanned.count));
     }
 
-    private int readTokens(Text text) {
+    /** Reads the TOKENS of a text; answers minus the code of the fault, or 0 or more. */
+    private int readTokens(Codes text) {
         scan.restart();
+        int start = scan.size();
         int count = scan.read(text);
-        scanned.start = 0;
+        scanned.start = start;
         scanned.count = Math.max(count, 0);
+        scan.openHead(scanned);
         return count;
     }
 
-    private void writeFormOf(Text text) {
+    private void writeFormOf(Codes text) {
         if (readTokens(text) < 0) {
             out.become(text);
         } else {
-            scan.writeForm(scanned, scanned.count, out);
+            scan.writeForm(scanned, out);
         }
     }
 
     /** Tells something of a TOKEN of the line that was read last. */
     private int factOfToken(int place, int what) {
-        int kind = scan.kindAt(scanned, place);
-        if (what == 0) {
-            return kind;
+        int token = (int) scan.find(scanned, place, false);
+        int kind = token & 7;
+        switch (what) {
+            case 0:
+                return kind;
+            case 1:
+                return clipped(scan.find(scanned, place, true));
+            case 2:
+                return clipped(scan.lengthOfToken(token));
+            default:
+                return kind == NUMBER || kind == SIGN ? token >> 3 : 0;
         }
-        if (what == 3) {
-            return kind == NUMBER || kind == SIGN ? scan.worthAt(scanned, place) : 0;
-        }
-        scan.writeForm(scanned, place, out);
-        int column = out.size();
-        scan.writeToken(scanned, place, out);
-        return what == 1 ? column : out.size() - column;
     }
 
     // ---- texts from numbers
@@ -774,19 +811,19 @@ public final class Twopassworks {
         return label >= 0 && label <= 52 && isOrder && shape >= 0 && shape <= 10 && isAtom(x) && isAtom(y);
     }
 
-    private static void writeLine(Text to, int label, int order, int shape, int x, int y) {
-        to.wipe();
+    private static void writeLine(Codes to, int label, int order, int shape, int x, int y) {
+        to.cutTo(0);
         if (label > 26) {
             to.add('@');
         }
         if (label > 0) {
-            to.add((char) ('a' + (label - 1) % 26));
+            to.add('a' + (label - 1) % 26);
             to.add(':');
         }
         if (order > 0) {
             writeGap(to);
             if (order > 100) {
-                to.add((char) ('a' + order - 101));
+                to.add('a' + order - 101);
             } else {
                 writeWord(to, order);
             }
@@ -797,13 +834,13 @@ public final class Twopassworks {
         }
     }
 
-    private static void writeGap(Text to) {
+    private static void writeGap(Codes to) {
         if (to.size() > 0) {
             to.add(' ');
         }
     }
 
-    private static void writeWord(Text to, int word) {
+    private static void writeWord(Codes to, int word) {
         int number = 1;
         for (int i = 0; i < WORDS.length(); i++) {
             char sign = WORDS.charAt(i);
@@ -815,7 +852,7 @@ public final class Twopassworks {
         }
     }
 
-    private static void writeShape(Text to, int shape, int x, int y) {
+    private static void writeShape(Codes to, int shape, int x, int y) {
         if (shape == 7) {
             to.add('(');
         }
@@ -856,7 +893,7 @@ public final class Twopassworks {
         }
     }
 
-    private static void writeAtom(Text to, int atom) {
+    private static void writeAtom(Codes to, int atom) {
         if (atom >= 2000) {
             to.add('$');
             to.addHex(atom - 2000, atom > 2015 ? 2 : 1);
@@ -869,7 +906,7 @@ public final class Twopassworks {
             if (atom >= 1100) {
                 to.add('@');
             }
-            to.add((char) ('a' + atom % 100));
+            to.add('a' + atom % 100);
         } else {
             to.addNumber(atom);
         }
@@ -915,8 +952,8 @@ public final class Twopassworks {
         if (atom == 1300) {
             return FAULT_KNOWN;
         }
-        out.wipe();
-        out.add((char) ('a' + atom % 100));
+        out.cutTo(0);
+        out.add('a' + atom % 100);
         if (atom >= 1100) {
             out.addAll("_0");
         }
@@ -929,76 +966,45 @@ public final class Twopassworks {
         return 0;
     }
 
-    /** A row of numbers that grows as it needs. */
-    private static final class Ints {
-        private int[] all = new int[64];
+    /** A row of numbers that grows as it needs: TOKENS, what is told of MOVES, or the codes of a text (see Tokens). */
+    private static final class Codes {
+        private int[] all = new int[32];
         private int count;
 
         int size() {
             return count;
         }
 
+        /** The number at a place, 0 where none stands. */
         int at(int place) {
             return place >= 0 && place < count ? all[place] : 0;
         }
 
-        void add(int number) {
+        void set(int place, int code) {
+            if (place >= 0 && place < count) {
+                all[place] = code;
+            }
+        }
+
+        void add(int code) {
             if (count >= all.length && count < MOST_ROOM) {
                 all = Arrays.copyOf(all, count * 2);
             }
             if (count < all.length) {
-                all[count] = number;
+                all[count] = code;
                 count++;
             }
         }
 
-        void insert(int place, int number) {
-            if (place < 0 || place > count) {
+        void addSome(Codes other, int from, int size) {
+            if (from < 0 || size <= 0 || size > other.count - from || size > MOST_ROOM - count) {
                 return;
             }
-            if (count >= all.length && count < MOST_ROOM) {
-                all = Arrays.copyOf(all, count * 2);
+            if (count + size > all.length) {
+                all = Arrays.copyOf(all, (count + size) * 2);
             }
-            if (count < all.length) {
-                System.arraycopy(all, place, all, place + 1, count - place);
-                all[place] = number;
-                count++;
-            }
-        }
-
-        void cutTo(int size) {
-            if (size >= 0 && size < count) {
-                count = size;
-            }
-        }
-    }
-
-    /** A text that can be changed. */
-    private static final class Text {
-        private byte[] signs = new byte[32];
-        private int count;
-
-        int size() {
-            return count;
-        }
-
-        /** The code of the sign at a place, 0 where none stands. */
-        int at(int place) {
-            return place >= 0 && place < count ? signs[place] : 0;
-        }
-
-        void wipe() {
-            count = 0;
-        }
-
-        void add(char sign) {
-            if (count >= signs.length && count < MOST_ROOM) {
-                signs = Arrays.copyOf(signs, count * 2);
-            }
-            if (count < signs.length) {
-                signs[count] = (byte) sign;
-                count++;
-            }
+            System.arraycopy(other.all, from, all, count, size);
+            count += size;
         }
 
         void addAll(String text) {
@@ -1007,24 +1013,13 @@ public final class Twopassworks {
             }
         }
 
-        void addPiece(Text other, int from, int size) {
-            if (from < 0 || size <= 0 || size > other.count - from || size > MOST_ROOM - count) {
-                return;
-            }
-            if (count + size > signs.length) {
-                signs = Arrays.copyOf(signs, (count + size) * 2);
-            }
-            System.arraycopy(other.signs, from, signs, count, size);
-            count += size;
-        }
-
         void addNumber(int number) {
             boolean begun = false;
             for (int unit = 10000; unit > 0; unit /= 10) {
                 int digit = number / unit % 10;
                 begun = begun || digit > 0 || unit == 1;
                 if (begun) {
-                    add((char) ('0' + digit));
+                    add('0' + digit);
                 }
             }
         }
@@ -1032,57 +1027,70 @@ public final class Twopassworks {
         void addHex(int number, int digits) {
             for (int shift = 4 * (digits - 1); shift >= 0; shift -= 4) {
                 int digit = number >> shift & 15;
-                add((char) (digit < 10 ? '0' + digit : 'a' + digit - 10));
+                add(digit < 10 ? '0' + digit : 'a' + digit - 10);
             }
         }
 
-        void insert(int place, char sign) {
-            int last = count;
-            add(sign);
-            if (place >= 0 && place < last && count > last) {
-                System.arraycopy(signs, place, signs, place + 1, last - place);
-                signs[place] = (byte) sign;
+        void insert(int place, int code) {
+            if (place < 0 || place > count) {
+                return;
             }
+            if (count >= all.length && count < MOST_ROOM) {
+                all = Arrays.copyOf(all, count * 2);
+            }
+            if (count < all.length) {
+                System.arraycopy(all, place, all, place + 1, count - place);
+                all[place] = code;
+                count++;
+            }
+        }
+
+        /** Puts some of another row (or of this one, from ahead of the place) in place of one number. */
+        void replace(int place, Codes other, int from, int size) {
+            if (place < 0 || place >= count || from < 0 || size < 0 || size > other.count - from
+                || size > MOST_ROOM - count) {
+                return;
+            }
+            if (count + size > all.length) {
+                all = Arrays.copyOf(all, (count + size) * 2);
+            }
+            System.arraycopy(all, place + 1, all, place + size, count - place - 1);
+            System.arraycopy(other.all, from, all, place, size);
+            count += size - 1;
         }
 
         int takeOut(int place) {
             if (place < 0 || place >= count) {
                 return 0;
             }
-            int sign = signs[place];
-            System.arraycopy(signs, place + 1, signs, place, count - place - 1);
+            int code = all[place];
+            System.arraycopy(all, place + 1, all, place, count - place - 1);
             count--;
-            return sign;
+            return code;
         }
 
-        void become(Text other) {
+        void cutTo(int size) {
+            if (size >= 0 && size < count) {
+                count = size;
+            }
+        }
+
+        void become(Codes other) {
             count = 0;
-            addPiece(other, 0, other.count);
+            addSome(other, 0, other.count);
         }
 
-        boolean same(Text other) {
-            return count == other.count && samePiece(0, other, 0, count);
-        }
-
-        /** Whether so many signs from a place on are those of another text from a place on. */
-        boolean samePiece(int from, Text other, int otherFrom, int size) {
+        /** Whether so many numbers from a place on are those of another row from a place on. */
+        boolean sameSome(int from, Codes other, int otherFrom, int size) {
             if (from < 0 || otherFrom < 0 || size > count - from || size > other.count - otherFrom) {
                 return false;
             }
             for (int i = 0; i < size; i++) {
-                if (signs[from + i] != other.signs[otherFrom + i]) {
+                if (all[from + i] != other.all[otherFrom + i]) {
                     return false;
                 }
             }
             return true;
-        }
-
-        String told() {
-            char[] exact = new char[count];
-            for (int i = 0; i < count; i++) {
-                exact[i] = (char) signs[i];
-            }
-            return new String(exact);
         }
     }
 
@@ -1091,11 +1099,17 @@ public final class Twopassworks {
         private int from;
         private int size;
         private int next;
+        // How many signs it has, and two numbers reckoned from them by which long NAMES are told apart.
+        private long length;
+        private long sum;
+        private long check;
+        private boolean marked;
         private int known;
         private int told;
         private int bodyFrom;
         private int bodyTo;
         private int kind;
+        private int symbol = NONE;
         private int flat;
         private int weakFlat;
         private boolean shared;
@@ -1103,15 +1117,19 @@ public final class Twopassworks {
         private int number;
         private int base;
 
-        void begin(int itsFrom, int itsSize, int itsNext) {
+        void begin(int itsFrom, int itsSize, int itsNext, Name measured) {
             from = itsFrom;
             size = itsSize;
             next = itsNext;
+            length = measured.length;
+            sum = measured.sum;
+            check = measured.check;
             known = NOT_LET;
             told = 0;
             bodyFrom = NONE;
             bodyTo = NONE;
             kind = 0;
+            symbol = NONE;
             flat = NONE;
             weakFlat = NONE;
             shared = false;
@@ -1127,6 +1145,46 @@ public final class Twopassworks {
         }
     }
 
+    /** Some TOKENS (NAMES, NUMBERS, SIGNS but ",", other PIECES) that stand in more than one row, written once. */
+    private static final class Piece {
+        private int from;
+        private int size;
+        private long tokens;
+        private long length;
+        private long sum;
+        private int first;
+        private int last;
+        // What a parse has got to behind it, by what it had got to ahead of it.
+        private final int[] after = new int[STATES];
+        private boolean marked;
+        // Which SYMBOLS stand in it, and whether a NAME that is none.
+        private long usedLow;
+        private long usedHigh;
+        private boolean unknown;
+
+        void begin(int itsFrom, int itsSize) {
+            from = itsFrom;
+            size = itsSize;
+            tokens = 0;
+            length = 0;
+            sum = 0;
+            first = 0;
+            last = 0;
+        }
+
+        int stateAfter(int state) {
+            return state >= 0 && state < STATES ? after[state] : 0;
+        }
+
+        /** Takes over what does not hang on the numbers of NAMES. */
+        void measureBy(Piece other) {
+            tokens = other.tokens;
+            length = other.length;
+            sum = other.sum;
+            System.arraycopy(other.after, 0, after, 0, STATES);
+        }
+    }
+
     /** A row of TOKENS: where it stands among all TOKENS, the number of its line, the word that its ORDER WORD is. */
     private static final class Row {
         private int start;
@@ -1135,46 +1193,110 @@ public final class Twopassworks {
         private int word;
     }
 
-    /** All TOKENS of one source, each a number (8 * what it says + its kind), and the NAMES in them. */
+    /**
+     * All TOKENS of one source, each a number (8 * what it says + its kind), the NAMES in them, and the PIECES: what
+     * stands in many rows is written once, so that a row may be longer than any room. A PIECE counts as one where a
+     * row is told by places ("at"), and as all its TOKENS where it is told by a long "place".
+     *
+     * A text is a row of codes: a sign is its own code, SHARED + 2 * n is a long NAME, SHARED + 2 * n + 1 a PIECE.
+     */
     private static final class Tokens {
         private static final int SLOTS = 128;
-        private int[] all = new int[256];
-        private int count;
+        private final Codes all = new Codes();
         private final ArrayList<Name> names = new ArrayList<Name>();
         private int nameCount;
+        private final ArrayList<Piece> pieces = new ArrayList<Piece>();
+        private int pieceCount;
         private final Name nobody = new Name();
-        private final Text letters = new Text();
+        private final Piece nothing = new Piece();
+        private final Codes letters = new Codes();
         private final int[] heads = new int[SLOTS];
-        private final Text scrap = new Text();
+        private final Name measured = new Name();
+        private final Codes scrap = new Codes();
+        private final Codes pending = new Codes();
         private int illCode;
-        private int illColumn;
+        private long illColumn;
+        // What a new source does not wipe: the words, and what the SOURCE's own texts share.
+        private int keptItems;
+        private int keptNames;
+        private int keptPieces;
+        // Where the NAMES and PIECES of another one were written here.
+        private final Codes lentNames = new Codes();
+        private final Codes lentPieces = new Codes();
 
+        /** Wipes all but what is kept. */
         void restart() {
+            if (keptNames == 0) {
+                forgetAll();
+                // The words come first, so that the number of such a NAME tells the word.
+                scrap.cutTo(0);
+                scrap.addAll(WORDS);
+                int from = 0;
+                for (int at = 0; at <= scrap.size(); at++) {
+                    if (at == scrap.size() || scrap.at(at) == ' ') {
+                        nameOf(scrap, from, at);
+                        from = at + 1;
+                    }
+                }
+                keepAll();
+            }
+            for (; nameCount > keptNames; nameCount--) {
+                Name last = named(nameCount - 1);
+                heads[slotOf(last.sum)] = last.next;
+                letters.cutTo(last.from);
+            }
+            pieceCount = keptPieces;
+            all.cutTo(keptItems);
+        }
+
+        private void forgetAll() {
             nameCount = 0;
-            letters.wipe();
+            pieceCount = 0;
+            all.cutTo(0);
+            letters.cutTo(0);
             Arrays.fill(heads, NONE);
-            // The words come first, so that the number of such a NAME tells the word.
-            scrap.wipe();
-            scrap.addAll(WORDS);
-            read(scrap);
-            count = 0;
+            keptItems = 0;
+            keptNames = 0;
+            keptPieces = 0;
+        }
+
+        private void keepAll() {
+            keptItems = all.size();
+            keptNames = nameCount;
+            keptPieces = pieceCount;
         }
 
         int size() {
-            return count;
+            return all.size();
         }
 
         void cutTo(int size) {
-            count = Math.max(0, Math.min(count, size));
+            all.cutTo(size);
         }
 
-        boolean isFull() {
-            return count >= MOST_ROOM || letters.size() >= MOST_ROOM / 2;
+        void add(int token) {
+            all.add(token);
         }
 
-        /** Puts the TOKENS of a text behind the others; answers how many, or minus the code of the fault. */
-        int read(Text text) {
-            int first = count;
+        /** Puts TOKENS that stand somewhere behind the others once more. */
+        void addAgain(int from, int to) {
+            all.addSome(all, from, to - from);
+        }
+
+        // ---- from a text to TOKENS
+
+        /** What a text of the lender is here. */
+        Codes lent(Codes text) {
+            pending.cutTo(0);
+            for (int i = 0; i < text.size(); i++) {
+                pending.add(own(text.at(i)));
+            }
+            return pending;
+        }
+
+        /** Puts the TOKENS of a text behind the others; answers how many places, or minus the code of the fault. */
+        int read(Codes text) {
+            int first = all.size();
             int at = 0;
             while (at < text.size()) {
                 if (text.at(at) == ' ') {
@@ -1188,34 +1310,39 @@ public final class Twopassworks {
                 illCode = FAULT_SIGN;
                 int end = readOne(text, at);
                 if (end <= at) {
-                    illColumn = at;
-                    count = first;
+                    measure(text, 0, at);
+                    illColumn = measured.length;
+                    all.cutTo(first);
                     return -illCode;
                 }
                 at = end;
             }
-            return count - first;
+            return all.size() - first;
         }
 
-        int illColumn() {
+        long illColumn() {
             return illColumn;
         }
 
         /** Reads the TOKEN that begins at a sign; answers where it ends, or NONE where nothing begins. */
-        private int readOne(Text text, int at) {
+        private int readOne(Codes text, int at) {
             int sign = text.at(at);
-            if (isLetter(sign)) {
+            if (isPiece(sign)) {
+                all.add((sign - SHARED >> 1) * 8 + PIECE);
+                return at + 1;
+            }
+            if (isLetter(sign) || sign >= SHARED) {
                 int end = wordEnd(text, at);
-                add(NAME, nameOf(text, at, end));
+                all.add(nameOf(text, at, end) * 8 + NAME);
                 return end;
             }
             if (sign == '@' && isLetter(text.at(at + 1))) {
                 int end = wordEnd(text, at + 1);
-                add(LOCAL, nameOf(text, at + 1, end));
+                all.add(nameOf(text, at + 1, end) * 8 + LOCAL);
                 return end;
             }
             if (sign == '%' && text.at(at + 1) >= '1' && text.at(at + 1) <= '3') {
-                add(PARAMETER, text.at(at + 1) - '0');
+                all.add((text.at(at + 1) - '0') * 8 + PARAMETER);
                 return at + 2;
             }
             if (sign == '$') {
@@ -1225,13 +1352,13 @@ public final class Twopassworks {
                 return readNumber(text, at, 10);
             }
             if (SIGNS.indexOf((char) sign) >= 0) {
-                add(SIGN, sign);
+                all.add(sign * 8 + SIGN);
                 return at + 1;
             }
             return NONE;
         }
 
-        private int readNumber(Text text, int from, int base) {
+        private int readNumber(Codes text, int from, int base) {
             int number = 0;
             int at = from;
             while (at < text.size()) {
@@ -1249,11 +1376,11 @@ public final class Twopassworks {
                 illCode = FAULT_NUMBER;
                 return NONE;
             }
-            add(NUMBER, number);
+            all.add(number * 8 + NUMBER);
             return at;
         }
 
-        private void readRemark(Text text, int begin) {
+        private void readRemark(Codes text, int begin) {
             int from = begin;
             int to = text.size();
             while (from < to && text.at(from) == ' ') {
@@ -1262,7 +1389,7 @@ public final class Twopassworks {
             while (from < to && text.at(to - 1) == ' ') {
                 to--;
             }
-            add(REMARK, nameOf(text, from, to));
+            all.add(nameOf(text, from, to) * 8 + REMARK);
         }
 
         private static boolean isLetter(int sign) {
@@ -1280,42 +1407,38 @@ public final class Twopassworks {
             return base == 16 && sign >= 'a' && sign <= 'f' ? sign - 'a' + 10 : NONE;
         }
 
-        private static int wordEnd(Text text, int from) {
+        private static int wordEnd(Codes text, int from) {
             int end = from;
-            while (end < text.size() && (isLetter(text.at(end)) || isDigit(text.at(end)) || text.at(end) == '_')) {
+            while (end < text.size() && isOfWord(text.at(end))) {
                 end++;
             }
             return end;
         }
 
-        void add(int kind, int worth) {
-            if (count >= all.length && count < MOST_ROOM) {
-                all = Arrays.copyOf(all, count * 2);
-            }
-            if (count < all.length) {
-                all[count] = worth * 8 + kind;
-                count++;
-            }
+        private static boolean isOfWord(int code) {
+            return code >= 'a' && code <= 'z' || code >= '0' && code <= '9' || code == '_'
+                || code >= SHARED && (code & 1) == 0;
         }
 
-        /** Puts TOKENS that stand somewhere behind the others once more. */
-        void addAgain(int from, int to) {
-            for (int i = Math.max(from, 0); i < to && i < count; i++) {
-                add(all[i] & 7, all[i] >> 3);
-            }
+        private static boolean isPiece(int code) {
+            return code >= SHARED && (code & 1) != 0;
         }
 
-        /** The number of the NAME that so many signs of a text are. */
-        private int nameOf(Text text, int from, int to) {
-            int hash = 0;
-            for (int i = from; i < to; i++) {
-                hash = hash * 31 + text.at(i);
+        // ---- NAMES
+
+        /** The number of the NAME that some codes of a text are. */
+        int nameOf(Codes text, int from, int to) {
+            int first = text.at(from);
+            if (to == from + 1 && first >= SHARED) {
+                return first - SHARED >> 1;
             }
-            int slot = hash & SLOTS - 1;
+            measure(text, from, to);
+            int slot = slotOf(measured.sum);
             int found = heads[slot];
             for (int step = 0; step < nameCount && found != NONE; step++) {
                 Name name = named(found);
-                if (name.size == to - from && letters.samePiece(name.from, text, from, name.size)) {
+                if (name.length == measured.length && name.sum == measured.sum && name.check == measured.check
+                    && (name.length > MOST_SPELLED || letters.sameSome(name.from, text, from, to - from))) {
                     return found;
                 }
                 found = name.next;
@@ -1323,142 +1446,513 @@ public final class Twopassworks {
             if (nameCount >= names.size()) {
                 names.add(new Name());
             }
-            names.get(nameCount).begin(letters.size(), to - from, heads[slot]);
-            letters.addPiece(text, from, to - from);
+            names.get(nameCount).begin(letters.size(), to - from, heads[slot], measured);
+            letters.addSome(text, from, to - from);
             heads[slot] = nameCount;
             nameCount++;
             return nameCount - 1;
         }
 
-        /** The number of the NAME x_k that a LOCAL @x becomes. */
-        int localName(int local, int expansion) {
+        private static int slotOf(long sum) {
+            return (int) (sum ^ sum >>> 32) & SLOTS - 1;
+        }
+
+        /** The text of the NAME x_k that a LOCAL @x becomes. */
+        Codes localText(int local, int expansion) {
             Name name = named(local);
-            scrap.wipe();
-            scrap.addPiece(letters, name.from, name.size);
+            scrap.cutTo(0);
+            scrap.addSome(letters, name.from, name.size);
             scrap.add('_');
             scrap.addNumber(expansion);
-            return nameOf(scrap, 0, scrap.size());
+            return scrap;
         }
 
         Name named(int number) {
             return number >= 0 && number < nameCount && number < names.size() ? names.get(number) : nobody;
         }
 
-        boolean isNamed(Name name, Text text) {
-            return name.size == text.size() && letters.samePiece(name.from, text, 0, name.size);
+        /** Whether a NAME is a text that is written out. */
+        boolean isNamed(Name name, Codes text) {
+            return name.size == text.size() && letters.sameSome(name.from, text, 0, name.size);
         }
 
         boolean isAhead(Name name, Name other) {
-            int size = Math.min(name.size, other.size);
-            for (int i = 0; i < size; i++) {
-                int sign = letters.at(name.from + i);
-                int otherSign = letters.at(other.from + i);
-                if (sign != otherSign) {
-                    return sign < otherSign;
+            long size = Math.min(name.length, other.length);
+            long same = 0;
+            if (size <= MOST_SPELLED) {
+                while (same < size && letterAt(name, same) == letterAt(other, same)) {
+                    same++;
+                }
+            } else {
+                // How long a beginning they share is found by halving.
+                long most = size;
+                while (same < most) {
+                    long middle = most - (most - same) / 2;
+                    if (checkOfBeginning(name, middle) == checkOfBeginning(other, middle)) {
+                        same = middle;
+                    } else {
+                        most = middle - 1;
+                    }
                 }
             }
-            return name.size < other.size;
+            return same < size ? letterAt(name, same) < letterAt(other, same) : name.length < other.length;
         }
 
-        /** 8 * what a TOKEN says + its kind, 0 where the row has none. */
-        int tokenAt(Row row, int place) {
-            int at = row.start + place;
-            return place >= 0 && place < row.count && at >= 0 && at < count ? all[at] : 0;
+        private int letterAt(Name name, long place) {
+            int at = name.from;
+            int end = name.from + name.size;
+            long left = place;
+            for (long step = 0; step < MOST_WALKED && at < end; step++) {
+                int code = letters.at(at);
+                Name part = code < SHARED ? nobody : named(code - SHARED >> 1);
+                long length = code < SHARED ? 1 : part.length;
+                if (left >= length) {
+                    left -= length;
+                    at++;
+                } else if (code < SHARED) {
+                    return code;
+                } else {
+                    at = part.from;
+                    end = part.from + part.size;
+                }
+            }
+            return 0;
+        }
+
+        private long checkOfBeginning(Name name, long size) {
+            int at = name.from;
+            int end = name.from + name.size;
+            long left = size;
+            long check = 0;
+            for (long step = 0; step < MOST_WALKED && at < end && left > 0; step++) {
+                int code = letters.at(at);
+                Name part = code < SHARED ? nobody : named(code - SHARED >> 1);
+                if (code < SHARED) {
+                    check = (check * CHECK_BASE + code) % CHECK_PRIME;
+                    left--;
+                    at++;
+                } else if (left >= part.length) {
+                    check = (check * power(CHECK_BASE, part.length, CHECK_PRIME) + part.check) % CHECK_PRIME;
+                    left -= part.length;
+                    at++;
+                } else {
+                    at = part.from;
+                    end = part.from + part.size;
+                }
+            }
+            return check;
+        }
+
+        /** Leaves in measured how long some codes of a text are, and their sum and check. */
+        private void measure(Codes text, int from, int to) {
+            long length = 0;
+            long sum = 0;
+            long check = 0;
+            for (int i = from; i < to; i++) {
+                int code = text.at(i);
+                if (code < SHARED) {
+                    length++;
+                    sum = sum * 31 + code;
+                    check = (check * CHECK_BASE + code) % CHECK_PRIME;
+                } else if (isPiece(code)) {
+                    Piece piece = pieceAt(code - SHARED >> 1);
+                    length = Math.min(length + piece.length, MOST_COUNTED);
+                    sum = sum * power(31, piece.length, 0) + piece.sum;
+                } else {
+                    Name name = named(code - SHARED >> 1);
+                    length = Math.min(length + name.length, MOST_COUNTED);
+                    sum = sum * power(31, name.length, 0) + name.sum;
+                    check = (check * power(CHECK_BASE, name.length, CHECK_PRIME) + name.check) % CHECK_PRIME;
+                }
+            }
+            measured.length = length;
+            measured.sum = sum;
+            measured.check = check;
+        }
+
+        /** A power of a number: what is left of it by a prime, or (with 0) as it wraps around at 64 bits. */
+        private static long power(long base, long exponent, long prime) {
+            long power = 1;
+            long square = base;
+            for (long left = exponent; left > 0; left >>= 1) {
+                if ((left & 1) != 0) {
+                    power = prime > 0 ? power * square % prime : power * square;
+                }
+                square = prime > 0 ? square * square % prime : square * square;
+            }
+            return power;
+        }
+
+        // ---- PIECES
+
+        int pieceCount() {
+            return pieceCount;
+        }
+
+        Piece pieceAt(int number) {
+            return number >= 0 && number < pieceCount && number < pieces.size() ? pieces.get(number) : nothing;
+        }
+
+        private Piece newPiece(int from, int size) {
+            if (pieceCount >= pieces.size()) {
+                pieces.add(new Piece());
+            }
+            Piece piece = pieces.get(pieceCount);
+            pieceCount++;
+            piece.begin(from, size);
+            return piece;
+        }
+
+        /** Whether TOKENS are so long that they are not written where they stand once more. */
+        boolean isWorthSharing(int from, int size) {
+            long length = 0;
+            for (int i = 0; i < size && i < MOST_COPIED; i++) {
+                length += lengthOfToken(all.at(from + i));
+            }
+            return size > 1 && (size > MOST_COPIED || length > MOST_SPELLED);
+        }
+
+        /** Makes a PIECE of TOKENS; answers where it stands, alone, among all TOKENS. */
+        int share(int from, int size) {
+            Piece piece = newPiece(from, size);
+            for (int state = 0; state < STATES; state++) {
+                piece.after[state] = state;
+            }
+            for (int i = 0; i < size; i++) {
+                int token = all.at(from + i);
+                Piece inner = (token & 7) == PIECE ? pieceAt(token >> 3) : null;
+                int first = inner == null ? token : inner.first;
+                long length = lengthOfToken(token);
+                if (i == 0) {
+                    piece.first = first;
+                } else if (isBlank(piece.last, first, false)) {
+                    piece.length++;
+                    piece.sum = piece.sum * 31 + ' ';
+                }
+                piece.last = inner == null ? token : inner.last;
+                piece.length = Math.min(piece.length + length, MOST_COUNTED);
+                piece.sum = piece.sum * power(31, length, 0) + sumOfToken(token);
+                piece.tokens = Math.min(piece.tokens + (inner == null ? 1 : inner.tokens), MOST_COUNTED);
+                for (int state = 0; state < STATES; state++) {
+                    int got = piece.after[state];
+                    piece.after[state] = inner == null ? Reckoner.step(got, token) : inner.stateAfter(got);
+                }
+            }
+            all.add((pieceCount - 1) * 8 + PIECE);
+            return all.size() - 1;
+        }
+
+        private long sumOfToken(int token) {
+            int worth = token >> 3;
+            switch (token & 7) {
+                case NAME:
+                    return named(worth).sum;
+                case PIECE:
+                    return pieceAt(worth).sum;
+                case NUMBER:
+                    long sum = 0;
+                    for (int unit = 10000; unit > 0; unit /= 10) {
+                        sum = worth < unit && unit > 1 ? sum : sum * 31 + '0' + worth / unit % 10;
+                    }
+                    return sum;
+                default:
+                    return worth;
+            }
+        }
+
+        private long tokensIn(int token) {
+            return (token & 7) == PIECE ? pieceAt(token >> 3).tokens : 1;
+        }
+
+        /** What a parse has got to behind a TOKEN or PIECE (see Reckoner), 0 where it stops in it. */
+        int stateAfter(int state, int token) {
+            return (token & 7) == PIECE ? pieceAt(token >> 3).stateAfter(state) : Reckoner.step(state, token);
+        }
+
+        // ---- what is taken over from another one
+
+        /** Marks what some texts need of the NAMES and PIECES here; answers whether they need any. */
+        boolean mark(Codes[] texts, int count) {
+            boolean any = false;
+            for (int i = 0; i < count && i < texts.length; i++) {
+                Codes text = texts[i];
+                for (int at = 0; text != null && at < text.size(); at++) {
+                    if (text.at(at) >= SHARED) {
+                        if (!any) {
+                            unmarkAll();
+                        }
+                        any = true;
+                        markCode(text.at(at));
+                    }
+                }
+            }
+            // What a PIECE or NAME needs has lower numbers.
+            for (int i = pieceCount - 1; i >= 0 && any; i--) {
+                Piece piece = pieceAt(i);
+                for (int at = piece.from; piece.marked && at < piece.from + piece.size; at++) {
+                    int kind = all.at(at) & 7;
+                    if (kind == NAME || kind == PIECE) {
+                        markCode(SHARED + 2 * (all.at(at) >> 3) + (kind == PIECE ? 1 : 0));
+                    }
+                }
+            }
+            for (int i = nameCount - 1; i >= 0 && any; i--) {
+                Name name = named(i);
+                for (int at = name.from; name.marked && at < name.from + name.size; at++) {
+                    markCode(letters.at(at));
+                }
+            }
+            return any;
+        }
+
+        private void unmarkAll() {
+            for (int i = 0; i < nameCount; i++) {
+                named(i).marked = false;
+            }
+            for (int i = 0; i < pieceCount; i++) {
+                pieceAt(i).marked = false;
+            }
+        }
+
+        private void markCode(int code) {
+            if (isPiece(code)) {
+                pieceAt(code - SHARED >> 1).marked = true;
+            } else if (code >= SHARED) {
+                named(code - SHARED >> 1).marked = true;
+            }
+        }
+
+        /** Takes over what is marked in another one. */
+        void borrow(Tokens lender) {
+            lentNames.cutTo(0);
+            for (int i = 0; i < lender.nameCount; i++) {
+                Name name = lender.named(i);
+                scrap.cutTo(0);
+                for (int at = name.from; name.marked && at < name.from + name.size; at++) {
+                    scrap.add(own(lender.letters.at(at)));
+                }
+                lentNames.add(name.marked ? nameOf(scrap, 0, scrap.size()) : NONE);
+            }
+            lentPieces.cutTo(0);
+            for (int i = 0; i < lender.pieceCount; i++) {
+                Piece piece = lender.pieceAt(i);
+                lentPieces.add(piece.marked ? pieceCount : NONE);
+                if (piece.marked) {
+                    int from = all.size();
+                    for (int at = piece.from; at < piece.from + piece.size; at++) {
+                        all.add(ownToken(lender.all.at(at)));
+                    }
+                    Piece taken = newPiece(from, piece.size);
+                    taken.measureBy(piece);
+                    taken.first = ownToken(piece.first);
+                    taken.last = ownToken(piece.last);
+                }
+            }
+        }
+
+        /** What a code of the lender's texts is here. */
+        private int own(int code) {
+            if (code < SHARED) {
+                return code;
+            }
+            int number = code - SHARED >> 1;
+            return isPiece(code) ? SHARED + 2 * lentPieces.at(number) + 1 : SHARED + 2 * lentNames.at(number);
+        }
+
+        private int ownToken(int token) {
+            switch (token & 7) {
+                case NAME:
+                    return lentNames.at(token >> 3) * 8 + NAME;
+                case PIECE:
+                    return lentPieces.at(token >> 3) * 8 + PIECE;
+                default:
+                    return token;
+            }
+        }
+
+        /** The texts of the SOURCE are made of another one's from now on: they and what they share are taken over. */
+        void takeOver(Codes[] texts, int count, Tokens lender) {
+            for (int i = 0; i < count && i < texts.length; i++) {
+                if (texts[i] != null) {
+                    lender.spellShort(texts[i]);
+                }
+            }
+            keptNames = 0;
+            restart();
+            if (!lender.mark(texts, count)) {
+                return;
+            }
+            borrow(lender);
+            keepAll();
+            for (int i = 0; i < count && i < texts.length; i++) {
+                Codes text = texts[i];
+                for (int at = 0; text != null && at < text.size(); at++) {
+                    text.set(at, own(text.at(at)));
+                }
+            }
+        }
+
+        // ---- rows
+
+        /** The TOKEN or PIECE at a place of a row, 0 where it has none. */
+        int tokenAt(Row row, int at) {
+            return at >= 0 && at < row.count ? all.at(row.start + at) : 0;
         }
 
         /** The kind of a TOKEN, 0 where the row has none. */
-        int kindAt(Row row, int place) {
-            return tokenAt(row, place) & 7;
+        int kindAt(Row row, int at) {
+            return at >= 0 && at < row.count ? all.at(row.start + at) & 7 : 0;
         }
 
-        /** What a TOKEN says: a NUMBER that number, a SIGN its code, a PARAMETER which, else the number of a NAME. */
-        int worthAt(Row row, int place) {
-            return tokenAt(row, place) >> 3;
+        boolean isSign(Row row, int at, char sign) {
+            return at >= 0 && at < row.count && all.at(row.start + at) == sign * 8 + SIGN;
         }
 
-        boolean isSign(Row row, int place, char sign) {
-            return tokenAt(row, place) == sign * 8 + SIGN;
-        }
-
-        Name nameAt(Row row, int place) {
-            int token = tokenAt(row, place);
+        Name nameAt(Row row, int at) {
+            int token = at >= 0 && at < row.count ? all.at(row.start + at) : 0;
             return (token & 7) == NAME ? named(token >> 3) : nobody;
         }
 
-        /** The place of the first TOKEN of a kind, NONE without one. */
-        int firstOf(Row row, int kind) {
-            for (int place = 0; place < row.count; place++) {
-                if (kindAt(row, place) == kind) {
-                    return place;
+        /** Where the first TOKEN of a kind stands outside PIECES, NONE without one. */
+        int firstOfKind(Row row, int kind) {
+            for (int at = 0; at < row.count; at++) {
+                if (kindAt(row, at) == kind) {
+                    return at;
                 }
             }
             return NONE;
         }
 
-        /** The place behind LABEL and ":", or the first one. */
+        /** Where what stands behind LABEL and ":" begins, or the row. */
         int orderPlace(Row row) {
-            int kind = tokenAt(row, 0) & 7;
+            int kind = all.at(row.start) & 7;
             boolean names = kind == NAME || kind == LOCAL || kind == PARAMETER;
-            return names && tokenAt(row, 1) == ':' * 8 + SIGN ? 2 : 0;
+            return row.count > 1 && names && all.at(row.start + 1) == ':' * 8 + SIGN ? 2 : 0;
         }
 
         /** The number of the word that the NAME at a place is, 0 where it is none. */
-        int wordAt(Row row, int place) {
-            int token = tokenAt(row, place);
+        int wordAt(Row row, int at) {
+            int token = at < row.count ? all.at(row.start + at) : 0;
             int name = token >> 3;
             return (token & 7) == NAME && name < ELSE ? name + 1 : 0;
         }
 
         /** Each LOCAL of a row becomes the NAME that it is in an EXPANSION. */
         void nameLocals(Row row, int expansion) {
-            for (int place = 0; place < row.count; place++) {
-                int token = tokenAt(row, place);
-                int at = row.start + place;
-                if ((token & 7) == LOCAL && at >= 0 && at < count) {
-                    all[at] = localName(token >> 3, expansion) * 8 + NAME;
+            for (int at = 0; at < row.count; at++) {
+                int token = tokenAt(row, at);
+                if ((token & 7) == LOCAL) {
+                    Codes text = localText(token >> 3, expansion);
+                    all.set(row.start + at, nameOf(text, 0, text.size()) * 8 + NAME);
                 }
             }
         }
 
-        /** Writes the FORM of a row as far as a place: what is written then is as long as the COLUMN of that place. */
-        void writeForm(Row row, int upTo, Text to) {
-            to.wipe();
-            addForm(row, upTo, to);
+        /** Writes out what PIECES begin a row with: LABEL, ":", ORDER WORD and "=" stand at places of their own. */
+        void openHead(Row row) {
+            int at = 0;
+            for (long step = 0; step < MOST_WALKED && at < MOST_HEAD && at < row.count; step++) {
+                int token = all.at(row.start + at);
+                if ((token & 7) != PIECE) {
+                    at++;
+                    continue;
+                }
+                if (row.start + row.count != all.size()) {
+                    int start = all.size();
+                    all.addSome(all, row.start, row.count);
+                    row.start = start;
+                }
+                Piece piece = pieceAt(token >> 3);
+                all.replace(row.start + at, all, piece.from, piece.size);
+                row.count += piece.size - 1;
+            }
         }
 
-        void addForm(Row row, int upTo, Text to) {
-            int order = orderPlace(row);
-            for (int place = 0; place < row.count && place <= upTo; place++) {
-                if (place > 0 && isBlankAhead(row, place, order)) {
+        /** How many TOKENS a row has ahead of what stands at a place (of its end: in all). */
+        long placeOf(Row row, int at) {
+            long place = 0;
+            for (int i = 0; i < at && i < row.count; i++) {
+                int token = all.at(row.start + i);
+                place = Math.min(place + ((token & 7) == PIECE ? pieceAt(token >> 3).tokens : 1), MOST_COUNTED);
+            }
+            return place;
+        }
+
+        /** The COLUMN of the TOKEN at a place (of the row's end: END), or that TOKEN itself. */
+        long find(Row row, long place, boolean column) {
+            int from = row.start;
+            int end = row.start + row.count;
+            int order = row.start + orderPlace(row);
+            int at = from;
+            long left = place;
+            long length = 0;
+            for (long step = 0; step < MOST_WALKED && at < end; step++) {
+                int token = all.at(at);
+                if (at > from && isBlankBetween(all.at(at - 1), token, at - 1 == order)) {
+                    length++;
+                }
+                if (left >= tokensIn(token)) {
+                    left -= tokensIn(token);
+                    length = Math.min(length + lengthOfToken(token), MOST_COUNTED);
+                    at++;
+                } else if ((token & 7) != PIECE) {
+                    return column ? length : token;
+                } else {
+                    from = pieceAt(token >> 3).from;
+                    end = from + pieceAt(token >> 3).size;
+                    order = NONE;
+                    at = from;
+                }
+            }
+            return column ? length : 0;
+        }
+
+        // ---- from TOKENS to a text
+
+        /** Writes the FORM of a row. */
+        void writeForm(Row row, Codes to) {
+            to.cutTo(0);
+            writeSome(row.start, row.count, orderPlace(row), to);
+        }
+
+        void writeSome(int from, int size, int order, Codes to) {
+            for (int at = 0; at < size; at++) {
+                int token = all.at(from + at);
+                if (at > 0 && isBlankBetween(all.at(from + at - 1), token, at - 1 == order)) {
                     to.add(' ');
                 }
-                if (place < upTo) {
-                    writeToken(row, place, to);
-                }
+                writeToken(token, to);
             }
         }
 
-        private boolean isBlankAhead(Row row, int place, int order) {
-            int left = kindAt(row, place - 1);
-            int right = kindAt(row, place);
-            if (right == REMARK || isSign(row, place - 1, ':') || isSign(row, place - 1, ',')) {
-                return true;
-            }
-            if (place - 1 == order && (left == NAME || left == PARAMETER)) {
-                return true;
-            }
-            return left <= NUMBER && right <= NUMBER;
+        private boolean isBlankBetween(int token, int next, boolean isOrder) {
+            int left = (token & 7) == PIECE ? pieceAt(token >> 3).last : token;
+            int right = (next & 7) == PIECE ? pieceAt(next >> 3).first : next;
+            return isBlank(left, right, isOrder);
         }
 
-        void writeToken(Row row, int place, Text to) {
-            int worth = worthAt(row, place);
-            switch (kindAt(row, place)) {
+        private static boolean isBlank(int left, int right, boolean isOrder) {
+            int kind = left & 7;
+            if ((right & 7) == REMARK || left == ':' * 8 + SIGN || left == ',' * 8 + SIGN) {
+                return true;
+            }
+            return isOrder && (kind == NAME || kind == PARAMETER) || kind <= NUMBER && (right & 7) <= NUMBER;
+        }
+
+        private void writeToken(int token, Codes to) {
+            int worth = token >> 3;
+            Name name = named(worth);
+            switch (token & 7) {
                 case NAME:
-                    writeName(named(worth), to);
+                    if (name.length > MOST_SPELLED) {
+                        to.add(SHARED + 2 * worth);
+                    } else {
+                        to.addSome(letters, name.from, name.size);
+                    }
                     break;
                 case LOCAL:
                     to.add('@');
-                    writeName(named(worth), to);
+                    to.addSome(letters, name.from, name.size);
                     break;
                 case PARAMETER:
                     to.add('%');
@@ -1468,200 +1962,510 @@ public final class Twopassworks {
                     to.addNumber(worth);
                     break;
                 case SIGN:
-                    to.add((char) worth);
+                    to.add(worth);
                     break;
                 case REMARK:
-                    to.addAll(named(worth).size > 0 ? "; " : ";");
-                    writeName(named(worth), to);
+                    to.addAll(name.size > 0 ? "; " : ";");
+                    to.addSome(letters, name.from, name.size);
+                    break;
+                case PIECE:
+                    to.add(SHARED + 2 * worth + 1);
                     break;
                 default:
                     break;
             }
         }
 
-        void writeName(Name name, Text to) {
-            to.addPiece(letters, name.from, name.size);
+        long lengthOfToken(int token) {
+            int worth = token >> 3;
+            switch (token & 7) {
+                case NAME:
+                    return named(worth).length;
+                case LOCAL:
+                    return named(worth).length + 1;
+                case PARAMETER:
+                    return 2;
+                case NUMBER:
+                    return worth > 9999 ? 5 : worth > 999 ? 4 : worth > 99 ? 3 : worth > 9 ? 2 : 1;
+                case REMARK:
+                    return named(worth).size > 0 ? named(worth).length + 2 : 1;
+                case PIECE:
+                    return pieceAt(worth).length;
+                default:
+                    return 1;
+            }
+        }
+
+        void writeName(Name name, Codes to) {
+            to.addSome(letters, name.from, name.size);
+        }
+
+        // ---- texts
+
+        long lengthOf(Codes text) {
+            measure(text, 0, text.size());
+            return measured.length;
+        }
+
+        /** What d of promise 41 becomes by all signs of a text. */
+        long mixed(long d, Codes text) {
+            measure(text, 0, text.size());
+            return d * power(31, measured.length, 0) + measured.sum;
+        }
+
+        private long lengthOfCode(int code) {
+            if (code < SHARED) {
+                return 1;
+            }
+            return isPiece(code) ? pieceAt(code - SHARED >> 1).length : named(code - SHARED >> 1).length;
+        }
+
+        /** Writes what a NAME or PIECE in a text stands for, which may be others of these again. */
+        private void spell(int code, Codes to) {
+            int number = code - SHARED >> 1;
+            to.cutTo(0);
+            if (isPiece(code)) {
+                writeSome(pieceAt(number).from, pieceAt(number).size, NONE, to);
+            } else {
+                to.addSome(letters, named(number).from, named(number).size);
+            }
+        }
+
+        private void unfold(Codes text, int at) {
+            spell(text.at(at), scrap);
+            text.replace(at, scrap, 0, scrap.size());
+        }
+
+        /** A text that is short stands as its signs alone: any sign may be put in then. */
+        void spellShort(Codes text) {
+            if (lengthOf(text) >= MOST_WRITTEN) {
+                return;
+            }
+            int at = 0;
+            for (long step = 0; step < MOST_WALKED && at < text.size(); step++) {
+                if (text.at(at) >= SHARED) {
+                    spell(text.at(at), scrap);
+                    text.replace(at, scrap, 0, scrap.size());
+                } else {
+                    at++;
+                }
+            }
+        }
+
+        /** Leaves in a text that is to be kept nothing that the next source wipes. */
+        void spellUnkept(Codes text) {
+            int at = 0;
+            for (long step = 0; step < MOST_WALKED && at < text.size(); step++) {
+                int code = text.at(at);
+                int kept = isPiece(code) ? keptPieces : keptNames;
+                if (code >= SHARED && code - SHARED >> 1 >= kept) {
+                    unfold(text, at);
+                } else {
+                    at++;
+                }
+            }
+        }
+
+        /** Whether two texts have the same signs; they may be written out further then. */
+        boolean areSame(Codes text, Codes other) {
+            int at = 0;
+            for (long step = 0; step < MOST_WALKED && (at < text.size() || at < other.size()); step++) {
+                int code = text.at(at);
+                int its = other.at(at);
+                if (code == its) {
+                    at++;
+                } else if (code < SHARED && its < SHARED) {
+                    return false;
+                } else if (code >= SHARED && (its < SHARED || lengthOfCode(code) >= lengthOfCode(its))) {
+                    unfold(text, at);
+                } else {
+                    unfold(other, at);
+                }
+            }
+            return true;
+        }
+
+        /** The place of the code that stands at a column, which is a sign then. */
+        int openAt(Codes text, long column) {
+            long left = column;
+            int at = 0;
+            for (long step = 0; step < MOST_WALKED && at < text.size(); step++) {
+                int code = text.at(at);
+                long length = lengthOfCode(code);
+                if (left >= length) {
+                    left -= length;
+                    at++;
+                } else if (code < SHARED) {
+                    break;
+                } else {
+                    unfold(text, at);
+                }
+            }
+            return at;
+        }
+
+        /** What comes together at a place may be one TOKEN now: no PIECE may end or begin in it. */
+        void close(Codes text, int place) {
+            int at = place;
+            for (long step = 0; step < MOST_WALKED && at > 0 && at < text.size(); step++) {
+                if (!endsInWord(text.at(at - 1)) || !beginsInWord(text.at(at))) {
+                    return;
+                }
+                if (isPiece(text.at(at - 1))) {
+                    int size = text.size();
+                    unfold(text, at - 1);
+                    at += text.size() - size;
+                } else if (isPiece(text.at(at))) {
+                    unfold(text, at);
+                } else {
+                    return;
+                }
+            }
+        }
+
+        private boolean endsInWord(int code) {
+            return isPiece(code) ? (pieceAt(code - SHARED >> 1).last & 7) <= NUMBER : isOfWord(code);
+        }
+
+        private boolean beginsInWord(int code) {
+            return isPiece(code) ? (pieceAt(code - SHARED >> 1).first & 7) <= NUMBER : isOfWord(code);
+        }
+
+        int signAt(Codes text, long column) {
+            long left = column;
+            int at = 0;
+            Codes level = text;
+            for (long step = 0; step < MOST_WALKED && at < level.size(); step++) {
+                int code = level.at(at);
+                long length = lengthOfCode(code);
+                if (left >= length) {
+                    left -= length;
+                    at++;
+                } else if (code < SHARED) {
+                    return code;
+                } else {
+                    spell(code, scrap);
+                    level = scrap;
+                    at = 0;
+                }
+            }
+            return 0;
+        }
+
+        /** Writes the first signs of a text. */
+        void tell(Codes text, StringBuilder to, int size) {
+            to.setLength(size);
+            pending.cutTo(0);
+            int place = 0;
+            int at = 0;
+            for (long step = 0; step < MOST_WALKED && place < size; step++) {
+                int code = pending.size() > 0 ? pending.takeOut(pending.size() - 1) : text.at(at++);
+                if (code < SHARED) {
+                    to.setCharAt(place, (char) code);
+                    place++;
+                } else {
+                    spell(code, scrap);
+                    for (int i = scrap.size() - 1; i >= 0; i--) {
+                        pending.add(scrap.at(i));
+                    }
+                }
+            }
         }
     }
 
     /** Reads EXPRESSIONS and reckons them. */
     private static final class Reckoner {
-        private static final int MOST_WAITING = 32;
+        // What waits, by how tightly it binds: "(", + and -, * and /, a "-" before a FACTOR; the place tells the sign.
+        private static final String OPERATIONS = " (+-*/-";
+        private static final int OPEN = 1;
+        private static final int ADD = 2;
+        private static final int MULTIPLY = 4;
+        private static final int MINUS = 6;
+        // At most "+", "*" and "(" three times, then "+" and "*" wait, and a number on the left of each + and *.
+        private static final int MOST_WAITING = 12;
+        private static final int MOST_NUMBERS = 10;
+        // What is remembered of a PIECE: what waited when it was begun, and what waited when it was left.
+        private static final int SLOTS = 512;
+        private static final int MOST_VISITS = 1 << 30;
+        private static final int PIECE_BEGUN = 0;
+        private static final int VISIT = 1;
+        private static final int IS_LEFT = 2;
+        private static final int WAITING_THEN = 3;
+        private static final int COUNT_THEN = 4;
+        private static final int NUMBERS_THEN = 5;
+        private static final int LEAST_WAITING = NUMBERS_THEN + MOST_NUMBERS;
+        private static final int WAITING_NOW = LEAST_WAITING + 1;
+        private static final int WAITING_COUNT_NOW = LEAST_WAITING + 2;
+        private static final int WANTS_NOW = LEAST_WAITING + 3;
+        private static final int COUNT_NOW = LEAST_WAITING + 4;
+        private static final int NUMBERS_NOW = LEAST_WAITING + 5;
+        private static final int PLACES_NOW = NUMBERS_NOW + MOST_NUMBERS;
+        private static final int SLOT_SIZE = PLACES_NOW + MOST_WAITING;
+
         private final Tokens tokens = new Tokens();
-        // In the order in which they are reckoned: 2 * place in the row, and 1 more for a "-" before a FACTOR.
-        private final Ints steps = new Ints();
-        private final int[] waiting = new int[MOST_WAITING];
-        private int waitingCount;
-        private int inside;
-        private final int[] numbers = new int[MOST_WAITING];
-        private final int[] bases = new int[MOST_WAITING];
-        private int count;
+        private int from;
+        private int to;
         private int missCode;
-        private int missPlace;
+        private long missPlace;
+        // The numbers that wait, each with its BASE: 65536 * number + BASE + 1.
+        private final long[] numbers = new long[MOST_NUMBERS];
+        private int count;
+        // What waits, three bits each, the last one lowest; and where each of it stands.
+        private long waiting;
+        private int waitingCount;
+        private int leastWaiting;
+        private final long[] places = new long[MOST_WAITING];
+        private boolean wants;
+        private long place;
+        private final Codes visited = new Codes();
+        private int visits;
+        private int firstVisit;
+        private long[] remembered;
 
         int missCode() {
             return missCode;
         }
 
-        int missPlace() {
+        long missPlace() {
             return missPlace;
         }
 
         int number() {
-            return count > 0 && count <= MOST_WAITING ? numbers[count - 1] : 0;
+            return count > 0 && count <= MOST_NUMBERS ? (int) (numbers[count - 1] >> 16) : 0;
         }
 
         int base() {
-            return count > 0 && count <= MOST_WAITING ? bases[count - 1] : NONE;
+            return count > 0 && count <= MOST_NUMBERS ? (int) (numbers[count - 1] & 65535) - 1 : NONE;
         }
 
-        private int miss(int code, int place) {
+        private int miss(int code, long itsPlace) {
             missCode = code;
-            missPlace = place;
+            missPlace = itsPlace;
             return NONE;
         }
 
-        /** Reads the EXPRESSION that begins at a place; answers the place behind it, or NONE with a fault. */
-        int parse(Row row, int from) {
-            steps.cutTo(0);
-            waitingCount = 0;
-            inside = 0;
-            int parens = 0;
-            boolean wantsFactor = true;
-            for (int place = from; place < row.count; place++) {
-                int token = tokens.tokenAt(row, place);
-                int kind = token & 7;
-                int sign = kind == SIGN ? token >> 3 : 0;
-                if (wantsFactor) {
-                    if (sign == '(' || sign == '-') {
-                        if (inside >= MOST_INSIDE) {
-                            return miss(FAULT_DEEP, place);
-                        }
-                        inside++;
-                        parens += sign == '(' ? 1 : 0;
-                        hold(place, sign == '(' ? RANK_OPEN : RANK_MINUS);
-                    } else if (kind == NUMBER || kind == NAME || sign == '.') {
-                        steps.add(place * 2);
-                        wantsFactor = false;
-                    } else {
-                        return miss(FAULT_LINE, place);
-                    }
-                } else if (sign == ')' && parens > 0) {
-                    release(RANK_ADD);
-                    waitingCount--;
-                    inside--;
-                    parens--;
-                } else if (rankOf(sign) != RANK_OPEN) {
-                    release(rankOf(sign));
-                    hold(place, rankOf(sign));
-                    wantsFactor = true;
+        // ---- reading
+
+        /**
+         * Goes one TOKEN further in an EXPRESSION. Told are, as bits: a 1, then of what is open 0 for a "(" and 1 for
+         * a "-" (three at most), then 1 if a FACTOR must follow. 0 is told where it cannot go on so.
+         */
+        static int step(int state, int token) {
+            int open = state >> 1;
+            int sign = (token & 7) == SIGN ? token >> 3 : 0;
+            if (open == 0) {
+                return 0;
+            }
+            if ((state & 1) != 0) {
+                if (sign == '(' || sign == '-') {
+                    return open >= 1 << MOST_INSIDE ? 0 : (open * 2 + (sign == '-' ? 1 : 0)) * 2 + 1;
+                }
+                if (sign != '.' && (token & 7) != NUMBER && (token & 7) != NAME) {
+                    return 0;
+                }
+            } else {
+                if (sign == '+' || sign == '-' || sign == '*' || sign == '/') {
+                    return state + 1;
+                }
+                if (sign != ')' || open == 1) {
+                    return 0;
+                }
+                open >>= 1;
+            }
+            // A FACTOR is there: each "-" before it is no longer open.
+            while (open > 1 && (open & 1) != 0) {
+                open >>= 1;
+            }
+            return open * 2;
+        }
+
+        /** Reads the EXPRESSION that begins at a place of a row; answers where it ends, or NONE with a fault. */
+        int parse(Row row, int begin) {
+            int state = 3;
+            from = begin;
+            for (to = begin; to < row.count; to++) {
+                int token = tokens.tokenAt(row, to);
+                int next = tokens.stateAfter(state, token);
+                if (next == 0) {
+                    boolean ends = isWhole(state) && (token & 7) != PIECE;
+                    return ends ? to : missIn(row, state, tokens.placeOf(row, to));
+                }
+                state = next;
+            }
+            return isWhole(state) ? to : miss(FAULT_LINE, tokens.placeOf(row, to));
+        }
+
+        /** Whether an EXPRESSION may end there. */
+        private static boolean isWhole(int state) {
+            return state == 2;
+        }
+
+        /** Finds the TOKEN where a parse could not go on. */
+        private int missIn(Row row, int begun, long firstPlace) {
+            int state = begun;
+            int at = row.start + to;
+            int end = row.start + row.count;
+            long itsPlace = firstPlace;
+            for (long step = 0; step < MOST_WALKED && at < end; step++) {
+                int token = tokens.all.at(at);
+                Piece inner = (token & 7) == PIECE ? tokens.pieceAt(token >> 3) : null;
+                int next = inner == null ? step(state, token) : inner.stateAfter(state);
+                if (next != 0) {
+                    state = next;
+                    itsPlace += inner == null ? 1 : inner.tokens;
+                    at++;
+                } else if (inner != null) {
+                    at = inner.from;
+                    end = at + inner.size;
                 } else {
-                    release(RANK_ADD);
-                    return parens > 0 ? miss(FAULT_LINE, place) : place;
+                    boolean opens = token == '(' * 8 + SIGN || token == '-' * 8 + SIGN;
+                    return miss(opens && (state & 1) != 0 ? FAULT_DEEP : FAULT_LINE, itsPlace);
                 }
             }
-            release(RANK_ADD);
-            return wantsFactor || parens > 0 ? miss(FAULT_LINE, row.count) : row.count;
+            return miss(FAULT_LINE, itsPlace);
         }
 
-        /** How tightly a sign joins what is on its sides; RANK_OPEN where it joins nothing. */
-        private static int rankOf(int sign) {
-            if (sign == '+' || sign == '-') {
-                return RANK_ADD;
-            }
-            return sign == '*' || sign == '/' ? RANK_MULTIPLY : RANK_OPEN;
-        }
-
-        private void hold(int place, int rank) {
-            if (waitingCount >= 0 && waitingCount < MOST_WAITING) {
-                waiting[waitingCount] = place * 4 + rank;
-                waitingCount++;
-            }
-        }
-
-        /** What waits and binds at least so tightly has both its sides now: it is reckoned next. */
-        private void release(int rank) {
-            while (waitingCount > 0 && waitingCount <= MOST_WAITING && (waiting[waitingCount - 1] & 3) >= rank) {
-                waitingCount--;
-                int held = waiting[waitingCount];
-                boolean minus = (held & 3) == RANK_MINUS;
-                inside -= minus ? 1 : 0;
-                steps.add((held >> 2) * 2 + (minus ? 1 : 0));
-            }
-        }
+        // ---- reckoning
 
         /**
          * Reckons what was read last; answers whether there was no fault. It is reckoned by KNOWN NAMES alone, or by
          * the SYMBOLS for a FLAT line at that OFFSET in that PART.
          */
         boolean reckon(Row row, boolean known, int offset, int part) {
-            count = 0;
-            for (int i = 0; i < steps.size(); i++) {
-                int place = steps.at(i) >> 1;
-                int token = tokens.tokenAt(row, place);
-                int code = 0;
-                if ((steps.at(i) & 1) != 0) {
-                    code = negate();
-                } else if ((token & 7) == NUMBER) {
-                    push(token >> 3, NONE);
-                } else if ((token & 7) == NAME) {
-                    Name name = tokens.named(token >> 3);
-                    if (known) {
-                        code = name.known == LET_KNOWN ? 0 : FAULT_KNOWN;
-                        push(name.told, NONE);
-                    } else {
-                        code = name.ready ? 0 : FAULT_UNKNOWN;
-                        push(name.number, name.base);
-                    }
-                } else if (token >> 3 != '.') {
-                    code = join(token >> 3);
-                } else {
-                    code = known ? FAULT_KNOWN : 0;
-                    push(offset, part);
+            forget();
+            place = tokens.placeOf(row, from);
+            int at = row.start + from;
+            int end = row.start + to;
+            for (long step = 0; step < MOST_WALKED && (at < end || visited.size() > 0); step++) {
+                if (at >= end) {
+                    end = visited.takeOut(visited.size() - 1);
+                    at = visited.takeOut(visited.size() - 1);
+                    leave();
+                    continue;
                 }
-                if (code != 0) {
-                    miss(code, place);
-                    return false;
+                int token = tokens.all.at(at);
+                at++;
+                if ((token & 7) != PIECE) {
+                    missCode = endsProduct(token) ? settle(ADD) : 0;
+                    missCode = missCode == 0 ? take(token, known, offset, part) : missCode;
+                    missCode = missCode == 0 && !wants ? settle(MULTIPLY) : missCode;
+                    if (missCode != 0) {
+                        return false;
+                    }
+                    place++;
+                } else if (!recall(token >> 3)) {
+                    visited.add(at);
+                    visited.add(end);
+                    at = tokens.pieceAt(token >> 3).from;
+                    end = at + tokens.pieceAt(token >> 3).size;
                 }
             }
-            return true;
+            missCode = settle(ADD);
+            return missCode == 0;
         }
 
         void forget() {
             count = 0;
+            waiting = 0;
+            waitingCount = 0;
+            wants = true;
+            place = 0;
+            visited.cutTo(0);
+            if (visits > MOST_VISITS) {
+                remembered = null;
+                visits = 0;
+            }
+            firstVisit = visits;
+        }
+
+        private boolean endsProduct(int token) {
+            return !wants && (token == '+' * 8 + SIGN || token == '-' * 8 + SIGN || token == ')' * 8 + SIGN);
+        }
+
+        /** Takes a TOKEN in; answers the code of the fault. */
+        private int take(int token, boolean known, int offset, int part) {
+            int worth = token >> 3;
+            missPlace = place;
+            if ((token & 7) == NUMBER) {
+                push(worth, NONE);
+            } else if ((token & 7) == NAME) {
+                Name name = tokens.named(worth);
+                push(known ? name.told : name.number, known ? NONE : name.base);
+                return known ? name.known == LET_KNOWN ? 0 : FAULT_KNOWN : name.ready ? 0 : FAULT_UNKNOWN;
+            } else if (worth == '.') {
+                push(offset, part);
+                return known ? FAULT_KNOWN : 0;
+            } else if (worth == ')') {
+                drop();
+            } else if (wants) {
+                hold(worth == '(' ? OPEN : MINUS);
+            } else {
+                hold(OPERATIONS.indexOf((char) worth));
+                wants = true;
+            }
+            return 0;
+        }
+
+        private void hold(int operation) {
+            if (waitingCount >= 0 && waitingCount < MOST_WAITING) {
+                places[waitingCount] = place;
+                waiting = waiting << 3 | operation;
+                waitingCount++;
+            }
+        }
+
+        private void drop() {
+            if (waitingCount > 0) {
+                waiting >>= 3;
+                waitingCount--;
+                leastWaiting = Math.min(leastWaiting, waitingCount);
+            }
+        }
+
+        /** Reckons what waits last and binds at least so tightly; answers the code of the fault. */
+        private int settle(int least) {
+            int code = 0;
+            while (code == 0 && waitingCount > 0 && waitingCount <= MOST_WAITING && (waiting & 7) >= least) {
+                int operation = (int) waiting & 7;
+                missPlace = places[waitingCount - 1];
+                drop();
+                code = operation == MINUS ? negate() : join(OPERATIONS.charAt(operation));
+            }
+            return code;
         }
 
         void push(int number, int base) {
-            if (count >= 0 && count < MOST_WAITING) {
-                numbers[count] = number;
-                bases[count] = base;
+            wants = false;
+            if (count >= 0 && count < MOST_NUMBERS) {
+                numbers[count] = ((long) number << 16) + base + 1;
                 count++;
             }
         }
 
         /** Reckons a "-" before a FACTOR; answers the code of the fault. */
         int negate() {
-            if (count < 1 || count > MOST_WAITING) {
+            if (count < 1 || count > MOST_NUMBERS) {
                 return 0;
             }
-            numbers[count - 1] = -numbers[count - 1];
-            return bases[count - 1] != NONE ? FAULT_BASE : 0;
+            long value = numbers[count - 1];
+            numbers[count - 1] = -(value >> 16) << 16;
+            return (value & 65535) != 0 ? FAULT_BASE : 0;
         }
 
         /** Reckons what a sign joins; answers the code of the fault. */
         int join(int sign) {
-            if (count < 2 || count > MOST_WAITING) {
+            if (count < 2 || count > MOST_NUMBERS) {
                 return 0;
             }
             count--;
-            int leftBase = bases[count - 1];
-            int rightBase = bases[count];
-            if (sign == '+' ? leftBase != NONE && rightBase != NONE
-                : sign == '-' ? rightBase != NONE && rightBase != leftBase : leftBase != NONE || rightBase != NONE) {
+            long leftBase = numbers[count - 1] & 65535;
+            long rightBase = numbers[count] & 65535;
+            if (sign == '+' ? leftBase != 0 && rightBase != 0
+                : sign == '-' ? rightBase != 0 && rightBase != leftBase : leftBase != 0 || rightBase != 0) {
                 return FAULT_BASE;
             }
-            long left = numbers[count - 1];
-            long right = numbers[count];
+            long left = numbers[count - 1] >> 16;
+            long right = numbers[count] >> 16;
             if (sign == '/' && right == 0) {
                 return FAULT_ZERO;
             }
@@ -1670,11 +2474,101 @@ public final class Twopassworks {
             if (number > MOST_NUMBER || number < -MOST_NUMBER) {
                 return FAULT_RANGE;
             }
-            numbers[count - 1] = (int) number;
-            if (rightBase != NONE) {
-                bases[count - 1] = sign == '-' ? NONE : rightBase;
-            }
+            long base = rightBase == 0 ? leftBase : sign == '-' ? 0 : rightBase;
+            numbers[count - 1] = (number << 16) + base;
             return 0;
+        }
+
+        // ---- what PIECES make of what waits: each is gone through once for the same numbers that wait
+
+        /** Makes what a PIECE makes of what waits now, if that is remembered; otherwise the PIECE is begun. */
+        private boolean recall(int piece) {
+            int slot = slotOf(piece);
+            if (!isRemembered(slot, piece)) {
+                visits++;
+                visited.add(slot);
+                visited.add(visits);
+                visited.add(leastWaiting);
+                begin(slot, piece);
+                return false;
+            }
+            int kept = (int) remembered[slot + LEAST_WAITING];
+            waiting = remembered[slot + WAITING_NOW];
+            waitingCount = (int) remembered[slot + WAITING_COUNT_NOW];
+            leastWaiting = Math.min(leastWaiting, kept);
+            for (int i = Math.max(kept, 0); i < waitingCount && i < MOST_WAITING; i++) {
+                places[i] = place + remembered[slot + PLACES_NOW + i];
+            }
+            wants = remembered[slot + WANTS_NOW] != 0;
+            count = (int) remembered[slot + COUNT_NOW];
+            for (int i = 0; i < count && i < MOST_NUMBERS; i++) {
+                numbers[i] = remembered[slot + NUMBERS_NOW + i];
+            }
+            place = Math.min(place + tokens.pieceAt(piece).tokens, MOST_COUNTED);
+            return true;
+        }
+
+        /** Where it is remembered what a PIECE makes of what waits now. */
+        private int slotOf(int piece) {
+            if (remembered == null) {
+                remembered = new long[SLOTS * SLOT_SIZE];
+            }
+            long mixed = piece * 31L + waiting;
+            for (int i = 0; i < count && i < MOST_NUMBERS; i++) {
+                mixed = mixed * 1000003 + numbers[i];
+            }
+            mixed ^= mixed >>> 32;
+            return ((int) (mixed ^ mixed >>> 13) & SLOTS - 1) * SLOT_SIZE;
+        }
+
+        private boolean isRemembered(int slot, int piece) {
+            if (remembered[slot + IS_LEFT] == 0 || remembered[slot + VISIT] <= firstVisit
+                || remembered[slot + PIECE_BEGUN] != piece || remembered[slot + WAITING_THEN] != waiting
+                || remembered[slot + COUNT_THEN] != count) {
+                return false;
+            }
+            for (int i = 0; i < count && i < MOST_NUMBERS; i++) {
+                if (remembered[slot + NUMBERS_THEN + i] != numbers[i]) {
+                    return false;
+                }
+            }
+            return true;
+        }
+
+        private void begin(int slot, int piece) {
+            remembered[slot + PIECE_BEGUN] = piece;
+            remembered[slot + VISIT] = visits;
+            remembered[slot + IS_LEFT] = 0;
+            remembered[slot + WAITING_THEN] = waiting;
+            remembered[slot + COUNT_THEN] = count;
+            for (int i = 0; i < count && i < MOST_NUMBERS; i++) {
+                remembered[slot + NUMBERS_THEN + i] = numbers[i];
+            }
+            leastWaiting = waitingCount;
+        }
+
+        /** Remembers what the PIECE begun last made of what waited then. */
+        private void leave() {
+            int outer = visited.takeOut(visited.size() - 1);
+            int visit = visited.takeOut(visited.size() - 1);
+            int slot = visited.takeOut(visited.size() - 1);
+            // Another PIECE may have been begun in its slot meanwhile.
+            if (slot >= 0 && slot <= remembered.length - SLOT_SIZE && remembered[slot + VISIT] == visit) {
+                long begun = place - tokens.pieceAt((int) remembered[slot + PIECE_BEGUN]).tokens;
+                remembered[slot + IS_LEFT] = 1;
+                remembered[slot + LEAST_WAITING] = leastWaiting;
+                remembered[slot + WAITING_NOW] = waiting;
+                remembered[slot + WAITING_COUNT_NOW] = waitingCount;
+                remembered[slot + WANTS_NOW] = wants ? 1 : 0;
+                remembered[slot + COUNT_NOW] = count;
+                for (int i = 0; i < count && i < MOST_NUMBERS; i++) {
+                    remembered[slot + NUMBERS_NOW + i] = numbers[i];
+                }
+                for (int i = Math.max(leastWaiting, 0); i < waitingCount && i < MOST_WAITING; i++) {
+                    remembered[slot + PLACES_NOW + i] = places[i] - begun;
+                }
+            }
+            leastWaiting = Math.min(leastWaiting, outer);
         }
     }
 
@@ -1693,6 +2587,10 @@ public final class Twopassworks {
         private int target;
         private boolean pooled;
         private int literal;
+        // Which SYMBOLS its EXPRESSIONS have, and whether a NAME that is none.
+        private long usedLow;
+        private long usedHigh;
+        private boolean unknown;
         private final int[] numbers = new int[MOST_EXPRESSIONS];
         private final int[] bases = new int[MOST_EXPRESSIONS];
 
@@ -1756,13 +2654,12 @@ public final class Twopassworks {
         private int macros;
         private int part;
         private int expressions;
-        // Where each argument of the last macro call begins among all TOKENS, and where one more would.
-        private final int[] argumentsFrom = new int[MOST_ARGUMENTS + 1];
-        private int arguments;
+        // Where each argument of the last macro call begins and ends among all TOKENS.
+        private final Codes arguments = new Codes();
         private int faultCode;
         private Row faultRow;
         private int faultLine;
-        private int faultPlace;
+        private long faultPlace;
         private final Row noRow = new Row();
         private final Flat noFlat = new Flat();
 
@@ -1774,13 +2671,8 @@ public final class Twopassworks {
             return faultLine;
         }
 
-        /** The column of the fault; the text is one to write in. */
-        int faultColumn(Text scrap) {
-            if (faultRow == null) {
-                return faultPlace;
-            }
-            tokens.writeForm(faultRow, faultPlace, scrap);
-            return scrap.size();
+        long faultColumn() {
+            return faultRow == null ? faultPlace : tokens.find(faultRow, faultPlace, true);
         }
 
         int flatCount() {
@@ -1799,13 +2691,14 @@ public final class Twopassworks {
             return at >= 0 && at < flatCount && at < flats.size() ? flats.get(at) : noFlat;
         }
 
-        void writeFlat(int at, Text to) {
+        void writeFlat(int at, Codes to) {
             Row row = flatAt(at).row;
-            to.wipe();
-            tokens.addForm(row, row.count, to);
+            to.cutTo(0);
+            tokens.writeSome(row.start, row.count, tokens.orderPlace(row), to);
         }
 
-        void fail(int code, Row row, int place) {
+        /** A fault at the TOKEN at a place of a row, all TOKENS being counted. */
+        void fail(int code, Row row, long place) {
             faultCode = code;
             faultRow = row;
             faultLine = row.line;
@@ -1813,16 +2706,19 @@ public final class Twopassworks {
         }
 
         /** A fault that is not of a row of TOKENS. */
-        void failAt(int code, int line, int column) {
+        void failAt(int code, int line, long column) {
             faultCode = code;
             faultRow = null;
             faultLine = line;
             faultPlace = column;
         }
 
-        /** Makes the FLAT lines of a source, with another text in place of one of its lines (or of none). */
-        void expand(Text[] lines, int count, int replaced, Text other) {
+        /** Makes the FLAT lines of a lender's texts, with another text in place of one of them (or of none). */
+        void expand(Codes[] lines, int count, int replaced, Codes other, Tokens lender) {
             tokens.restart();
+            if (lender.mark(lines, count)) {
+                tokens.borrow(lender);
+            }
             rowCount = 0;
             flatCount = 0;
             depth = 0;
@@ -1832,9 +2728,9 @@ public final class Twopassworks {
             noFlat.begin(noRow, 0, 0);
             failAt(0, NONE, 0);
             for (int i = 0; i < count && i < lines.length && faultCode == 0; i++) {
-                Text text = i == replaced ? other : lines[i];
+                Codes text = i == replaced ? other : lines[i];
                 if (text != null) {
-                    addLine(tokens.read(text), i);
+                    addLine(tokens.read(i == replaced ? text : tokens.lent(text)), i);
                 }
             }
             Frame frame = pushFrame(noRow, 0);
@@ -1865,7 +2761,7 @@ public final class Twopassworks {
             }
             Row row = addRow(tokens.size() - count, count, line);
             // A REMARK is left out at once: it is the last TOKEN and moves no COLUMN ahead of it.
-            if (tokens.kindAt(row, count - 1) == REMARK) {
+            if (tokens.kindAt(row, row.count - 1) == REMARK) {
                 row.count--;
             }
         }
@@ -1882,6 +2778,7 @@ public final class Twopassworks {
             row.start = start;
             row.count = count;
             row.line = line;
+            tokens.openHead(row);
             row.word = tokens.wordAt(row, tokens.orderPlace(row));
             return row;
         }
@@ -1931,26 +2828,25 @@ public final class Twopassworks {
         private void makeReady(Row row, Frame frame) {
             int start = tokens.size();
             boolean changes = false;
-            for (int place = 0; place < row.count; place++) {
-                int kind = tokens.kindAt(row, place);
-                int worth = tokens.worthAt(row, place);
-                if (kind == PARAMETER && frame.called) {
-                    if (worth < 1 || worth > arguments || worth > MOST_ARGUMENTS) {
-                        fail(FAULT_ARGUMENT, row, place);
+            for (int at = 0; at < row.count; at++) {
+                int token = tokens.tokenAt(row, at);
+                int worth = token >> 3;
+                if ((token & 7) == PARAMETER && frame.called) {
+                    if (worth < 1 || 2 * worth > arguments.size()) {
+                        fail(FAULT_ARGUMENT, row, tokens.placeOf(row, at));
                         return;
                     }
-                    tokens.addAgain(argumentsFrom[worth - 1], argumentsFrom[worth] - 1);
+                    tokens.addAgain(arguments.at(2 * worth - 2), arguments.at(2 * worth - 1));
                     changes = true;
-                } else if (kind == LOCAL) {
-                    tokens.add(NAME, tokens.localName(worth, frame.expansion));
+                } else if ((token & 7) == LOCAL) {
+                    Codes text = tokens.localText(worth, frame.expansion);
+                    tokens.add(tokens.nameOf(text, 0, text.size()) * 8 + NAME);
                     changes = true;
                 } else {
-                    tokens.add(kind, worth);
+                    tokens.add(token);
                 }
             }
-            if (tokens.isFull()) {
-                fail(FAULT_LONG, row, 0);
-            } else if (changes) {
+            if (changes) {
                 addRow(start, tokens.size() - start, row.line);
             } else {
                 tokens.cutTo(start);
@@ -1963,9 +2859,9 @@ public final class Twopassworks {
             if (frame.expansion == 0) {
                 tokens.nameLocals(row, 0);
             }
-            int parameter = tokens.firstOf(row, PARAMETER);
+            int parameter = tokens.firstOfKind(row, PARAMETER);
             if (parameter != NONE) {
-                fail(FAULT_ARGUMENT, row, parameter);
+                fail(FAULT_ARGUMENT, row, tokens.placeOf(row, parameter));
                 return;
             }
             int order = tokens.orderPlace(row);
@@ -2061,7 +2957,7 @@ public final class Twopassworks {
                 }
                 at++;
             }
-            fail(FAULT_LINE, row, at);
+            fail(FAULT_LINE, row, tokens.placeOf(row, at));
             return false;
         }
 
@@ -2159,23 +3055,30 @@ public final class Twopassworks {
                 body.to = name.bodyTo;
                 body.rounds = 1;
                 body.called = true;
+                // A long argument becomes one PIECE, which then stands for each PARAMETER.
+                for (int i = 0; i < arguments.size(); i += 2) {
+                    int size = arguments.at(i + 1) - arguments.at(i);
+                    if (tokens.isWorthSharing(arguments.at(i), size)) {
+                        arguments.set(i, tokens.share(arguments.at(i), size));
+                        arguments.set(i + 1, arguments.at(i) + 1);
+                    }
+                }
             }
         }
 
         private boolean argumentsAreRight(Row row, int from) {
             int begin = from;
-            arguments = 0;
-            argumentsFrom[0] = row.start + from;
-            for (int place = from; place <= row.count && row.count > from; place++) {
-                boolean ends = place == row.count || tokens.isSign(row, place, ',');
-                if (ends ? place == begin : arguments >= MOST_ARGUMENTS) {
-                    fail(FAULT_LINE, row, place);
+            arguments.cutTo(0);
+            for (int at = from; at <= row.count && row.count > from; at++) {
+                boolean ends = at == row.count || tokens.isSign(row, at, ',');
+                if (ends ? at == begin : arguments.size() >= 2 * MOST_ARGUMENTS) {
+                    fail(FAULT_LINE, row, tokens.placeOf(row, at));
                     return false;
                 }
-                if (ends && arguments < MOST_ARGUMENTS) {
-                    begin = place + 1;
-                    arguments++;
-                    argumentsFrom[arguments] = row.start + begin;
+                if (ends) {
+                    arguments.add(row.start + begin);
+                    arguments.add(row.start + at);
+                    begin = at + 1;
                 }
             }
             return true;
@@ -2278,10 +3181,10 @@ public final class Twopassworks {
         private final int[] start = new int[PARTS];
         private final int[] size = new int[PARTS];
         private final int[] cells = new int[PARTS * MOST_LENGTH];
-        private final Ints moveAddresses = new Ints();
-        private final Ints moveKinds = new Ints();
-        private final Ints moveBases = new Ints();
-        private final Ints moveNumbers = new Ints();
+        private final Codes moveAddresses = new Codes();
+        private final Codes moveKinds = new Codes();
+        private final Codes moveBases = new Codes();
+        private final Codes moveNumbers = new Codes();
 
         void wipe() {
             Arrays.fill(start, 0);
@@ -2454,15 +3357,19 @@ public final class Twopassworks {
         private final Name[] symbols = new Name[MOST_LINES];
         private final Name nobody = new Name();
         private int symbolCount;
+        // The SYMBOLS that have no VALUE yet.
+        private long waitingLow;
+        private long waitingHigh;
+        private final Piece found = new Piece();
         private int passes;
         private final int[] code = new int[PARTS];
         private final int[] align = new int[PARTS];
         private final int[] origin = new int[PARTS];
         private final int[] literals = new int[PARTS];
-        private final Ints literalParts = new Ints();
-        private final Ints literalPlaces = new Ints();
-        private final Ints literalNumbers = new Ints();
-        private final Ints literalBases = new Ints();
+        private final Codes literalParts = new Codes();
+        private final Codes literalPlaces = new Codes();
+        private final Codes literalNumbers = new Codes();
+        private final Codes literalBases = new Codes();
 
         /** Goes on behind section 3, if that brought no fault. */
         void finish() {
@@ -2479,6 +3386,7 @@ public final class Twopassworks {
             }
             if (stands()) {
                 sortSymbols();
+                settleUses();
                 settleJumps();
                 settleSymbols();
                 reckonEquates();
@@ -2557,6 +3465,57 @@ public final class Twopassworks {
             }
             symbols[at] = name;
             symbolCount++;
+        }
+
+        /** Finds which SYMBOLS stand in each PIECE (these stand in ones of higher numbers) and each FLAT line. */
+        private void settleUses() {
+            for (int i = 0; i < symbolCount; i++) {
+                symbolAt(i).symbol = i;
+            }
+            Tokens tokens = expander.tokens;
+            for (int i = 0; i < tokens.pieceCount(); i++) {
+                Piece piece = tokens.pieceAt(i);
+                findUses(piece.from, piece.from + piece.size);
+                piece.usedLow = found.usedLow;
+                piece.usedHigh = found.usedHigh;
+                piece.unknown = found.unknown;
+            }
+            for (int i = 0; i < flatCount(); i++) {
+                Flat flat = expander.flatAt(i);
+                findUses(flat.row.start + flat.operands, flat.row.start + flat.row.count);
+                flat.usedLow = found.usedLow;
+                flat.usedHigh = found.usedHigh;
+                flat.unknown = found.unknown;
+            }
+        }
+
+        private void findUses(int from, int to) {
+            Tokens tokens = expander.tokens;
+            found.usedLow = 0;
+            found.usedHigh = 0;
+            found.unknown = false;
+            for (int at = from; at < to; at++) {
+                int token = tokens.all.at(at);
+                if ((token & 7) == PIECE) {
+                    Piece piece = tokens.pieceAt(token >> 3);
+                    found.usedLow |= piece.usedLow;
+                    found.usedHigh |= piece.usedHigh;
+                    found.unknown = found.unknown || piece.unknown;
+                } else if ((token & 7) == NAME) {
+                    int symbol = tokens.named(token >> 3).symbol;
+                    found.usedLow |= lowBit(symbol);
+                    found.usedHigh |= highBit(symbol);
+                    found.unknown = found.unknown || symbol == NONE;
+                }
+            }
+        }
+
+        private static long lowBit(int symbol) {
+            return symbol >= 0 && symbol < 64 ? 1L << symbol : 0;
+        }
+
+        private static long highBit(int symbol) {
+            return symbol >= 64 && symbol < 128 ? 1L << symbol - 64 : 0;
         }
 
         /** What a FLAT line takes, a jump as if it were SHORT. */
@@ -2655,6 +3614,8 @@ public final class Twopassworks {
         // ---- section 5
 
         private void settleSymbols() {
+            waitingLow = 0;
+            waitingHigh = 0;
             for (int i = 0; i < symbolCount; i++) {
                 Name name = symbolAt(i);
                 Flat flat = expander.flatAt(name.flat);
@@ -2664,6 +3625,9 @@ public final class Twopassworks {
                     name.become(0, WANTED_BASE + i);
                 } else if (name.kind == WEAK_ALONE) {
                     name.become(0, NONE);
+                } else {
+                    waitingLow |= lowBit(i);
+                    waitingHigh |= highBit(i);
                 }
             }
         }
@@ -2677,9 +3641,11 @@ public final class Twopassworks {
                     if (flat.word != LET || flat.label == null || flat.label.ready) {
                         continue;
                     }
-                    if (firstWaiting(flat) == NONE) {
+                    if (!waits(flat.usedLow, flat.usedHigh, flat.unknown)) {
                         reckonInto(flat, flat.operands, 0);
                         flat.label.become(flat.number(0), flat.base(0));
+                        waitingLow &= ~lowBit(flat.label.symbol);
+                        waitingHigh &= ~highBit(flat.label.symbol);
                         brought++;
                     } else if (left == null) {
                         left = flat;
@@ -2689,21 +3655,37 @@ public final class Twopassworks {
                     return;
                 }
                 if (brought == 0) {
-                    int place = firstWaiting(left);
-                    boolean known = expander.tokens.nameAt(left.row, place).kind != 0;
-                    expander.fail(known ? FAULT_ROUND : FAULT_UNKNOWN, left.row, place);
+                    failWaiting(left.row, left.operands);
                 }
             }
         }
 
-        /** The place of the first NAME in an EXPRESSION that cannot be reckoned yet, NONE without one. */
-        private int firstWaiting(Flat flat) {
-            for (int place = flat.operands; place < flat.row.count; place++) {
-                if (expander.tokens.kindAt(flat.row, place) == NAME && !expander.tokens.nameAt(flat.row, place).ready) {
-                    return place;
+        private boolean waits(long low, long high, boolean unknown) {
+            return unknown || (low & waitingLow) != 0 || (high & waitingHigh) != 0;
+        }
+
+        /** The first NAME from a place on that has no VALUE yet is a fault. */
+        private void failWaiting(Row row, int operands) {
+            Tokens tokens = expander.tokens;
+            long place = tokens.placeOf(row, operands);
+            int at = row.start + operands;
+            int end = row.start + row.count;
+            for (long step = 0; step < MOST_WALKED && at < end; step++) {
+                int token = tokens.all.at(at);
+                Piece piece = (token & 7) == PIECE ? tokens.pieceAt(token >> 3) : null;
+                if (piece != null && waits(piece.usedLow, piece.usedHigh, piece.unknown)) {
+                    at = piece.from;
+                    end = at + piece.size;
+                    continue;
                 }
+                if ((token & 7) == NAME && !tokens.named(token >> 3).ready) {
+                    boolean known = tokens.named(token >> 3).kind != 0;
+                    expander.fail(known ? FAULT_ROUND : FAULT_UNKNOWN, row, place);
+                    return;
+                }
+                place += piece == null ? 1 : piece.tokens;
+                at++;
             }
-            return NONE;
         }
 
         /** Reckons an EXPRESSION of a FLAT line; answers the place behind it. */
@@ -2735,7 +3717,7 @@ public final class Twopassworks {
                     int behind = reckonInto(flat, place, which);
                     int fault = stands() ? askedOf(flat, which) : 0;
                     if (fault != 0) {
-                        expander.fail(fault, flat.row, place);
+                        expander.fail(fault, flat.row, expander.tokens.placeOf(flat.row, place));
                     }
                     place = behind + 1;
                 }
@@ -2921,13 +3903,13 @@ public final class Twopassworks {
             return symbolCount;
         }
 
-        void writeSymbol(int at, Text to) {
-            to.wipe();
+        void writeSymbol(int at, Codes to) {
+            to.cutTo(0);
             expander.tokens.writeName(symbolAt(at), to);
         }
 
         /** The place of the SYMBOL of that NAME, NONE without one. */
-        int symbolNamed(Text text) {
+        int symbolNamed(Codes text) {
             for (int i = 0; i < symbolCount; i++) {
                 if (expander.tokens.isNamed(symbolAt(i), text)) {
                     return i;
@@ -2958,7 +3940,7 @@ public final class Twopassworks {
                 case 8:
                     return flat.shortable ? 1 : 0;
                 case 9:
-                    return flat.row.count;
+                    return clipped(expander.tokens.placeOf(flat.row, flat.row.count));
                 case 10:
                     return flat.number(0);
                 default:
@@ -2967,10 +3949,10 @@ public final class Twopassworks {
         }
 
         /** Writes a row of the listing. */
-        void writeListing(int at, Text to) {
+        void writeListing(int at, Codes to) {
             int address = factOfFlat(at, 6);
             int size = sizeAt(sizes, at);
-            to.wipe();
+            to.cutTo(0);
             to.addHex(address, 4);
             to.add(' ');
             for (int i = 0; i < size && i < LISTED_BYTES; i++) {
@@ -2978,7 +3960,7 @@ public final class Twopassworks {
             }
             to.addAll(size > LISTED_BYTES ? "+  " : "  ");
             Row row = expander.flatAt(at).row;
-            expander.tokens.addForm(row, row.count, to);
+            expander.tokens.writeSome(row.start, row.count, expander.tokens.orderPlace(row), to);
         }
 
         int factOfAll(int what) {
@@ -3054,18 +4036,9 @@ public final class Twopassworks {
             return users;
         }
 
-        boolean usesSymbol(int flat, int symbol) {
-            return isUsed(expander.flatAt(flat), symbolAt(symbol));
-        }
-
-        private boolean isUsed(Flat flat, Name name) {
-            Tokens tokens = expander.tokens;
-            for (int place = flat.operands; place < flat.row.count; place++) {
-                if (tokens.kindAt(flat.row, place) == NAME && tokens.nameAt(flat.row, place) == name) {
-                    return true;
-                }
-            }
-            return false;
+        boolean usesSymbol(int at, int symbol) {
+            Flat flat = expander.flatAt(at);
+            return (flat.usedLow & lowBit(symbol)) != 0 || (flat.usedHigh & highBit(symbol)) != 0;
         }
 
         /** The FLAT line at a place among those that USE a SYMBOL, NONE without one. */
@@ -3178,18 +4151,16 @@ public final class Twopassworks {
             int second = beginOf(stretch + 1);
             int end = beginOf(stretch + 2);
             for (int i = 0; i < symbolCount; i++) {
-                Name name = symbolAt(i);
-                if (isNameIn(name, first, second) && isNameIn(name, second, end)) {
+                if (isNameIn(i, first, second) && isNameIn(i, second, end)) {
                     return false;
                 }
             }
             return true;
         }
 
-        private boolean isNameIn(Name name, int from, int to) {
+        private boolean isNameIn(int symbol, int from, int to) {
             for (int i = from; i < to; i++) {
-                Flat flat = expander.flatAt(i);
-                if (flat.label == name || isUsed(flat, name)) {
+                if (expander.flatAt(i).label == symbolAt(symbol) || usesSymbol(i, symbol)) {
                     return true;
                 }
             }
@@ -3197,7 +4168,7 @@ public final class Twopassworks {
         }
 
         /** Writes the FORMS of all FLAT lines, a STRETCH and the next one exchanged; answers how many texts. */
-        int writeExchanged(int stretch, Text[] texts) {
+        int writeExchanged(int stretch, Codes[] texts) {
             int first = stretch == NONE ? 0 : beginOf(stretch);
             int second = stretch == NONE ? 0 : beginOf(stretch + 1);
             int end = stretch == NONE ? 0 : beginOf(stretch + 2);
@@ -3205,8 +4176,8 @@ public final class Twopassworks {
             int count = 0;
             for (int i = 0; i < flatCount(); i++) {
                 if (i == parting && stretch == 0) {
-                    Text text = textOf(texts, count);
-                    text.wipe();
+                    Codes text = textOf(texts, count);
+                    text.cutTo(0);
                     text.addAll("part 0");
                     count++;
                 }
