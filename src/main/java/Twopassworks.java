@@ -1124,6 +1124,11 @@ public final class Twopassworks {
             length = measured.length;
             sum = measured.sum;
             check = measured.check;
+            forget();
+        }
+
+        /** Nothing is known of it but its text. */
+        void forget() {
             known = NOT_LET;
             told = 0;
             bodyFrom = NONE;
@@ -1244,6 +1249,9 @@ public final class Twopassworks {
                 Name last = named(nameCount - 1);
                 heads[slotOf(last.sum)] = last.next;
                 letters.cutTo(last.from);
+            }
+            for (int i = 0; i < keptNames; i++) {
+                named(i).forget();
             }
             pieceCount = keptPieces;
             all.cutTo(keptItems);
