@@ -4,6 +4,7 @@ import java.util.Arrays;
 /** An assembler for a small machine. A word in capitals in a comment here is one of the document's words. */
 public final class Twopassworks {
     private static final int NONE = -1;
+    private static final int MOST_INT = 2147483647;
     private static final int MOST_LINES = 120;
     private static final int MOST_SIGNS = 80;
     private static final int MOST_NUMBER = 65535;
@@ -24,7 +25,7 @@ public final class Twopassworks {
     // A row or text may be longer than can be counted: it counts as so long then.
     private static final long MOST_COUNTED = 1L << 60;
     // More signs than all calls of a run have room for are not told.
-    private static final int MOST_TOLD = 1 << 23;
+    private static final int MOST_TOLD = 1 << 26;
 
     private static final int NAME = 1;
     private static final int LOCAL = 2;
@@ -285,7 +286,7 @@ public final class Twopassworks {
         if (!hasSign(at, column)) {
             throw new IndexOutOfBoundsException();
         }
-        return scan.signAt(textOf(lines, at), column);
+        return scan.signIn(textOf(lines, at), column);
     }
 
     public String text(int at) throws IndexOutOfBoundsException {
@@ -737,7 +738,7 @@ public final class Twopassworks {
 
     /** A number that may be more than an int can tell. */
     private static int clipped(long number) {
-        return (int) Math.min(number, Integer.MAX_VALUE);
+        return (int) Math.min(number, MOST_INT);
     }
 
     /** The signs of a text; the same ones are told by the same String, which takes no more room. */
@@ -1856,7 +1857,7 @@ public final class Twopassworks {
             }
         }
 
-        /** Writes out what PIECES begin a row with: LABEL, ":", ORDER WORD and "=" stand at places of their own. */
+        /** Writes out what PIECES the last row begins with: LABEL, ":", ORDER WORD, "=" get places of their own. */
         void openHead(Row row) {
             int at = 0;
             for (long step = 0; step < MOST_WALKED && at < MOST_HEAD && at < row.count; step++) {
@@ -1864,11 +1865,6 @@ public final class Twopassworks {
                 if ((token & 7) != PIECE) {
                     at++;
                     continue;
-                }
-                if (row.start + row.count != all.size()) {
-                    int start = all.size();
-                    all.addSome(all, row.start, row.count);
-                    row.start = start;
                 }
                 Piece piece = pieceAt(token >> 3);
                 all.replace(row.start + at, all, piece.from, piece.size);
@@ -2139,7 +2135,7 @@ public final class Twopassworks {
             return isPiece(code) ? (pieceAt(code - SHARED >> 1).first & 7) <= NUMBER : isOfWord(code);
         }
 
-        int signAt(Codes text, long column) {
+        int signIn(Codes text, long column) {
             long left = column;
             int at = 0;
             Codes level = text;
@@ -2228,7 +2224,7 @@ public final class Twopassworks {
         private final Codes visited = new Codes();
         private int visits;
         private int firstVisit;
-        private long[] remembered;
+        private long[] remembered = new long[0];
 
         int missCode() {
             return missCode;
@@ -2380,7 +2376,7 @@ public final class Twopassworks {
             place = 0;
             visited.cutTo(0);
             if (visits > MOST_VISITS) {
-                remembered = null;
+                remembered = new long[0];
                 visits = 0;
             }
             firstVisit = visits;
@@ -2518,7 +2514,7 @@ public final class Twopassworks {
 
         /** Where it is remembered what a PIECE makes of what waits now. */
         private int slotOf(int piece) {
-            if (remembered == null) {
+            if (remembered.length == 0) {
                 remembered = new long[SLOTS * SLOT_SIZE];
             }
             long mixed = piece * 31L + waiting;
