@@ -1008,6 +1008,20 @@ public final class Twopassworks {
             count += size;
         }
 
+        /** Puts some of another row behind, the last number first. */
+        void addBackwards(Codes other, int from, int size) {
+            if (from < 0 || size <= 0 || size > other.count - from || size > MOST_ROOM - count) {
+                return;
+            }
+            if (count + size > all.length) {
+                all = Arrays.copyOf(all, (count + size) * 2);
+            }
+            for (int i = 0; i < size; i++) {
+                all[count + i] = other.all[from + size - 1 - i];
+            }
+            count += size;
+        }
+
         void addAll(String text) {
             for (int i = 0; i < text.length(); i++) {
                 add(text.charAt(i));
@@ -1208,6 +1222,8 @@ public final class Twopassworks {
      */
     private static final class Tokens {
         private static final int SLOTS = 128;
+        private static final int UNDECIDED = 2;
+        private static final int MOST_COMPARED = 1 << 20;
         private final Codes all = new Codes();
         private final ArrayList<Name> names = new ArrayList<Name>();
         private int nameCount;
@@ -1220,7 +1236,9 @@ public final class Twopassworks {
         private final Name measured = new Name();
         private final Codes scrap = new Codes();
         private final Codes pending = new Codes();
-        private int illCode;
+        // What is still to be compared of two NAMES, the next code last.
+        private final Codes ours = new Codes();
+        private final Codes theirs = new Codes();
         private long illColumn;
         // What a new source does not wipe: the words, and what the SOURCE's own texts share.
         private int keptItems;
@@ -1316,13 +1334,12 @@ public final class Twopassworks {
                     readRemark(text, at + 1);
                     break;
                 }
-                illCode = FAULT_SIGN;
                 int end = readOne(text, at);
                 if (end <= at) {
                     measure(text, 0, at);
                     illColumn = measured.length;
                     all.cutTo(first);
-                    return -illCode;
+                    return end < 0 ? end : -FAULT_SIGN;
                 }
                 at = end;
             }
@@ -1333,7 +1350,7 @@ public final class Twopassworks {
             return illColumn;
         }
 
-        /** Reads the TOKEN that begins at a sign; answers where it ends, or NONE where nothing begins. */
+        /** Reads the TOKEN that begins at a sign; answers where it ends, or minus the code of the fault. */
         private int readOne(Codes text, int at) {
             int sign = text.at(at);
             if (isPiece(sign)) {
@@ -1364,7 +1381,7 @@ public final class Twopassworks {
                 all.add(sign * 8 + SIGN);
                 return at + 1;
             }
-            return NONE;
+            return -FAULT_SIGN;
         }
 
         private int readNumber(Codes text, int from, int base) {
@@ -1378,12 +1395,8 @@ public final class Twopassworks {
                 number = Math.min(number * base + digit, MOST_NUMBER + 1);
                 at++;
             }
-            if (at == from) {
-                return NONE;
-            }
-            if (number > MOST_NUMBER) {
-                illCode = FAULT_NUMBER;
-                return NONE;
+            if (at == from || number > MOST_NUMBER) {
+                return at == from ? -FAULT_SIGN : -FAULT_NUMBER;
             }
             all.add(number * 8 + NUMBER);
             return at;
@@ -1446,9 +1459,11 @@ public final class Twopassworks {
             int found = heads[slot];
             for (int step = 0; step < nameCount && found != NONE; step++) {
                 Name name = named(found);
-                if (name.length == measured.length && name.sum == measured.sum && name.check == measured.check
-                    && (name.length > MOST_SPELLED || letters.sameSome(name.from, text, from, to - from))) {
-                    return found;
+                if (name.length == measured.length && name.sum == measured.sum && name.check == measured.check) {
+                    int order = compare(text, from, to - from, name);
+                    if (order == 0 || order == UNDECIDED) {
+                        return found;
+                    }
                 }
                 found = name.next;
             }
@@ -1485,23 +1500,53 @@ public final class Twopassworks {
             return name.size == text.size() && letters.sameSome(name.from, text, 0, name.size);
         }
 
+        /** Tells by -1, 0, 1 whether a text is ahead of a NAME, the same or behind; or that it would take too long. */
+        private int compare(Codes text, int from, int size, Name name) {
+            ours.cutTo(0);
+            ours.addBackwards(text, from, size);
+            theirs.cutTo(0);
+            theirs.addBackwards(letters, name.from, name.size);
+            for (int step = 0; step < MOST_COMPARED; step++) {
+                if (ours.size() == 0 || theirs.size() == 0) {
+                    return Math.min(ours.size(), 1) - Math.min(theirs.size(), 1);
+                }
+                int code = ours.takeOut(ours.size() - 1);
+                int its = theirs.takeOut(theirs.size() - 1);
+                if (code < SHARED && its < SHARED) {
+                    if (code != its) {
+                        return code < its ? -1 : 1;
+                    }
+                } else if (code != its) {
+                    Name part = named(code - SHARED >> 1);
+                    Name itsPart = named(its - SHARED >> 1);
+                    // What is longer is gone into.
+                    if (code < SHARED || its >= SHARED && part.length < itsPart.length) {
+                        ours.add(code);
+                        theirs.addBackwards(letters, itsPart.from, itsPart.size);
+                    } else {
+                        theirs.add(its);
+                        ours.addBackwards(letters, part.from, part.size);
+                    }
+                }
+            }
+            return UNDECIDED;
+        }
+
         boolean isAhead(Name name, Name other) {
+            int order = compare(letters, name.from, name.size, other);
+            if (order != UNDECIDED) {
+                return order < 0;
+            }
+            // How long a beginning they share is found by halving.
             long size = Math.min(name.length, other.length);
             long same = 0;
-            if (size <= MOST_SPELLED) {
-                while (same < size && letterAt(name, same) == letterAt(other, same)) {
-                    same++;
-                }
-            } else {
-                // How long a beginning they share is found by halving.
-                long most = size;
-                while (same < most) {
-                    long middle = most - (most - same) / 2;
-                    if (checkOfBeginning(name, middle) == checkOfBeginning(other, middle)) {
-                        same = middle;
-                    } else {
-                        most = middle - 1;
-                    }
+            long most = size;
+            while (same < most) {
+                long middle = most - (most - same) / 2;
+                if (checkOfBeginning(name, middle) == checkOfBeginning(other, middle)) {
+                    same = middle;
+                } else {
+                    most = middle - 1;
                 }
             }
             return same < size ? letterAt(name, same) < letterAt(other, same) : name.length < other.length;
@@ -2169,9 +2214,7 @@ public final class Twopassworks {
                     place++;
                 } else {
                     spell(code, scrap);
-                    for (int i = scrap.size() - 1; i >= 0; i--) {
-                        pending.add(scrap.at(i));
-                    }
+                    pending.addBackwards(scrap, 0, scrap.size());
                 }
             }
         }

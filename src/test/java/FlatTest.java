@@ -17,6 +17,7 @@ public final class FlatTest {
         deep();
         tooLong();
         flatten();
+        wordsAsNames();
         Due.end();
     }
 
@@ -278,5 +279,31 @@ public final class FlatTest {
         Due.same("flatten looks at section 3 alone", 0, w.flatten());
         Due.same("fault", "0 -1 0", w.fault(0) + " " + w.fault(1) + " " + w.fault(2));
         Due.same("assemble", 9, w.assemble());
+    }
+
+    /** A word may be a NAME as well; what a source made of it is forgotten with the next one. */
+    private static void wordsAsNames() {
+        Twopassworks w = Due.source("byte: macro", "end", "word: let 1", "room: stop", "share room", "want jump",
+            "weak call", "room word", "load: let load2", "load2: let 2");
+        for (int i = 0; i < 4; i++) {
+            Due.same("assemble() " + i, 0, w.assemble());
+            Due.same("how many SYMBOLS", 6, w.image(5));
+            Due.same("how many macros", 1, w.image(8));
+            Due.same("share room", 1, w.ofSymbol(4, 5));
+            Due.same("weak call", 4, w.ofSymbol(0, 0));
+            Due.same("load", 2, w.ofSymbol(2, 1));
+        }
+        w.cut(4);
+        for (int i = 0; i < 4; i++) {
+            Due.same("assemble() without share " + i, 0, w.assemble());
+            Due.same("room is not shared", 0, w.ofSymbol(4, 5));
+        }
+        w.cut(0);
+        w.cut(0);
+        w.cut(0);
+        for (int i = 0; i < 4; i++) {
+            Due.same("assemble() without let word " + i, 10, w.assemble());
+            Due.same("what is not KNOWN", 3, w.fault(1));
+        }
     }
 }

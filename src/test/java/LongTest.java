@@ -6,11 +6,15 @@ public final class LongTest {
         faultsFarBehind();
         longerEachTime();
         rubbed();
+        rubbedWhereArgumentsMeet();
         tidied();
         headsOfArguments();
         readAgain();
         longNames();
         namesInOrder();
+        namesMuchAlike();
+        namesOutOfStep();
+        signsThatWait();
         endlessValues();
         Due.end();
     }
@@ -224,6 +228,30 @@ public final class LongTest {
         Due.same("where it is ILL", "1 0 4005", fault(x));
     }
 
+    /** What one argument ends and the next one begins with becomes one TOKEN, or two without a blank. */
+    private static void rubbedWhereArgumentsMeet() {
+        for (String term : new String[] {"b*(c-d)*e", "12*b-(c)*3", "x2-(c+c)/9", "7*(a-b)*n", "(a*b+c)-(b)"}) {
+            for (int from = 1; from <= 9; from += 4) {
+                Twopassworks w = handedOn(9, "+", "word ", 3, "m " + term);
+                Due.same("flatten()", 0, w.flatten());
+                StringBuilder text = new StringBuilder("word " + many(term, "+", 729));
+                int[] terms = {from, 9 * from, 81 * from, 81 * from + 9, 81 * from + 10};
+                for (int i = 0; i < terms.length; i++) {
+                    int column = 5 + terms[i] * (term.length() + 1) - 1;
+                    int gone = 5 + 729 * (term.length() + 1) - 1 - text.length();
+                    column -= gone;
+                    if (column < text.length() && text.charAt(column) == '+') {
+                        Due.same(term + " rub " + column, (int) '+', w.rub(0, column));
+                        text.deleteCharAt(column);
+                        Due.same(term + " tokens after " + column, tokensOf(text.toString()), w.tokens(0));
+                    }
+                }
+                Due.same(term + " text", text.toString(), w.text(0));
+                Due.same(term + " digest()", Digest.of(w), w.digest());
+            }
+        }
+    }
+
     /** How many TOKENS a text of NAMES, NUMBERS and SIGNS has; minus 1 or 2 if it is ILL. */
     private static int tokensOf(String text) {
         int count = 0;
@@ -345,12 +373,12 @@ public final class LongTest {
     private static void longNames() {
         Twopassworks w = Due.source("word a+a", "weak b");
         int size = 1;
-        for (int i = 0; i < 19; i++) {
+        for (int i = 0; i < 22; i++) {
             w.rub(0, 5 + size);
             size *= 2;
             Due.same("length of a NAME of " + size, 5 + size, w.length(0));
             Due.same("its TOKEN", "1 5 " + size + " 0", token(w, 1));
-            if (i < 18) {
+            if (i < 21) {
                 twice(w);
             }
         }
@@ -407,6 +435,99 @@ public final class LongTest {
         Due.same("assemble()", 0, w.assemble());
         Due.same("digest()", Digest.of(w), w.digest());
         Due.same("isSound()", true, w.isSound());
+    }
+
+    /** Two NAMES for which a checksum is the same. */
+    private static void namesMuchAlike() {
+        String[] names = {
+            "c0anc0ananc0anananananc0c0ananc0c0c0c0c0c0c0c0c0anc0anc0c0anc0anananc0",
+            "ananc0anananc0c0ananananc0c0c0c0c0anc0c0anananc0anananc0anc0c0c0anc0c0",
+            "c0anc0c0anc0ananc0ananc0c0ananc0c0c0c0c0ananc0anc0anc0c0c0anananc0anc0",
+            "c0ananc0ananc0c0c0c0anananc0anc0c0ananc0anc0c0anananananc0c0ananananc0",
+        };
+        Twopassworks w = new Twopassworks();
+        for (int i = 0; i < 2; i++) {
+            Due.line(w, 0, "d:macro");
+            Due.line(w, 1, "word %1+" + names[2 * i + 1]);
+            w.put(2, 0, 16, 0, 0, 0);
+            Due.line(w, 3, "d " + names[2 * i]);
+            Due.same("flatten()", 0, w.flatten());
+            w.rub(0, 75);
+        }
+        Due.same("two NAMES", names[2] + names[3], w.text(0).substring(5));
+        Due.same("and the other one", names[0] + names[1], w.text(1).substring(5));
+        callAgain(w, "weak %1");
+        Due.same("assemble() with one of them weak", 9, w.assemble());
+        Due.same("UNKNOWN is the other one", "9 1 5", fault(w));
+        for (int i = 0; i < 3; i++) {
+            w.rub(1, 0);
+        }
+        w.put(0, 4, 15, 0, 0, 0);
+        w.put(1, 0, 14, 1, 1201, 0);
+        w.put(2, 0, 16, 0, 0, 0);
+        Due.same("assemble() with both", 0, w.assemble());
+        Due.same("the first SYMBOL", names[0] + names[1], w.symbol(0));
+        Due.same("the second one", names[2] + names[3], w.symbol(1));
+    }
+
+    /** NAMES of more than a million signs, put together in unlike ways. */
+    private static void namesOutOfStep() {
+        for (String part : new String[] {"a", "aab"}) {
+            Twopassworks w = Due.source("word " + part + "+" + part);
+            int size = part.length();
+            for (int i = 0; i < 21; i++) {
+                w.rub(0, 5 + size);
+                size *= 2;
+                if (i < 20) {
+                    twice(w);
+                }
+            }
+            callAgain(w, "weak %1", "word %1");
+            w.rub(0, 5 + size / 3);
+            w.rub(1, 5 + size / 2);
+            boolean same = w.text(0).substring(5).equals(w.text(1).substring(5));
+            Due.same("assemble()", same ? 0 : 9, w.assemble());
+            for (int i = 0; i < 3; i++) {
+                w.rub(1, 0);
+            }
+            w.rub(1, 2 + size / 5);
+            w.put(0, 4, 15, 0, 0, 0);
+            w.put(1, 0, 14, 1, 1201, 0);
+            w.put(2, 0, 16, 0, 0, 0);
+            Due.same("assemble() with both weak", 0, w.assemble());
+            String[] texts = {w.text(3).substring(5), w.text(4).substring(2)};
+            java.util.Arrays.sort(texts);
+            Due.same("the first SYMBOL", true, texts[0].equals(w.symbol(0)));
+            Due.same("the second one", true, texts[1].equals(w.symbol(1)));
+        }
+    }
+
+    /** A sign that waits while long arguments are gone through, and faults then. */
+    private static void signsThatWait() {
+        Twopassworks w = Due.source("m: macro", "word %1%1%1%1y", "end", "m 0+0+0+0+0*", "y: stop");
+        Due.same("assemble()", 11, w.assemble());
+        Due.same("the last * of the last argument", "11 1 44", fault(w));
+        w = Due.source("m: macro", "word y*(%1%1%1%1 0)", "end", "m 0+0+0+0+0*", "y: stop");
+        Due.same("assemble()", 11, w.assemble());
+        Due.same("the * ahead of them", "11 1 6", fault(w));
+        w = Due.source("m: macro", "word 2-y-(%1%1%1%1 0)", "end", "m 0+0+0+0+0*", "y: stop");
+        Due.same("assemble()", 11, w.assemble());
+        Due.same("the - ahead of y", "11 1 6", fault(w));
+        w = Due.source("m: macro", "word 7+(3-(%1%1%1%1 0)+y*2)", "end", "m 0+0+0+0+0*", "y: stop");
+        Due.same("assemble()", 11, w.assemble());
+        Due.same("the * behind them", "11 1 " + (5 + 6 + 40 + 1 + 3), fault(w));
+        w = Due.source("m: macro", "word 65535-(%1%1%1%1 0)*2+1", "end", "m 0+0+0-0+0*", "y: stop");
+        Due.same("assemble()", 12, w.assemble());
+        Due.same("the last +", "12 1 " + (5 + 7 + 40 + 4), fault(w));
+        w = Due.source("m: macro", "word -(%1%1%1y)", "end", "m 0+0+0-0+0+", "y: stop");
+        Due.same("assemble()", 11, w.assemble());
+        Due.same("the - ahead of all", "11 1 5", fault(w));
+        w = Due.source("m: macro", "word %1%1%1%1%1 7", "end", "m (1+1)*(0-1)*", "y: stop");
+        Due.same("assemble()", 0, w.assemble());
+        Due.same("its number", -224, w.ofFlat(0, 10));
+        w = Due.source("m: macro", "word %1%1%1%1%1 y", "end", "m (y-y)*3+0+0-0+", "y: stop");
+        Due.same("assemble()", 0, w.assemble());
+        Due.same("its BASE", 0, w.ofFlat(0, 11));
     }
 
     private static void endlessValues() {
