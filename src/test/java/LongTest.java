@@ -5,6 +5,8 @@ public final class LongTest {
         longText();
         faultsFarBehind();
         longerEachTime();
+        withoutSignsBetween();
+        shortAgain();
         rubbed();
         rubbedWhereArgumentsMeet();
         tidied();
@@ -109,6 +111,17 @@ public final class LongTest {
         w = handedOn(20, "+", "word ", 3, "m (((-1)))");
         Due.same("assemble() four deep", 6, w.assemble());
         Due.same("DEEP", "6 7 8", fault(w));
+        w = handedOn(20, "+", "word 7*", 3, "m 2+2+2+2+2+-(-((1)))");
+        Due.same("assemble() four deep behind a few", 6, w.assemble());
+        Due.same("DEEP behind a few", "6 7 20", fault(w));
+        w = handedOn(20, "+", "word 7*", 3, "m 2+2+2+2+2 b");
+        Due.same("assemble() with a NAME too many", 3, w.assemble());
+        Due.same("LINE behind a few", "3 7 17", fault(w));
+        w = handedOn(20, "+", "word 7*", 3, "m 2+2+2+2+2*b");
+        Due.line(w, 7, "word (7*" + many("%1", "+", 20) + " 7");
+        w.cut(8);
+        Due.same("assemble() with a NUMBER too many behind all", 3, w.assemble());
+        Due.same("LINE behind all", "3 7 " + (5 + 3 + 8000 * 12 - 1 + 1), fault(w));
         w = handedOn(20, "", "word b", 3, "m +1-1");
         Due.same("assemble() without b", 9, w.assemble());
         w.put(w.lines(), 2, 8, 1, 7, 0);
@@ -184,6 +197,46 @@ public final class LongTest {
         Due.same("assemble()", 9, w.assemble());
         Due.same("UNKNOWN", "9 0 4999999", fault(w));
         Due.same("digest() is another", true, d != w.digest());
+    }
+
+    private static void withoutSignsBetween() {
+        String[] terms = {"+1-1", "*(1)", "-b*2", "/1"};
+        for (String term : terms) {
+            Twopassworks w = handedOn(12, "", "word 3", 3, "m " + term);
+            w.put(w.lines(), 2, 8, 1, 7, 0);
+            Due.same(term + " flatten()", 0, w.flatten());
+            String text = "word 3" + term.repeat(1728);
+            Due.same(term + " text", text, w.text(0));
+            Due.same(term + " form", text, w.form(0));
+            Due.same(term + " tidy()", 0, w.tidy());
+            Due.same(term + " tokens", tokensOf(text), w.tokens(0));
+            Due.same(term + " assemble()", 0, w.assemble());
+            Due.same(term + " digest()", Digest.of(w), w.digest());
+            for (int i = 5; i > 0; i--) {
+                w.rub(0, 1 << 2 * i);
+                text = text.substring(0, 1 << 2 * i) + text.substring((1 << 2 * i) + 1);
+            }
+            Due.same(term + " text then", text, w.text(0));
+            Due.same(term + " tokens then", tokensOf(text), w.tokens(0));
+            Due.same(term + " digest() then", Digest.of(w), w.digest());
+        }
+    }
+
+    /** What macros share in a row stands in a short text as any other sign. */
+    private static void shortAgain() {
+        String text = "word 1+b+1+1+c2-1+b+1+1+c2";
+        for (int column = 0; column <= text.length(); column++) {
+            for (char sign : new char[] {'7', 'x', '_', ' ', '@', '%', '$', ';', '(', ':'}) {
+                Twopassworks w = Due.source("m: macro", "word %1-%1", "end", "m 1+b+1+1+c2");
+                Due.same("flatten()", 0, w.flatten());
+                Due.same("length with " + sign, text.length() + 1, w.sign(0, column, sign));
+                String then = text.substring(0, column) + sign + text.substring(column);
+                Due.same("text with " + sign, then, w.text(0));
+                Twopassworks plain = Due.source(then);
+                Due.same("form of " + then, plain.form(0), w.form(0));
+                Due.same("tokens of " + then, plain.tokens(0), w.tokens(0));
+            }
+        }
     }
 
     private static void rubbed() {
@@ -522,6 +575,12 @@ public final class LongTest {
         w = Due.source("m: macro", "word -(%1%1%1y)", "end", "m 0+0+0-0+0+", "y: stop");
         Due.same("assemble()", 11, w.assemble());
         Due.same("the - ahead of all", "11 1 5", fault(w));
+        w = Due.source("m: macro", "word (%1 1)*0+(%1 1)*0+(%1 1)*0+(%1 y)", "end", "m 0+0+0+0+0*", "y: stop");
+        Due.same("assemble()", 11, w.assemble());
+        Due.same("the last * of all", "11 1 " + (5 + 4 * 11 + 3 * 5 - 1), fault(w));
+        w = Due.source("m: macro", "word %1%1%1%1-7", "end", "m 0+0+0+0+1*", "y: stop");
+        Due.same("assemble()", 0, w.assemble());
+        Due.same("the number with -7 behind", -7, w.ofFlat(0, 10));
         w = Due.source("m: macro", "word %1%1%1%1%1 7", "end", "m (1+1)*(0-1)*", "y: stop");
         Due.same("assemble()", 0, w.assemble());
         Due.same("its number", -224, w.ofFlat(0, 10));
