@@ -1,12 +1,16 @@
+import java.math.BigInteger;
+import java.util.ArrayList;
+import java.util.List;
+
 /** The checksum of promise 41, from what the other methods answer. */
 final class Digest {
-    private long d = 6401;
+    private final List<Long> all = new ArrayList<>();
 
     private Digest() {
     }
 
     private void add(long v) {
-        d = d * 31 + v;
+        all.add(v);
     }
 
     private void add(String text) {
@@ -16,6 +20,23 @@ final class Digest {
     }
 
     static long of(Twopassworks w) {
+        long d = 6401;
+        for (long v : from(w).all) {
+            d = d * 31 + v;
+        }
+        return d;
+    }
+
+    /** The same with numbers that have no bound, of which the lowest 64 bits are taken at last. */
+    static BigInteger unbounded(Twopassworks w) {
+        BigInteger d = BigInteger.valueOf(6401);
+        for (long v : from(w).all) {
+            d = d.multiply(BigInteger.valueOf(31)).add(BigInteger.valueOf(v));
+        }
+        return d;
+    }
+
+    private static Digest from(Twopassworks w) {
         Digest sum = new Digest();
         sum.add(w.lines());
         for (int i = 0; i < w.lines(); i++) {
@@ -37,7 +58,7 @@ final class Digest {
             sum.addImage(w);
         }
         sum.add(w.isSound() ? 1 : 0);
-        return sum.d;
+        return sum;
     }
 
     private void addImage(Twopassworks w) {
