@@ -12,6 +12,7 @@ public final class LongTest {
         tidied();
         headsOfArguments();
         readAgain();
+        oneOfSeveral();
         longNames();
         namesInOrder();
         namesMuchAlike();
@@ -421,6 +422,37 @@ public final class LongTest {
         Due.same("flatten()", 0, w.flatten());
         Due.same("isSound() by what is left", true, w.isSound());
         Due.same("FLAT line is left then", "x: word y-y+" + many("a-a-b", "-", 1728), w.flat(0));
+    }
+
+    /** What is left of the SOURCE's long texts is read right when others of them are gone. */
+    private static void oneOfSeveral() {
+        for (int kept = 0; kept < 3; kept++) {
+            Twopassworks w = handedOn(12, "+", "word ", 3, "m aa");
+            Due.line(w, w.lines(), "m bb*3");
+            Due.line(w, w.lines(), "m cc-cc");
+            Due.same("flatten()", 0, w.flatten());
+            Due.same("lines()", 3, w.lines());
+            String[] due = {"aa", "bb*3", "cc-cc"};
+            for (int i = 2; i >= 0; i--) {
+                due[i] = "word " + many(due[i], "+", 1728);
+                Due.same("text " + i, due[i], w.text(i));
+                if (i != kept) {
+                    w.cut(i);
+                }
+            }
+            for (String text : new String[] {"want w", "weak aa", "weak bb", "weak cc"}) {
+                Due.line(w, 0, text);
+            }
+            Due.same("text of the one that is left", due[kept], w.text(4));
+            Due.same("assemble()", 0, w.assemble());
+            Due.same("flat of the one that is left", due[kept], w.flat(4));
+            Due.same("how many TOKENS", w.tokens(4), w.ofFlat(4, 9));
+            for (int i = 0; i < 3; i++) {
+                Due.same("what USES SYMBOL " + i, i == kept ? 2 : 1, w.ofSymbol(i, 4));
+            }
+            Due.same("trial", 0, w.trial(3, 0, 0, 0, 0, 0));
+            Due.same("digest()", Digest.of(w), w.digest());
+        }
     }
 
     private static void longNames() {

@@ -20,6 +20,8 @@ public final class PlaceBoundsTest {
         images();
         orderOfSymbols();
         uses();
+        manyUses();
+        usesOfLongRows();
         stretches();
         namesInCommon();
         shrinking();
@@ -351,6 +353,43 @@ public final class PlaceBoundsTest {
             int symbol = i;
             Due.outside("no further place", () -> w.use(symbol, w.ofSymbol(symbol, 4)));
         }
+    }
+
+    /** The same of 120 SYMBOLS, each USED by one FLAT line. */
+    private static void manyUses() {
+        List<String> all = new ArrayList<>();
+        for (int i = 0; i < 120; i++) {
+            all.add("a" + i + ": word a" + (i + 7) % 120);
+        }
+        Twopassworks w = Due.assembled(texts(all));
+        for (int at = 0; at < 120; at++) {
+            int number = Integer.parseInt(w.symbol(at).substring(1));
+            Due.same("FLAT line of " + w.symbol(at), number, w.ofSymbol(at, 3));
+            Due.same("how many USE " + w.symbol(at), 1, w.ofSymbol(at, 4));
+            Due.same("which one USES " + w.symbol(at), (number + 113) % 120, w.use(at, 0));
+        }
+    }
+
+    /** The same where the NAMES stand far behind in an argument that is handed on. */
+    private static void usesOfLongRows() {
+        StringBuilder sum = new StringBuilder("0+0+0+0+0+0");
+        for (int i = 100; i < 112; i++) {
+            sum.append("+n").append(i);
+        }
+        List<String> all = new ArrayList<>(List.of("m: macro", "word %1", "end", "n: macro", "m 1+%1+2", "end",
+            "n " + sum));
+        for (int i = 22; i < 112; i++) {
+            all.add("weak n" + (i < 100 ? "00" + i : "" + i));
+        }
+        Twopassworks w = Due.assembled(texts(all));
+        Due.same("SYMBOLS", 90, w.image(5));
+        for (int at = 0; at < 90; at++) {
+            boolean used = w.symbol(at).compareTo("n100") >= 0;
+            Due.same("how many USE " + w.symbol(at), used ? 2 : 1, w.ofSymbol(at, 4));
+            Due.same("which one USES " + w.symbol(at), used ? 0 : at + 1, w.use(at, 0));
+        }
+        all.set(all.size() - 1, "stop");
+        fault("9 1 " + (7 + sum.length() - 4), texts(all));
     }
 
     /** "STRETCH: a row of FLAT lines of one PART, as long as can be." */

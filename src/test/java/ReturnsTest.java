@@ -347,8 +347,8 @@ public final class ReturnsTest {
 
     /** Promises 28 to 30: each kind, with and without marks. */
     private static void ofSymbol() {
-        Twopassworks w = Due.assembled("weak d", "weak d", "a: stop", "b: let a", "want c", "share a", "weak a", "weak c",
-            "part 1", "e:", "share b");
+        Twopassworks w = Due.assembled("weak d", "weak d", "a: stop", "b: let a", "want c", "share a", "weak a",
+            "weak c", "part 1", "e:", "share b");
         int[][] due = {
             // kind, number, BASE, FLAT line, how many USE it, share, weak
             {1, 0, 0, 2, 3, 1, 1}, {2, 0, 0, 3, 1, 1, 0}, {3, 0, 12, 4, 2, 0, 1}, {4, 0, -1, 0, 2, 0, 1},
@@ -424,6 +424,10 @@ public final class ReturnsTest {
         valueAs(w, "9 0 -1", 1, 1101, 0);
         valueAs(w, "10 0 -1", 1, 1300, 0);
         valueAs(w, "16 0 -1", 1, 1201, 0);
+        valueAs(w, "0 0 -1", 1, 2000, 0);
+        valueAs(w, "0 255 -1", 1, 2255, 0);
+        valueAs(w, "0 0 -1", 1, 0, 0);
+        valueAs(w, "0 999 -1", 1, 999, 0);
         valueAs(w, "0 5 -1", 1, 5, 1201);
         valueAs(w, "0 -5 -1", 8, 5, 1203);
         valueAs(w, "16 0 -1", 3, 1023, 1201);

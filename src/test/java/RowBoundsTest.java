@@ -371,6 +371,7 @@ public final class RowBoundsTest {
         right(with(full, "m: macro", "end", "m"));
         fault("7 12 0", with(full, "m: macro", "end", "a: m"));
         fault("3 12 4", with(full, "m: macro", "end", "m 1,"));
+        fault("3 12 7", with(full, "m: macro", "end", "a: m 1,"));
         fault("7 11 0", with(full, "m: macro", "stop", "end", "m"));
         right(with(times(119, "stop"), "a: stop"));
         fault("7 118 0", with(times(114, "stop"), "repeat 5", "stop", "end", "stop", "a: stop"));
@@ -436,6 +437,9 @@ public final class RowBoundsTest {
         fault("3 0 0", "a: end");
         fault("3 0 0", "a: else");
         fault("5 2 0", "if 1", "end", "end");
+        fault("5 0 0", "end", "end");
+        fault("5 0 0", "else", "end");
+        fault("5 0 0", "end", "if 1", "end");
         fault("5 1 0", "repeat 1", "else", "end");
         fault("5 1 0", "m: macro", "else", "end", "m");
         fault("5 3 0", "if 0", "else", "stop", "else", "end");
@@ -540,6 +544,8 @@ public final class RowBoundsTest {
             fault("6 4 0", inside(begins, "repeat 1", "end"));
             fault("6 6 0", inside(begins, "m: macro", "end", "m"));
             fault("6 6 3", inside(begins, "m: macro", "end", "a: m"));
+            fault("3 6 4", inside(begins, "m: macro", "end", "m 1,"));
+            fault("12 4 7", inside(begins, "repeat 6", "end"));
         }
         // Behind a BODY there is room again.
         right("if 1", "if 1", "if 1", "if 1", "end", "if 1", "end", "end", "if 1", "if 1", "end", "end", "end", "end");

@@ -62,6 +62,16 @@ public final class TextBoundsTest {
         Due.same("cut the last", 119, w.cut(119));
         Due.same("the 120th again", 120, w.put(60, 0, 0, 1, 999, 0));
         Due.same("what stood there", "60", w.text(61));
+        Due.same("cut the first of 120", 119, w.cut(0));
+        Due.same("first then", "1", w.text(0));
+        Due.same("last then", "118", w.text(118));
+        Due.same("cut the first of 119", 118, w.cut(0));
+        Due.same("first then", "2", w.text(0));
+        w.put(0, 0, 0, 1, 1, 0);
+        w.put(0, 0, 0, 1, 0, 0);
+        Due.same("cut one within 120", 119, w.cut(60));
+        Due.same("what stands there", "60", w.text(60));
+        Due.same("the 120th again", 120, w.put(119, 0, 0, 0, 0, 0));
         Due.same("clear all", 120, w.clear());
         Due.same("the first one again", 1, w.put(0, 0, 0, 1, 5, 0));
         Due.same("its text", "5", w.text(0));
@@ -405,6 +415,11 @@ public final class TextBoundsTest {
             Due.same("order " + order, due, w.text(0));
             w.cut(0);
         }
+        w.put(0, 0, 101, 1, 5, 0);
+        Due.same("an order of one sign", "a 5", w.text(0));
+        w.put(0, 1, 126, 1, 1000, 0);
+        Due.same("a label and an order of one sign", "a: z a", w.text(0));
+        w.clear();
         String[] all = {"", "=1", "stop", "stop =1", "@z:", "@z: =1", "@z: stop", "@z: stop =1"};
         for (int i = 0; i < all.length; i++) {
             w.put(0, (i & 4) != 0 ? 52 : 0, (i & 2) != 0 ? 7 : 0, (i & 1) != 0 ? 9 : 0, 1, 2);

@@ -6,6 +6,7 @@ public final class ValueBoundsTest {
         reach();
         onlyItsPart();
         passes();
+        longChains();
         shortable();
         greatestNumbers();
         division();
@@ -118,6 +119,33 @@ public final class ValueBoundsTest {
         w = Due.assembled("jump c", "jump c", "room 15", "c:");
         Due.same("the second one reaches", 1, w.ofFlat(1, 7));
         Due.same("PASSES", 2, w.jumps(3));
+    }
+
+    /** Jumps each of which just reaches over the next one while that is SHORT; the last one has so much to cross. */
+    private static String[] chain(int jumps, int last) {
+        String[] texts = new String[3 * jumps + 2];
+        for (int i = 0; i < jumps; i++) {
+            texts[3 * i] = "jump t" + i;
+            texts[3 * i + 1] = "room 2";
+            texts[3 * i + 2] = i == 0 ? "room 9" : "t" + (i - 1) + ": room 9";
+        }
+        texts[3 * jumps] = "room " + last;
+        texts[3 * jumps + 1] = "t" + (jumps - 1) + ":";
+        return texts;
+    }
+
+    /** A PASS for each jump, and a round of SHRINKING for each. */
+    private static void longChains() {
+        Twopassworks w = Due.assembled(chain(27, 5));
+        int[] due = {27, 27, 27, 28, 27};
+        for (int what = 0; what < 5; what++) {
+            Due.same("jumps(" + what + ") of a chain that breaks", due[what], w.jumps(what));
+        }
+        w = Due.assembled(chain(27, 4));
+        int[] held = {27, 27, 0, 1, 0};
+        for (int what = 0; what < 5; what++) {
+            Due.same("jumps(" + what + ") of a chain that holds", held[what], w.jumps(what));
+        }
     }
 
     /** "SHORTABLE, if its EXPRESSION is one NAME alone, that of a label of the same PART; others are LONG." */
@@ -236,6 +264,9 @@ public final class ValueBoundsTest {
 
     /** "the left side first, then the right side, then it itself." */
     private static void asReckoned() {
+        first(3839, -1, "word 1+2*(3+4*(5+6*(7+8*9)))");
+        first(3155, -1, "word 1-2*(3-4*(5-6*(7-8*9)))");
+        first(-301, -1, "word 1-2*(3+4*-(5-6*7))");
         fault("9 0 5", "word x+1/0");
         fault("13 0 6", "word 1/0+x");
         fault("9 0 7", "word .*x");
@@ -265,7 +296,7 @@ public final class ValueBoundsTest {
         fault("9 0 5", "word xx", "x:");
     }
 
-    /** "round by round, .. If a round brings none and some are left: .. UNKNOWN, if it is no SYMBOL, otherwise ROUND." */
+    /** "If a round brings none and some are left: .. UNKNOWN, if it is no SYMBOL, otherwise ROUND." */
     private static void rounds() {
         Twopassworks w = Due.assembled("a: let b+1", "b: let c+1", "c: let d+1", "d: let e+1", "e: let 1");
         for (int i = 0; i < 5; i++) {
@@ -284,6 +315,24 @@ public final class ValueBoundsTest {
         right("a: let x", "weak x");
         right("a: let x", "want x");
         right("a: let x", "x:");
+        String[] all = new String[120];
+        for (int i = 0; i < 119; i++) {
+            all[i] = "e" + i + ": let e" + (i + 1) + "+1";
+        }
+        all[119] = "e119: let 1";
+        w = Due.assembled(all);
+        for (int at = 0; at < 120; at++) {
+            int number = Integer.parseInt(w.symbol(at).substring(1));
+            Due.same("EQUATE " + w.symbol(at), 120 - number, w.ofSymbol(at, 1));
+        }
+        all[119] = "e119: let e0";
+        fault("14 0 8", all);
+        all[119] = "e119: let x";
+        fault("14 0 8", all);
+        all[60] = "e60: let 5";
+        fault("14 61 9", all);
+        all[119] = "e119: stop";
+        right(all);
         // A fault of an earlier round comes first, wherever its line stands.
         fault("11 1 10", "a: let b/0", "b: let 1+.*2");
         fault("13 1 8", "a: let x", "b: let 1/0");
@@ -386,7 +435,7 @@ public final class ValueBoundsTest {
         right("share a", "share a", "weak a", "a:");
     }
 
-    /** "LITERALS of a PART: the VALUES of its load lines with "=", each once, in the order in which they come first." */
+    /** "the VALUES of its load lines with "=", each once, in the order in which they come first." */
     private static void literals() {
         Twopassworks w = Due.assembled("load =65535", "load =-1", "load =2+3", "load =5", "load =b", "load =v",
             "load =w", "load =0", "load =b-0", "b: load 5", "part 1", "load =5", "want v", "weak w");
