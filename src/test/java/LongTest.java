@@ -9,7 +9,9 @@ public final class LongTest {
         shortAgain();
         rubbed();
         rubbedWhereArgumentsMeet();
+        reckonedAnew();
         tidied();
+        tidiedNames();
         headsOfArguments();
         readAgain();
         oneOfSeveral();
@@ -365,6 +367,41 @@ public final class LongTest {
         Due.same("the SIGN behind", "5 2 1 43", token(w, 1));
         Due.same("tidy()", 1, w.tidy());
         Due.same("text", "b " + sum.substring(1), w.text(0));
+    }
+
+    /** What a long argument comes to is reckoned anew for each FLAT line, each EXPRESSION and each source. */
+    private static void reckonedAnew() {
+        Twopassworks w = Due.source("m: macro", "word 0-0+%1", "word 5,0+%1", "word 0-0+%1", "end",
+            "m a+2+3+4+5+6+7+(.-b)", "b:", "n: macro", "room 0+0+%1", "end", "n k+0+0+0+0+0", "a: let 1");
+        for (int a = 1; a <= 6; a++) {
+            Due.line(w, 0, "k: let " + a);
+            w.cut(w.lines() - 1);
+            w.put(w.lines(), 1, 8, 1, a, 0);
+            Due.same("assemble() with " + a, 0, w.assemble());
+            Due.same("the point of the first row", a + 27 - 8, w.ofFlat(1, 10));
+            Due.same("the point of the second row", a + 27 + 2 - 8, w.byteAt(4));
+            Due.same("the point of the third row", a + 27 + 6 - 8, w.ofFlat(3, 10));
+            Due.same("SIZE of room", a, w.ofFlat(5, 5));
+            w.cut(0);
+        }
+    }
+
+    /** A long NAME that has come together in a text is the same in its FORM: there is nothing to tidy. */
+    private static void tidiedNames() {
+        String name = "n".repeat(70);
+        Twopassworks w = handedOn(24, "+", "word ", 2, "m " + name);
+        Due.same("flatten()", 0, w.flatten());
+        Due.same("rub of a sign between NAMES", (int) '+', w.rub(0, 5 + 70));
+        Due.same("rub of another one", (int) '+', w.rub(0, 5 + 3 * 70 + 1));
+        String text = "word " + name + name + "+" + name + name + many("+" + name, "", 572);
+        Due.same("text", text, w.text(0));
+        Due.same("form", text, w.form(0));
+        Due.same("tidy()", 0, w.tidy());
+        Due.same("rub of the blank", (int) ' ', w.rub(0, 4));
+        Due.same("tidy() of one NAME more", 1, w.tidy());
+        Due.same("text then", "word" + name + name + " +" + text.substring(146), w.text(0));
+        Due.same("tidy() again", 0, w.tidy());
+        Due.same("digest()", Digest.of(w), w.digest());
     }
 
     private static void headsOfArguments() {

@@ -15,6 +15,7 @@ public final class RowBoundsTest {
         firstFault();
         nothingLeft();
         parameters();
+        nextLines();
         notANameOrUnknown();
         labels();
         howMany();
@@ -97,6 +98,23 @@ public final class RowBoundsTest {
         right("stop ; %1");
         fault("3 0 5", "stop 5", "%1");
         fault("16 1 0", "stop", "%1", "5");
+    }
+
+    /** A row ends where its line ends, whatever the next one begins with. */
+    private static void nextLines() {
+        fault("4 0 0", "foo", ":");
+        fault("3 0 4", "load", "=1");
+        fault("3 1 0", "load 1", "=1");
+        fault("3 0 4", "word", "1");
+        fault("3 1 0", "word 1", ",2");
+        fault("3 1 0", "word 1", "+2");
+        fault("3 0 7", "word 1+", "2");
+        fault("3 0 7", "word (1", ")");
+        fault("3 0 5", "share", "a");
+        fault("4 1 0", "stop", "a");
+        fault("16 1 0", "stop", "%1");
+        flat("", "m: macro", "end", "m", ";", "m ; a");
+        fault("16 1 5", "m: macro", "byte %1", "end", "m", "%1");
     }
 
     /** "must be a NAME, otherwise LINE there; if it is none of the words below and no macro: ORDER there." */

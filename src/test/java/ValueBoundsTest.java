@@ -14,6 +14,7 @@ public final class ValueBoundsTest {
         asReckoned();
         names();
         rounds();
+        roundsOfLongRows();
         numbersOfBytes();
         numbersOfWords();
         numbersOfJumps();
@@ -327,6 +328,12 @@ public final class ValueBoundsTest {
         }
         all[119] = "e119: let e0";
         fault("14 0 8", all);
+        Twopassworks mended = Due.source(all);
+        Due.same("with a ROUND", 14, mended.assemble());
+        mended.cut(119);
+        Due.line(mended, 119, "e119: let 1");
+        Due.same("mended", 0, mended.assemble());
+        Due.same("the first one then", 120, mended.ofSymbol(0, 1));
         all[119] = "e119: let x";
         fault("14 0 8", all);
         all[60] = "e60: let 5";
@@ -338,6 +345,21 @@ public final class ValueBoundsTest {
         fault("13 1 8", "a: let x", "b: let 1/0");
         fault("13 0 8", "a: let b/0", "b: let 1");
         fault("9 1 7", "byte 256", "a: let x");
+    }
+
+    /** The same where the NAMES stand far behind in an argument that is handed on. */
+    private static void roundsOfLongRows() {
+        String[] begin = {"m: macro", "e: let 0+0+%1", "end"};
+        String[][] due = {
+            // fault, argument, another row
+            {"0 -1 0", "1+2+3+4+5+y+6", "y: let 7"}, {"9 1 21", "1+2+3+4+5+x+6", "y: let 7"},
+            {"14 1 21", "1+2+3+4+5+e+x", "y: let 7"}, {"14 1 25", "1+2+3+4+5+y+7+e+x", "y: let 7"},
+            {"9 1 25", "1+2+3+4+5+y+7+x+e", "y: let 7"}, {"14 1 21", "1+2+3+4+5+y+6", "y: let e"},
+            {"9 1 21", "1+2+3+4+5+x+y", "y: let e"}, {"14 1 29", "1+2+3+4+5+y+6+7+8+e", "y: let 7"},
+            {"9 1 25", "1+2+3+4+5+y/0+x", "y: let 7"}, {"13 1 22", "1+2+3+4+5+y/0+y", "y: let 7"}};
+        for (String[] row : due) {
+            fault(row[0], begin[0], begin[1], begin[2], "m " + row[1], row[2]);
+        }
     }
 
     /** "byte, and load without "=": BASE, if it has one; RANGE, if it is not -128 to 255", at its first TOKEN. */
