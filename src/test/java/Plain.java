@@ -12,7 +12,7 @@ import java.util.TreeSet;
 
 /**
  * The document once more, in the plainest way and without a thought of room: what PlainTest compares the program with.
- * It was written from the document alone. Its isSound() is always true.
+ * It follows the document section by section and shares nothing with the program. Its isSound() is always true.
  */
 final class Plain {
     static final int NONE = -1;
