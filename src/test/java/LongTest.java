@@ -12,6 +12,7 @@ public final class LongTest {
         reckonedAnew();
         tidied();
         tidiedNames();
+        namesWrittenOutOrNot();
         headsOfArguments();
         readAgain();
         oneOfSeveral();
@@ -399,8 +400,57 @@ public final class LongTest {
         Due.same("tidy()", 0, w.tidy());
         Due.same("rub of the blank", (int) ' ', w.rub(0, 4));
         Due.same("tidy() of one NAME more", 1, w.tidy());
-        Due.same("text then", "word" + name + name + " +" + text.substring(146), w.text(0));
+        String then = "word" + name + name + " +" + text.substring(146);
+        Due.same("text then", then, w.text(0));
         Due.same("tidy() again", 0, w.tidy());
+        Due.same("digest()", Digest.of(w), w.digest());
+        // a long NAME that is new, behind a blank that is new; another line is read then
+        w = handedOn(24, "+", "word ", 2, "m 5*" + name);
+        Due.same("flatten()", 0, w.flatten());
+        for (int column : new int[] {6, 76, 76, 76}) {
+            w.rub(0, column);
+        }
+        Due.same("tidy() of a NUMBER ahead of a NAME", 1, w.tidy());
+        Due.line(w, 1, "weak b");
+        Due.same("tokens of another line", 2, w.tokens(1));
+        then = "word 5 " + name + name + many("+5*" + name, "", 574);
+        Due.same("text behind that", then, w.text(0));
+        Due.same("length behind that", then.length(), w.length(0));
+    }
+
+    /** The same NAME stands in one place as macros have handed it on, in another one as it was rubbed. */
+    private static void namesWrittenOutOrNot() {
+        String name = "n".repeat(70);
+        Twopassworks w = handedOn(24, "+", "word ", 2, "m " + name);
+        Due.same("flatten()", 0, w.flatten());
+        for (int column : new int[] {75, 216, 200}) {
+            w.rub(0, column);
+        }
+        callAgain(w, "word %1-(%1)");
+        String longer = "n".repeat(140);
+        String shorter = "n".repeat(139);
+        String rest = "+" + shorter + many("+" + name, "", 572);
+        String text = "word " + longer + rest + "-(" + longer + rest + ")";
+        Due.same("text", text, w.text(0));
+        int second = text.indexOf('(') + 1;
+        Due.same("rub of the second one", (int) 'n', w.rub(0, second + 100));
+        text = "word " + longer + rest + "-(" + shorter + rest + ")";
+        Due.same("tidy()", 0, w.tidy());
+        Due.same("text then", text, w.text(0));
+        Due.same("rub of the first one", (int) 'n', w.rub(0, 100));
+        text = "word " + shorter + rest + "-(" + shorter + rest + ")";
+        Due.same("tidy() again", 0, w.tidy());
+        Due.same("form", text, w.form(0));
+        Due.same("rub of a sign between NAMES", (int) '+', w.rub(0, 144));
+        Due.same("rub of another one", (int) '-', w.rub(0, text.indexOf('-') - 1));
+        text = "word " + shorter + shorter + many("+" + name, "", 572) + "(" + shorter + rest + ")";
+        Due.same("tidy() without the signs", 0, w.tidy());
+        Due.same("text at last", text, w.text(0));
+        Due.line(w, 1, "weak " + name);
+        Due.same("tokens of another line", 2, w.tokens(1));
+        Due.same("text is left", text, w.text(0));
+        Due.same("assemble()", 3, w.assemble());
+        Due.same("LINE", "3 0 " + text.indexOf('('), fault(w));
         Due.same("digest()", Digest.of(w), w.digest());
     }
 
@@ -434,6 +484,10 @@ public final class LongTest {
         w = Due.source("m: macro", "n %1,%1,%1,%1", "end", "n: macro", "end", "m " + many("b", "+", 20));
         Due.same("assemble() with a fourth argument", 3, w.assemble());
         Due.same("LINE at it", "3 1 " + (2 + 3 * 41), fault(w));
+        w = Due.source("m: macro", "n %1 %1, 2,3,4", "end", "n: macro", "end", "m a b c d e f 1 2 3: 4");
+        Due.same("assemble() with a fourth argument behind blanks", 3, w.assemble());
+        // "a b c d e f 1 2 3: 4" is 20 signs long
+        Due.same("LINE behind blanks", "3 1 " + (2 + 20 + 1 + 20 + 3 * 2 + 2), fault(w));
         Due.same("isSound()", true, w.isSound());
     }
 
