@@ -701,6 +701,18 @@ public final class LongTest {
         w = Due.source("m: macro", "word (%1 1)*0+(%1 1)*0+(%1 1)*0+(%1 y)", "end", "m 0+0+0+0+0*", "y: stop");
         Due.same("assemble()", 11, w.assemble());
         Due.same("the last * of all", "11 1 " + (5 + 4 * 11 + 3 * 5 - 1), fault(w));
+        // arguments that end what others began: each leaves "*(" and "+" waiting once more
+        w = Due.source("n: macro", "word 0+1*(0+0%1%1%1%1+y)", "end", "m: macro", "n )*1+1*1*(%1", "end",
+            "m 0+0+0+0+0", "y: stop");
+        Due.same("assemble()", 11, w.assemble());
+        Due.same("the last * ahead of (", "11 1 " + (5 + 8 + 3 * 18 + 7), fault(w));
+        w = Due.source("n: macro", "word 0+1*(0+0%2%3%3+y)", "end", "m: macro", "n 0+0,%1,%1+0+0+0+0", "end",
+            "m )*1+1*1*(0+0", "y: stop");
+        Due.same("assemble()", 11, w.assemble());
+        Due.same("the last * ahead of ( again", "11 1 " + (5 + 8 + 12 + 20 + 7), fault(w));
+        w = Due.source("m: macro", "word %1%1%1%1-7", "end", "m 0+0+0+0+3*", "y: stop");
+        Due.same("assemble() with - behind a sign", 0, w.assemble());
+        Due.same("number with it", -21, w.ofFlat(0, 10));
         w = Due.source("m: macro", "word %1%1%1%1-7", "end", "m 0+0+0+0+1*", "y: stop");
         Due.same("assemble()", 0, w.assemble());
         Due.same("the number with -7 behind", -7, w.ofFlat(0, 10));
