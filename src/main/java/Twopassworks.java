@@ -43,8 +43,6 @@ public final class Twopassworks {
     private static final int MOST_WRITTEN = 640;
     private static final int MOST_HEAD = 4;
     private static final int STATES = 32;
-    private static final long CHECK_BASE = 1000003;
-    private static final long CHECK_PRIME = 2147483647;
 
     private static final int FAULT_SIGN = 1;
     private static final int FAULT_NUMBER = 2;
@@ -113,8 +111,9 @@ public final class Twopassworks {
 
     private final Codes[] lines = new Codes[MOST_LINES];
     private int lineCount;
-    private Assembly image = new Assembly();
-    private Assembly spare = new Assembly();
+    private final Units units = new Units();
+    private Assembly image = new Assembly(units);
+    private Assembly spare = new Assembly(units);
     private boolean made;
     private final Memory old = new Memory();
     private final Memory before = new Memory();
@@ -124,7 +123,7 @@ public final class Twopassworks {
     private int faultColumn;
     private int refused;
     // The texts of the SOURCE are its; it reads one of them at a time.
-    private final Tokens scan = new Tokens();
+    private final Tokens scan = new Tokens(units);
     private final Row scanned = new Row();
     private final Codes out = new Codes();
     private final StringBuilder builder = new StringBuilder();
@@ -226,7 +225,8 @@ public final class Twopassworks {
             writeFormOf(text);
             scan.spellUnkept(out);
             scan.spellShort(out);
-            if (!scan.areSame(out, text)) {
+            scan.spellShort(text);
+            if (!scan.isForm(text, out)) {
                 text.become(out);
                 changes++;
             }
@@ -1114,10 +1114,12 @@ public final class Twopassworks {
         private int from;
         private int size;
         private int next;
-        // How many signs it has, and two numbers reckoned from them by which long NAMES are told apart.
+        // How many signs it has, what promise 41 makes of them, and 31 to the power of how many they are.
         private long length;
         private long sum;
-        private long check;
+        private long power;
+        // What a long NAME is among all that are alike in no sign (see Units).
+        private int unit;
         private boolean marked;
         private int known;
         private int told;
@@ -1138,7 +1140,8 @@ public final class Twopassworks {
             next = itsNext;
             length = measured.length;
             sum = measured.sum;
-            check = measured.check;
+            power = measured.power;
+            unit = NONE;
             forget();
         }
 
@@ -1172,6 +1175,7 @@ public final class Twopassworks {
         private long tokens;
         private long length;
         private long sum;
+        private long power;
         private int first;
         private int last;
         // What a parse has got to behind it, by what it had got to ahead of it.
@@ -1188,6 +1192,7 @@ public final class Twopassworks {
             tokens = 0;
             length = 0;
             sum = 0;
+            power = 1;
             first = 0;
             last = 0;
         }
@@ -1201,6 +1206,7 @@ public final class Twopassworks {
             tokens = other.tokens;
             length = other.length;
             sum = other.sum;
+            power = other.power;
             System.arraycopy(other.after, 0, after, 0, STATES);
         }
     }
@@ -1222,8 +1228,6 @@ public final class Twopassworks {
      */
     private static final class Tokens {
         private static final int SLOTS = 128;
-        private static final int UNDECIDED = 2;
-        private static final int MOST_COMPARED = 1 << 20;
         private final Codes all = new Codes();
         private final ArrayList<Name> names = new ArrayList<Name>();
         private int nameCount;
@@ -1236,9 +1240,6 @@ public final class Twopassworks {
         private final Name measured = new Name();
         private final Codes scrap = new Codes();
         private final Codes pending = new Codes();
-        // What is still to be compared of two NAMES, the next code last.
-        private final Codes ours = new Codes();
-        private final Codes theirs = new Codes();
         private long illColumn;
         // What a new source does not wipe: the words, and what the SOURCE's own texts share.
         private int keptItems;
@@ -1247,6 +1248,13 @@ public final class Twopassworks {
         // Where the NAMES and PIECES of another one were written here.
         private final Codes lentNames = new Codes();
         private final Codes lentPieces = new Codes();
+        // Which NAME each one is.
+        private final Codes united = new Codes();
+        private final Units units;
+
+        Tokens(Units theUnits) {
+            units = theUnits;
+        }
 
         /** Wipes all but what is kept. */
         void restart() {
@@ -1448,7 +1456,7 @@ public final class Twopassworks {
 
         // ---- NAMES
 
-        /** The number of the NAME that some codes of a text are. */
+        /** The number of the NAME that some codes of a text are; a long one has one of its own until all are read. */
         int nameOf(Codes text, int from, int to) {
             int first = text.at(from);
             if (to == from + 1 && first >= SHARED) {
@@ -1456,14 +1464,11 @@ public final class Twopassworks {
             }
             measure(text, from, to);
             int slot = slotOf(measured.sum);
-            int found = heads[slot];
+            int found = measured.length > MOST_SPELLED ? NONE : heads[slot];
             for (int step = 0; step < nameCount && found != NONE; step++) {
                 Name name = named(found);
-                if (name.length == measured.length && name.sum == measured.sum && name.check == measured.check) {
-                    int order = compare(text, from, to - from, name);
-                    if (order == 0 || order == UNDECIDED) {
-                        return found;
-                    }
+                if (name.size == to - from && letters.sameSome(name.from, text, from, name.size)) {
+                    return found;
                 }
                 found = name.next;
             }
@@ -1475,6 +1480,32 @@ public final class Twopassworks {
             heads[slot] = nameCount;
             nameCount++;
             return nameCount - 1;
+        }
+
+        /** NAMES with the same signs become one NAME, however they were put together. */
+        void unite() {
+            boolean any = false;
+            units.begin();
+            united.cutTo(0);
+            for (int i = 0; i < nameCount; i++) {
+                Name name = named(i);
+                boolean isLong = name.length > MOST_SPELLED;
+                int same = i;
+                int older = isLong ? name.next : NONE;
+                name.unit = isLong ? units.unitOf(letters, name.from, name.size) : units.ofNone();
+                for (int step = 0; step < nameCount && older != NONE; step++) {
+                    same = named(older).unit == name.unit ? older : same;
+                    older = named(older).next;
+                }
+                united.add(same);
+                any = any || same != i;
+            }
+            for (int at = 0; any && at < all.size(); at++) {
+                int token = all.at(at);
+                if ((token & 7) == NAME) {
+                    all.set(at, united.at(token >> 3) * 8 + NAME);
+                }
+            }
         }
 
         private static int slotOf(long sum) {
@@ -1500,56 +1531,20 @@ public final class Twopassworks {
             return name.size == text.size() && letters.sameSome(name.from, text, 0, name.size);
         }
 
-        /** Tells by -1, 0, 1 whether a text is ahead of a NAME, the same or behind; or that it would take too long. */
-        private int compare(Codes text, int from, int size, Name name) {
-            ours.cutTo(0);
-            ours.addBackwards(text, from, size);
-            theirs.cutTo(0);
-            theirs.addBackwards(letters, name.from, name.size);
-            for (int step = 0; step < MOST_COMPARED; step++) {
-                if (ours.size() == 0 || theirs.size() == 0) {
-                    return Math.min(ours.size(), 1) - Math.min(theirs.size(), 1);
-                }
-                int code = ours.takeOut(ours.size() - 1);
-                int its = theirs.takeOut(theirs.size() - 1);
-                if (code < SHARED && its < SHARED) {
-                    if (code != its) {
-                        return code < its ? -1 : 1;
-                    }
-                } else if (code != its) {
-                    Name part = named(code - SHARED >> 1);
-                    Name itsPart = named(its - SHARED >> 1);
-                    // What is longer is gone into.
-                    if (code < SHARED || its >= SHARED && part.length < itsPart.length) {
-                        ours.add(code);
-                        theirs.addBackwards(letters, itsPart.from, itsPart.size);
-                    } else {
-                        theirs.add(its);
-                        ours.addBackwards(letters, part.from, part.size);
-                    }
-                }
-            }
-            return UNDECIDED;
-        }
-
+        /** Whether a NAME is ahead of another one; both are not the same. */
         boolean isAhead(Name name, Name other) {
-            int order = compare(letters, name.from, name.size, other);
-            if (order != UNDECIDED) {
-                return order < 0;
+            if (name.unit != NONE && other.unit != NONE) {
+                return units.compare(name.unit, other.unit) < 0;
             }
-            // How long a beginning they share is found by halving.
             long size = Math.min(name.length, other.length);
-            long same = 0;
-            long most = size;
-            while (same < most) {
-                long middle = most - (most - same) / 2;
-                if (checkOfBeginning(name, middle) == checkOfBeginning(other, middle)) {
-                    same = middle;
-                } else {
-                    most = middle - 1;
+            for (int place = 0; place < size && place <= MOST_SPELLED; place++) {
+                int letter = letterAt(name, place);
+                int its = letterAt(other, place);
+                if (letter != its) {
+                    return letter < its;
                 }
             }
-            return same < size ? letterAt(name, same) < letterAt(other, same) : name.length < other.length;
+            return name.length < other.length;
         }
 
         private int letterAt(Name name, long place) {
@@ -1573,68 +1568,32 @@ public final class Twopassworks {
             return 0;
         }
 
-        private long checkOfBeginning(Name name, long size) {
-            int at = name.from;
-            int end = name.from + name.size;
-            long left = size;
-            long check = 0;
-            for (long step = 0; step < MOST_WALKED && at < end && left > 0; step++) {
-                int code = letters.at(at);
-                Name part = code < SHARED ? nobody : named(code - SHARED >> 1);
-                if (code < SHARED) {
-                    check = (check * CHECK_BASE + code) % CHECK_PRIME;
-                    left--;
-                    at++;
-                } else if (left >= part.length) {
-                    check = (check * power(CHECK_BASE, part.length, CHECK_PRIME) + part.check) % CHECK_PRIME;
-                    left -= part.length;
-                    at++;
-                } else {
-                    at = part.from;
-                    end = part.from + part.size;
-                }
-            }
-            return check;
-        }
-
-        /** Leaves in measured how long some codes of a text are, and their sum and check. */
+        /** Leaves in measured what is told of a NAME's length, for some codes of a text. */
         private void measure(Codes text, int from, int to) {
             long length = 0;
             long sum = 0;
-            long check = 0;
+            long power = 1;
             for (int i = from; i < to; i++) {
                 int code = text.at(i);
                 if (code < SHARED) {
                     length++;
                     sum = sum * 31 + code;
-                    check = (check * CHECK_BASE + code) % CHECK_PRIME;
+                    power *= 31;
                 } else if (isPiece(code)) {
                     Piece piece = pieceAt(code - SHARED >> 1);
                     length = Math.min(length + piece.length, MOST_COUNTED);
-                    sum = sum * power(31, piece.length, 0) + piece.sum;
+                    sum = sum * piece.power + piece.sum;
+                    power *= piece.power;
                 } else {
                     Name name = named(code - SHARED >> 1);
                     length = Math.min(length + name.length, MOST_COUNTED);
-                    sum = sum * power(31, name.length, 0) + name.sum;
-                    check = (check * power(CHECK_BASE, name.length, CHECK_PRIME) + name.check) % CHECK_PRIME;
+                    sum = sum * name.power + name.sum;
+                    power *= name.power;
                 }
             }
             measured.length = length;
             measured.sum = sum;
-            measured.check = check;
-        }
-
-        /** A power of a number: what is left of it by a prime, or (with 0) as it wraps around at 64 bits. */
-        private static long power(long base, long exponent, long prime) {
-            long power = 1;
-            long square = base;
-            for (long left = exponent; left > 0; left >>= 1) {
-                if ((left & 1) != 0) {
-                    power = prime > 0 ? power * square % prime : power * square;
-                }
-                square = prime > 0 ? square * square % prime : square * square;
-            }
-            return power;
+            measured.power = power;
         }
 
         // ---- PIECES
@@ -1682,10 +1641,13 @@ public final class Twopassworks {
                 } else if (isBlank(piece.last, first, false)) {
                     piece.length++;
                     piece.sum = piece.sum * 31 + ' ';
+                    piece.power *= 31;
                 }
                 piece.last = inner == null ? token : inner.last;
                 piece.length = Math.min(piece.length + length, MOST_COUNTED);
-                piece.sum = piece.sum * power(31, length, 0) + sumOfToken(token);
+                long power = powerOfToken(token, length);
+                piece.sum = piece.sum * power + sumOfToken(token);
+                piece.power *= power;
                 piece.tokens = Math.min(piece.tokens + (inner == null ? 1 : inner.tokens), MOST_COUNTED);
                 for (int state = 0; state < STATES; state++) {
                     int got = piece.after[state];
@@ -1712,6 +1674,21 @@ public final class Twopassworks {
                 default:
                     return worth;
             }
+        }
+
+        /** 31 to the power of how many signs a TOKEN has (no more than five where it is no NAME). */
+        private long powerOfToken(int token, long length) {
+            if ((token & 7) == NAME) {
+                return named(token >> 3).power;
+            }
+            if ((token & 7) == PIECE) {
+                return pieceAt(token >> 3).power;
+            }
+            long power = 1;
+            for (long left = length; left > 0; left--) {
+                power *= 31;
+            }
+            return power;
         }
 
         private long tokensIn(int token) {
@@ -2059,7 +2036,7 @@ public final class Twopassworks {
         /** What d of promise 41 becomes by all signs of a text. */
         long mixed(long d, Codes text) {
             measure(text, 0, text.size());
-            return d * power(31, measured.length, 0) + measured.sum;
+            return d * measured.power + measured.sum;
         }
 
         private long lengthOfCode(int code) {
@@ -2115,20 +2092,23 @@ public final class Twopassworks {
             }
         }
 
-        /** Whether two texts have the same signs; they may be written out further then. */
-        boolean areSame(Codes text, Codes other) {
+        /**
+         * Whether a text is its FORM, in which each NAME stands as in the text: then they differ in nothing but in how
+         * far PIECES are written out, and go on to be.
+         */
+        boolean isForm(Codes text, Codes form) {
             int at = 0;
-            for (long step = 0; step < MOST_WALKED && (at < text.size() || at < other.size()); step++) {
+            for (long step = 0; step < MOST_WALKED && (at < text.size() || at < form.size()); step++) {
                 int code = text.at(at);
-                int its = other.at(at);
+                int its = form.at(at);
                 if (code == its) {
                     at++;
-                } else if (code < SHARED && its < SHARED) {
-                    return false;
-                } else if (code >= SHARED && (its < SHARED || lengthOfCode(code) >= lengthOfCode(its))) {
+                } else if (isPiece(code) && (!isPiece(its) || lengthOfCode(code) >= lengthOfCode(its))) {
                     unfold(text, at);
+                } else if (isPiece(its)) {
+                    unfold(form, at);
                 } else {
-                    unfold(other, at);
+                    return false;
                 }
             }
             return true;
@@ -2220,6 +2200,294 @@ public final class Twopassworks {
         }
     }
 
+    /**
+     * Tells NAMES apart by all their signs, also where these are too many to be written out. The signs of a NAME are
+     * drawn together step by step until one UNIT is left: at odd steps what follows itself (once or more), at even ones
+     * some pairs. Which ones hangs on the two neighbours alone, so that the same signs become the same UNIT however the
+     * NAME was put together, and unlike signs never do.
+     *
+     * A part of a NAME that is a NAME itself is drawn together but once: at each step it gives up, on its left and on
+     * its right, what may be drawn to its neighbours. That are its edges.
+     */
+    private static final class Units {
+        private static final int SLOTS = 4096;
+        // A UNIT has two others, or one of them so many times (told by where that count stands), and its step.
+        private static final int RIGHT = 1;
+        private static final int STEP = 2;
+        private static final int NEXT = 3;
+        private static final int UNIT_SIZE = 4;
+        // A count has so many digits to such a base, the lowest one first.
+        private static final int DIGITS = 4;
+        private static final int DIGIT_BITS = 30;
+        private static final int HIGHEST_DIGIT = (1 << DIGIT_BITS) - 1;
+        // An item is a UNIT with its count, or minus a NAME's number less 1.
+        private static final int ITEM_SIZE = 1 + DIGITS;
+        private static final int EDGE_SIZE = 2 * ITEM_SIZE + 1;
+        private final Codes units = new Codes();
+        private final Codes counts = new Codes();
+        private final int[] heads = new int[SLOTS];
+        // Where the edges of each NAME begin.
+        private final Codes starts = new Codes();
+        private final Codes edges = new Codes();
+        private final Codes now = new Codes();
+        private final Codes wide = new Codes();
+        private int first;
+        private int behind;
+
+        /** Forgets the NAMES of before, but no UNIT. */
+        void begin() {
+            starts.cutTo(0);
+            edges.cutTo(0);
+        }
+
+        /** Passes over a NAME that is no part of others. */
+        int ofNone() {
+            starts.add(0);
+            return NONE;
+        }
+
+        /** The UNIT of the next NAME, which is made of signs and of NAMES before it. */
+        int unitOf(Codes letters, int from, int size) {
+            int number = starts.size();
+            starts.add(edges.size());
+            now.cutTo(0);
+            for (int i = from; i < from + size; i++) {
+                int code = letters.at(i);
+                addItem(now, code < SHARED ? code : ~(code - SHARED >> 1));
+            }
+            for (int step = 1; step < MOST_STEPS && now.size() > 0; step++) {
+                spread(step);
+                giveUpEdges(step);
+                draw(step);
+            }
+            now.cutTo(0);
+            addItem(now, ~number);
+            for (int step = 1; step < MOST_STEPS && (now.size() > ITEM_SIZE || now.at(0) < 0); step++) {
+                spread(step);
+                first = 0;
+                behind = wide.size();
+                draw(step);
+            }
+            return now.at(0);
+        }
+
+        private static void addItem(Codes to, int item) {
+            to.add(item);
+            to.add(1);
+            for (int i = 1; i < DIGITS; i++) {
+                to.add(0);
+            }
+        }
+
+        /** Lets each NAME give up its edges. */
+        private void spread(int step) {
+            boolean runs = (step & 1) != 0;
+            wide.cutTo(0);
+            for (int at = 0; at < now.size(); at += ITEM_SIZE) {
+                int item = now.at(at);
+                if (item >= 0) {
+                    take(now, at, runs);
+                    continue;
+                }
+                int edge = starts.at(~item) + (step - 1) * EDGE_SIZE;
+                if (edges.at(edge) != NONE) {
+                    take(edges, edge, runs);
+                }
+                if (edges.at(edge + 2 * ITEM_SIZE) != 0) {
+                    take(now, at, false);
+                }
+                if (edges.at(edge + ITEM_SIZE) != NONE) {
+                    take(edges, edge + ITEM_SIZE, runs);
+                }
+            }
+        }
+
+        /** Puts an item behind the others, or its count to that of the last one. */
+        private void take(Codes from, int at, boolean runs) {
+            int last = wide.size() - ITEM_SIZE;
+            if (!runs || last < 0 || wide.at(last) != from.at(at)) {
+                wide.addSome(from, at, ITEM_SIZE);
+                return;
+            }
+            int carry = 0;
+            for (int i = 1; i <= DIGITS; i++) {
+                int digit = wide.at(last + i) + from.at(at + i) + carry;
+                wide.set(last + i, digit & HIGHEST_DIGIT);
+                carry = digit >>> DIGIT_BITS;
+            }
+        }
+
+        private static void takeCount(Codes to, int at, Codes from, int fromAt) {
+            int borrow = 0;
+            for (int i = 0; i < DIGITS; i++) {
+                int digit = to.at(at + i) - from.at(fromAt + i) - borrow;
+                to.set(at + i, digit & HIGHEST_DIGIT);
+                borrow = digit < 0 ? 1 : 0;
+            }
+        }
+
+        private static int compareCounts(Codes count, int at, Codes other, int otherAt) {
+            for (int i = DIGITS - 1; i >= 0; i--) {
+                if (count.at(at + i) != other.at(otherAt + i)) {
+                    return count.at(at + i) < other.at(otherAt + i) ? -1 : 1;
+                }
+            }
+            return 0;
+        }
+
+        private static boolean isOne(Codes count, int at) {
+            for (int i = 1; i < DIGITS; i++) {
+                if (count.at(at + i) != 0) {
+                    return false;
+                }
+            }
+            return count.at(at) == 1;
+        }
+
+        /** Keeps the edges of the NAME that is gone through, and leaves what is between them. */
+        private void giveUpEdges(int step) {
+            boolean runs = (step & 1) != 0;
+            first = 0;
+            behind = wide.size();
+            int item = behind > 0 ? wide.at(0) : NONE;
+            if (item >= 0 && (runs || isOnTheRight(item, step))) {
+                edges.addSome(wide, 0, ITEM_SIZE);
+                first = ITEM_SIZE;
+            } else {
+                addItem(edges, NONE);
+            }
+            item = behind > first ? wide.at(behind - ITEM_SIZE) : NONE;
+            if (item >= 0 && (runs || !isOnTheRight(item, step))) {
+                behind -= ITEM_SIZE;
+                edges.addSome(wide, behind, ITEM_SIZE);
+            } else {
+                addItem(edges, NONE);
+            }
+            edges.add(behind > first ? 1 : 0);
+        }
+
+        /** Draws together what a step draws together. */
+        private void draw(int step) {
+            boolean runs = (step & 1) != 0;
+            now.cutTo(0);
+            for (int at = first; at < behind; at += ITEM_SIZE) {
+                int item = wide.at(at);
+                int next = at + ITEM_SIZE;
+                if (item >= 0 && runs) {
+                    item = isOne(wide, at + 1) ? item : unitFor(item, NONE, at + 1, step);
+                } else if (item >= 0 && next < behind && wide.at(next) >= 0 && !isOnTheRight(item, step)
+                    && isOnTheRight(wide.at(next), step)) {
+                    item = unitFor(item, wide.at(next), 0, step);
+                    at = next;
+                }
+                addItem(now, item);
+            }
+        }
+
+        /** On which side of a pair a UNIT may stand at a step: by chance, but always the same. */
+        private static boolean isOnTheRight(int unit, int step) {
+            long mixed = unit * 0x9E3779B97F4A7C15L + step * 0xD1B54A32D192ED03L;
+            mixed = (mixed ^ mixed >>> 32) * 0xBF58476D1CE4E5B9L;
+            mixed = (mixed ^ mixed >>> 29) * 0x94D049BB133111EBL;
+            return mixed < 0;
+        }
+
+        /** The UNIT of two others, or (without a right one) of one of them as often as a count in wide tells. */
+        private int unitFor(int left, int right, int count, int step) {
+            int slot = left * 31 + right;
+            for (int i = 0; right < 0 && i < DIGITS; i++) {
+                slot = slot * 31 + wide.at(count + i);
+            }
+            slot = (slot ^ slot >>> 12 ^ slot >>> 24) & SLOTS - 1;
+            int found = heads[slot] - 1;
+            for (int tries = 0; tries < units.size() && found >= 0; tries++) {
+                int at = found * UNIT_SIZE;
+                int its = units.at(at + RIGHT);
+                if (units.at(at) == left
+                    && (right >= 0 ? its == right : its < 0 && counts.sameSome(~its, wide, count, DIGITS))) {
+                    return SHARED + found;
+                }
+                found = units.at(at + NEXT);
+            }
+            units.add(left);
+            units.add(right >= 0 ? right : ~counts.size());
+            units.add(step);
+            units.add(heads[slot] - 1);
+            heads[slot] = units.size() / UNIT_SIZE;
+            if (right < 0) {
+                counts.addSome(wide, count, DIGITS);
+            }
+            return SHARED + heads[slot] - 1;
+        }
+
+        private int stepOf(int unit) {
+            return unit < SHARED ? 0 : units.at((unit - SHARED) * UNIT_SIZE + STEP);
+        }
+
+        /** Tells by -1, 0, 1 whether the signs of a UNIT are ahead of those of another one, the same or behind. */
+        int compare(int unit, int other) {
+            now.cutTo(0);
+            addItem(now, unit);
+            wide.cutTo(0);
+            addItem(wide, other);
+            for (long step = 0; step < MOST_WALKED && now.size() > 0 && wide.size() > 0; step++) {
+                int ours = now.at(now.size() - ITEM_SIZE);
+                int theirs = wide.at(wide.size() - ITEM_SIZE);
+                if (ours == theirs) {
+                    dropSame();
+                } else if (ours < SHARED && theirs < SHARED) {
+                    return ours < theirs ? -1 : 1;
+                } else if (stepOf(ours) >= stepOf(theirs)) {
+                    open(now);
+                } else {
+                    open(wide);
+                }
+            }
+            return Math.min(now.size(), 1) - Math.min(wide.size(), 1);
+        }
+
+        /** Drops the UNIT with which both begin, as often as it comes in both. */
+        private void dropSame() {
+            int ours = now.size() - ITEM_SIZE;
+            int theirs = wide.size() - ITEM_SIZE;
+            int order = compareCounts(now, ours + 1, wide, theirs + 1);
+            if (order < 0) {
+                takeCount(wide, theirs + 1, now, ours + 1);
+            } else if (order > 0) {
+                takeCount(now, ours + 1, wide, theirs + 1);
+            }
+            if (order <= 0) {
+                now.cutTo(ours);
+            }
+            if (order >= 0) {
+                wide.cutTo(theirs);
+            }
+        }
+
+        /** Puts what the last UNIT of a row is drawn together from in its place, the first part last. */
+        private void open(Codes row) {
+            int last = row.size() - ITEM_SIZE;
+            int at = (row.at(last) - SHARED) * UNIT_SIZE;
+            int right = units.at(at + RIGHT);
+            if (isOne(row, last + 1)) {
+                row.cutTo(last);
+            } else {
+                boolean borrows = true;
+                for (int i = last + 1; i < row.size() && borrows; i++) {
+                    borrows = row.at(i) == 0;
+                    row.set(i, row.at(i) - 1 & HIGHEST_DIGIT);
+                }
+            }
+            if (right >= 0) {
+                addItem(row, right);
+                addItem(row, units.at(at));
+            } else {
+                row.add(units.at(at));
+                row.addSome(counts, ~right, DIGITS);
+            }
+        }
+    }
+
     /** Reads EXPRESSIONS and reckons them. */
     private static final class Reckoner {
         // What waits, by how tightly it binds: "(", + and -, * and /, a "-" before a FACTOR; the place tells the sign.
@@ -2249,7 +2517,7 @@ public final class Twopassworks {
         private static final int PLACES_NOW = NUMBERS_NOW + MOST_NUMBERS;
         private static final int SLOT_SIZE = PLACES_NOW + MOST_WAITING;
 
-        private final Tokens tokens = new Tokens();
+        private final Tokens tokens;
         private int from;
         private int to;
         private int missCode;
@@ -2268,6 +2536,10 @@ public final class Twopassworks {
         private int visits;
         private int firstVisit;
         private long[] remembered = new long[0];
+
+        Reckoner(Units units) {
+            tokens = new Tokens(units);
+        }
 
         int missCode() {
             return missCode;
@@ -2689,8 +2961,8 @@ public final class Twopassworks {
 
     /** From a source to FLAT lines (section 3); it keeps the fault that was met, here or later. */
     private static final class Expander {
-        private final Reckoner reckoner = new Reckoner();
-        private final Tokens tokens = reckoner.tokens;
+        private final Reckoner reckoner;
+        private final Tokens tokens;
         private final ArrayList<Row> rows = new ArrayList<Row>();
         private int rowCount;
         private final ArrayList<Flat> flats = new ArrayList<Flat>();
@@ -2709,6 +2981,11 @@ public final class Twopassworks {
         private long faultPlace;
         private final Row noRow = new Row();
         private final Flat noFlat = new Flat();
+
+        Expander(Units units) {
+            reckoner = new Reckoner(units);
+            tokens = reckoner.tokens;
+        }
 
         int faultCode() {
             return faultCode;
@@ -2780,6 +3057,7 @@ public final class Twopassworks {
                     addLine(tokens.read(i == replaced ? text : tokens.lent(text)), i);
                 }
             }
+            tokens.unite();
             Frame frame = pushFrame(noRow, 0);
             if (frame != null) {
                 frame.end = rowCount;
@@ -3397,7 +3675,7 @@ public final class Twopassworks {
 
     /** One assembly: what sections 4 to 7 make of FLAT lines. */
     private static final class Assembly {
-        private final Expander expander = new Expander();
+        private final Expander expander;
         private final Memory memory = new Memory();
         private final int[] sizes = new int[MOST_LINES];
         private final int[] otherSizes = new int[MOST_LINES];
@@ -3418,6 +3696,10 @@ public final class Twopassworks {
         private final Codes literalNumbers = new Codes();
         private final Codes literalBases = new Codes();
 
+        Assembly(Units units) {
+            expander = new Expander(units);
+        }
+
         /** Goes on behind section 3, if that brought no fault. */
         void finish() {
             memory.wipe();
@@ -3432,6 +3714,7 @@ public final class Twopassworks {
                 defineSymbols();
             }
             if (stands()) {
+                gatherSymbols();
                 sortSymbols();
                 settleUses();
                 settleJumps();
@@ -3485,33 +3768,39 @@ public final class Twopassworks {
             name.flat = flat;
         }
 
-        private void sortSymbols() {
+        private void gatherSymbols() {
             for (int i = 0; i < flatCount(); i++) {
                 Flat flat = expander.flatAt(i);
                 Name named = expander.tokens.nameAt(flat.row, flat.operands);
                 if (flat.label != null) {
-                    insertSymbol(flat.label);
+                    addSymbol(flat.label);
                 } else if (flat.word == WANT) {
-                    insertSymbol(named);
+                    addSymbol(named);
                 } else if (flat.word == WEAK && named.kind == 0) {
                     named.kind = WEAK_ALONE;
                     named.flat = i;
-                    insertSymbol(named);
+                    addSymbol(named);
                 }
             }
         }
 
-        private void insertSymbol(Name name) {
-            if (symbolCount >= MOST_LINES) {
-                return;
+        private void addSymbol(Name name) {
+            if (symbolCount < MOST_LINES) {
+                symbols[symbolCount] = name;
+                symbolCount++;
             }
-            int at = symbolCount;
-            while (at > 0 && expander.tokens.isAhead(name, symbolAt(at - 1))) {
-                symbols[at] = symbolAt(at - 1);
-                at--;
+        }
+
+        private void sortSymbols() {
+            for (int i = 1; i < symbolCount; i++) {
+                Name name = symbolAt(i);
+                int at = i;
+                while (at > 0 && expander.tokens.isAhead(name, symbolAt(at - 1))) {
+                    symbols[at] = symbolAt(at - 1);
+                    at--;
+                }
+                symbols[at] = name;
             }
-            symbols[at] = name;
-            symbolCount++;
         }
 
         /** Finds which SYMBOLS stand in each PIECE (these stand in ones of higher numbers) and each FLAT line. */
