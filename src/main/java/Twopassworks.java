@@ -43,6 +43,10 @@ public final class Twopassworks {
     private static final int MOST_WRITTEN = 640;
     private static final int MOST_HEAD = 4;
     private static final int STATES = 32;
+    // A count that may be above all that a long tells has so many digits to such a base, the lowest one first.
+    private static final int DIGITS = 4;
+    private static final int DIGIT_BITS = 30;
+    private static final int HIGHEST_DIGIT = (1 << DIGIT_BITS) - 1;
 
     private static final int FAULT_SIGN = 1;
     private static final int FAULT_NUMBER = 2;
@@ -922,36 +926,36 @@ public final class Twopassworks {
             return FAULT_ARGUMENT;
         }
         Reckoner reckoner = image.expander.reckoner;
-        reckoner.forget();
-        int code = pushAtom(x);
-        if (code == 0 && shape == 8) {
-            code = reckoner.negate();
+        reckoner.begin();
+        if (shape == 8) {
+            reckoner.add(Reckoner.MINUS, '-', NONE, 0);
         }
-        if (code == 0 && between != 0) {
-            code = pushAtom(y);
-            if (code == 0) {
-                code = reckoner.join(between);
-            }
+        if (shape == 7) {
+            reckoner.add(Reckoner.OPEN, '(', NONE, 0);
         }
-        if (code == 0 && shape == 7) {
-            reckoner.push(2, NONE);
-            code = reckoner.join('*');
+        addAtom(x);
+        if (between != 0) {
+            reckoner.add(between == '*' || between == '/' ? Reckoner.TIMES : Reckoner.PLUS, between, NONE, 0);
+            addAtom(y);
         }
-        return code;
+        if (shape == 7) {
+            reckoner.add(Reckoner.CLOSED, ')', NONE, 0);
+            reckoner.add(Reckoner.TIMES, '*', NONE, 0);
+            reckoner.add(Reckoner.VALUE, 2, NONE, 0);
+        }
+        reckoner.ends();
+        return reckoner.missCode();
     }
 
-    private int pushAtom(int atom) {
+    private void addAtom(int atom) {
         Reckoner reckoner = image.expander.reckoner;
-        if (atom < 1000) {
-            reckoner.push(atom, NONE);
-            return 0;
-        }
-        if (atom >= 2000) {
-            reckoner.push(atom - 2000, NONE);
-            return 0;
+        if (atom < 1000 || atom >= 2000) {
+            reckoner.add(Reckoner.VALUE, atom < 1000 ? atom : atom - 2000, NONE, 0);
+            return;
         }
         if (atom == 1300) {
-            return FAULT_KNOWN;
+            reckoner.add(Reckoner.FAULTY, FAULT_KNOWN, NONE, 0);
+            return;
         }
         out.cutTo(0);
         out.add('a' + atom % 100);
@@ -959,12 +963,12 @@ public final class Twopassworks {
             out.addAll("_0");
         }
         int found = image.symbolNamed(out);
-        if (found == NONE) {
-            return FAULT_UNKNOWN;
-        }
         Name name = image.symbolAt(found);
-        reckoner.push(name.number, name.base);
-        return 0;
+        if (found == NONE) {
+            reckoner.add(Reckoner.FAULTY, FAULT_UNKNOWN, NONE, 0);
+        } else {
+            reckoner.add(Reckoner.VALUE, name.number, name.base, 0);
+        }
     }
 
     /** A row of numbers that grows as it needs: TOKENS, what is told of MOVES, or the codes of a text (see Tokens). */
@@ -1093,6 +1097,55 @@ public final class Twopassworks {
         void become(Codes other) {
             count = 0;
             addSome(other, 0, other.count);
+        }
+
+        /** Puts a number with the count 1 behind the others (see Units). */
+        void addOnce(int code) {
+            if (DIGITS >= all.length - count && count < MOST_ROOM) {
+                all = Arrays.copyOf(all, count * 2 + DIGITS);
+            }
+            if (DIGITS < all.length - count) {
+                all[count] = code;
+                all[count + 1] = 1;
+                Arrays.fill(all, count + 2, count + 1 + DIGITS, 0);
+                count += 1 + DIGITS;
+            }
+        }
+
+        /** Adds a count of another row to one of this row, or takes it away (see Units). */
+        void addCount(int at, Codes other, int otherAt, boolean takesAway) {
+            if (at < 0 || otherAt < 0 || DIGITS > count - at || DIGITS > other.count - otherAt) {
+                return;
+            }
+            int carry = 0;
+            for (int i = 0; i < DIGITS; i++) {
+                int its = other.all[otherAt + i];
+                int digit = all[at + i] + (takesAway ? -its : its) + carry;
+                all[at + i] = digit & HIGHEST_DIGIT;
+                carry = digit >> DIGIT_BITS;
+            }
+        }
+
+        /** Whether a count is 1. */
+        boolean isOne(int at) {
+            boolean one = at >= 0 && DIGITS <= count - at && all[at] == 1;
+            for (int i = 1; i < DIGITS && one; i++) {
+                one = all[at + i] == 0;
+            }
+            return one;
+        }
+
+        /** Tells by -1, 0, 1 whether a count is less than one of another row, the same or more. */
+        int compareCount(int at, Codes other, int otherAt) {
+            if (at < 0 || otherAt < 0 || DIGITS > count - at || DIGITS > other.count - otherAt) {
+                return 0;
+            }
+            for (int i = DIGITS - 1; i >= 0; i--) {
+                if (all[at + i] != other.all[otherAt + i]) {
+                    return all[at + i] < other.all[otherAt + i] ? -1 : 1;
+                }
+            }
+            return 0;
         }
 
         /** Whether so many numbers from a place on are those of another row from a place on. */
@@ -2216,10 +2269,6 @@ public final class Twopassworks {
         private static final int STEP = 2;
         private static final int NEXT = 3;
         private static final int UNIT_SIZE = 4;
-        // A count has so many digits to such a base, the lowest one first.
-        private static final int DIGITS = 4;
-        private static final int DIGIT_BITS = 30;
-        private static final int HIGHEST_DIGIT = (1 << DIGIT_BITS) - 1;
         // An item is a UNIT with its count, or minus a NAME's number less 1.
         private static final int ITEM_SIZE = 1 + DIGITS;
         private static final int EDGE_SIZE = 2 * ITEM_SIZE + 1;
@@ -2253,7 +2302,7 @@ public final class Twopassworks {
             now.cutTo(0);
             for (int i = from; i < from + size; i++) {
                 int code = letters.at(i);
-                addItem(now, code < SHARED ? code : ~(code - SHARED >> 1));
+                now.addOnce(code < SHARED ? code : ~(code - SHARED >> 1));
             }
             for (int step = 1; step < MOST_STEPS && now.size() > 0; step++) {
                 spread(step);
@@ -2261,7 +2310,7 @@ public final class Twopassworks {
                 draw(step);
             }
             now.cutTo(0);
-            addItem(now, ~number);
+            now.addOnce(~number);
             for (int step = 1; step < MOST_STEPS && (now.size() > ITEM_SIZE || now.at(0) < 0); step++) {
                 spread(step);
                 first = 0;
@@ -2269,14 +2318,6 @@ public final class Twopassworks {
                 draw(step);
             }
             return now.at(0);
-        }
-
-        private static void addItem(Codes to, int item) {
-            to.add(item);
-            to.add(1);
-            for (int i = 1; i < DIGITS; i++) {
-                to.add(0);
-            }
         }
 
         /** Lets each NAME give up its edges. */
@@ -2305,43 +2346,11 @@ public final class Twopassworks {
         /** Puts an item behind the others, or its count to that of the last one. */
         private void take(Codes from, int at, boolean runs) {
             int last = wide.size() - ITEM_SIZE;
-            if (!runs || last < 0 || wide.at(last) != from.at(at)) {
+            if (runs && last >= 0 && wide.at(last) == from.at(at)) {
+                wide.addCount(last + 1, from, at + 1, false);
+            } else {
                 wide.addSome(from, at, ITEM_SIZE);
-                return;
             }
-            int carry = 0;
-            for (int i = 1; i <= DIGITS; i++) {
-                int digit = wide.at(last + i) + from.at(at + i) + carry;
-                wide.set(last + i, digit & HIGHEST_DIGIT);
-                carry = digit >>> DIGIT_BITS;
-            }
-        }
-
-        private static void takeCount(Codes to, int at, Codes from, int fromAt) {
-            int borrow = 0;
-            for (int i = 0; i < DIGITS; i++) {
-                int digit = to.at(at + i) - from.at(fromAt + i) - borrow;
-                to.set(at + i, digit & HIGHEST_DIGIT);
-                borrow = digit < 0 ? 1 : 0;
-            }
-        }
-
-        private static int compareCounts(Codes count, int at, Codes other, int otherAt) {
-            for (int i = DIGITS - 1; i >= 0; i--) {
-                if (count.at(at + i) != other.at(otherAt + i)) {
-                    return count.at(at + i) < other.at(otherAt + i) ? -1 : 1;
-                }
-            }
-            return 0;
-        }
-
-        private static boolean isOne(Codes count, int at) {
-            for (int i = 1; i < DIGITS; i++) {
-                if (count.at(at + i) != 0) {
-                    return false;
-                }
-            }
-            return count.at(at) == 1;
         }
 
         /** Keeps the edges of the NAME that is gone through, and leaves what is between them. */
@@ -2354,14 +2363,14 @@ public final class Twopassworks {
                 edges.addSome(wide, 0, ITEM_SIZE);
                 first = ITEM_SIZE;
             } else {
-                addItem(edges, NONE);
+                edges.addOnce(NONE);
             }
             item = behind > first ? wide.at(behind - ITEM_SIZE) : NONE;
             if (item >= 0 && (runs || !isOnTheRight(item, step))) {
                 behind -= ITEM_SIZE;
                 edges.addSome(wide, behind, ITEM_SIZE);
             } else {
-                addItem(edges, NONE);
+                edges.addOnce(NONE);
             }
             edges.add(behind > first ? 1 : 0);
         }
@@ -2374,13 +2383,13 @@ public final class Twopassworks {
                 int item = wide.at(at);
                 int next = at + ITEM_SIZE;
                 if (item >= 0 && runs) {
-                    item = isOne(wide, at + 1) ? item : unitFor(item, NONE, at + 1, step);
+                    item = wide.isOne(at + 1) ? item : unitFor(item, NONE, at + 1, step);
                 } else if (item >= 0 && next < behind && wide.at(next) >= 0 && !isOnTheRight(item, step)
                     && isOnTheRight(wide.at(next), step)) {
                     item = unitFor(item, wide.at(next), 0, step);
                     at = next;
                 }
-                addItem(now, item);
+                now.addOnce(item);
             }
         }
 
@@ -2427,9 +2436,9 @@ public final class Twopassworks {
         /** Tells by -1, 0, 1 whether the signs of a UNIT are ahead of those of another one, the same or behind. */
         int compare(int unit, int other) {
             now.cutTo(0);
-            addItem(now, unit);
+            now.addOnce(unit);
             wide.cutTo(0);
-            addItem(wide, other);
+            wide.addOnce(other);
             for (long step = 0; step < MOST_WALKED && now.size() > 0 && wide.size() > 0; step++) {
                 int ours = now.at(now.size() - ITEM_SIZE);
                 int theirs = wide.at(wide.size() - ITEM_SIZE);
@@ -2450,11 +2459,11 @@ public final class Twopassworks {
         private void dropSame() {
             int ours = now.size() - ITEM_SIZE;
             int theirs = wide.size() - ITEM_SIZE;
-            int order = compareCounts(now, ours + 1, wide, theirs + 1);
+            int order = now.compareCount(ours + 1, wide, theirs + 1);
             if (order < 0) {
-                takeCount(wide, theirs + 1, now, ours + 1);
+                wide.addCount(theirs + 1, now, ours + 1, true);
             } else if (order > 0) {
-                takeCount(now, ours + 1, wide, theirs + 1);
+                now.addCount(ours + 1, wide, theirs + 1, true);
             }
             if (order <= 0) {
                 now.cutTo(ours);
@@ -2469,7 +2478,7 @@ public final class Twopassworks {
             int last = row.size() - ITEM_SIZE;
             int at = (row.at(last) - SHARED) * UNIT_SIZE;
             int right = units.at(at + RIGHT);
-            if (isOne(row, last + 1)) {
+            if (row.isOne(last + 1)) {
                 row.cutTo(last);
             } else {
                 boolean borrows = true;
@@ -2479,8 +2488,8 @@ public final class Twopassworks {
                 }
             }
             if (right >= 0) {
-                addItem(row, right);
-                addItem(row, units.at(at));
+                row.addOnce(right);
+                row.addOnce(units.at(at));
             } else {
                 row.add(units.at(at));
                 row.addSome(counts, ~right, DIGITS);
@@ -2488,54 +2497,68 @@ public final class Twopassworks {
         }
     }
 
-    /** Reads EXPRESSIONS and reckons them. */
+    /**
+     * Reads EXPRESSIONS and reckons them. A row is reckoned into a list of items: what waits, and VALUES. What a PIECE
+     * does to what stands ahead of it, whatever that is, is such a list, too, which is found but once: FACTORS are all
+     * * and / that go on an open PRODUCT, TERMS all PRODUCTS that go on an open sum.
+     */
     private static final class Reckoner {
-        // What waits, by how tightly it binds: "(", + and -, * and /, a "-" before a FACTOR; the place tells the sign.
-        private static final String OPERATIONS = " (+-*/-";
-        private static final int OPEN = 1;
-        private static final int ADD = 2;
-        private static final int MULTIPLY = 4;
-        private static final int MINUS = 6;
-        // At most "+", "*" and "(" three times, then "+" and "*" wait, and a number on the left of each + and *.
-        private static final int MOST_WAITING = 12;
-        private static final int MOST_NUMBERS = 10;
-        // What is remembered of a PIECE: what waited when it was begun, and what waited when it was left.
-        private static final int SLOTS = 512;
-        private static final int MOST_VISITS = 1 << 30;
-        private static final int PIECE_BEGUN = 0;
-        private static final int VISIT = 1;
-        private static final int IS_LEFT = 2;
-        private static final int WAITING_THEN = 3;
-        private static final int COUNT_THEN = 4;
-        private static final int NUMBERS_THEN = 5;
-        private static final int LEAST_WAITING = NUMBERS_THEN + MOST_NUMBERS;
-        private static final int WAITING_NOW = LEAST_WAITING + 1;
-        private static final int WAITING_COUNT_NOW = LEAST_WAITING + 2;
-        private static final int WANTS_NOW = LEAST_WAITING + 3;
-        private static final int COUNT_NOW = LEAST_WAITING + 4;
-        private static final int NUMBERS_NOW = LEAST_WAITING + 5;
-        private static final int PLACES_NOW = NUMBERS_NOW + MOST_NUMBERS;
-        private static final int SLOT_SIZE = PLACES_NOW + MOST_WAITING;
+        private static final int VALUE = 1;
+        private static final int CLOSED = 2;
+        private static final int FACTORS = 3;
+        private static final int TERMS = 4;
+        private static final int FAULTY = 5;
+        // Behind these a FACTOR must follow. With TIMES (* or /) and PLUS (+ or -) the number is the sign.
+        private static final int OPEN = 6;
+        private static final int MINUS = 7;
+        private static final int TIMES = 8;
+        private static final int PLUS = 9;
+        // An item: its kind, a number (or sign, NODE, code of a fault), BASE, place (of a PIECE's items: in the PIECE).
+        private static final int ITEM_SIZE = 4;
+        // A NODE is a sign, a number and its BASE, or two NODES and how much further the second one stands.
+        private static final int JOINED = 0;
+        private static final int SIGN_OR_FIRST = 1;
+        private static final int NUMBER_OR_SECOND = 2;
+        private static final int BASE_OR_DISTANCE = 3;
+        // With TERMS: what they add in all, at least and at most on the way, the BASE that they ask for and make.
+        private static final int ADDS = 4;
+        private static final int LEAST = 5;
+        private static final int MOST = 6;
+        private static final int ASKS = 7;
+        private static final int MAKES = 8;
+        private static final int NODE_SIZE = 9;
+        private static final int ANY_BASE = -2;
+        private static final int NEVER = -3;
+        private static final int MOST_APART = 2 * MOST_NUMBER;
+        // What FACTORS make of a number: the reckoning for which that is so, NODE, number, what it becomes.
+        private static final int SLOTS = 8192;
+        private static final int SLOT_SIZE = 4;
 
         private final Tokens tokens;
         private int from;
         private int to;
         private int missCode;
         private long missPlace;
-        // The numbers that wait, each with its BASE: 65536 * number + BASE + 1.
-        private final long[] numbers = new long[MOST_NUMBERS];
-        private int count;
-        // What waits, three bits each, the last one lowest; and where each of it stands.
-        private long waiting;
-        private int waitingCount;
-        private int leastWaiting;
-        private final long[] places = new long[MOST_WAITING];
-        private boolean wants;
-        private long place;
+        private int[] items = new int[64 * ITEM_SIZE];
+        private int itemCount;
+        // Where the list begins that is made now; it is that of a PIECE: 2 * PIECE + whether a FACTOR must follow first.
+        private int bottom;
+        private int begun;
+        private int at;
+        private int end;
+        private int place;
+        // What was begun and is to be gone on with.
         private final Codes visited = new Codes();
-        private int visits;
-        private int firstVisit;
-        private long[] remembered = new long[0];
+        private int reckonings;
+        private int[] nodes = new int[64 * NODE_SIZE];
+        private int nodeCount;
+        // The lists of PIECES; of each: the reckoning for which it is right, where it begins and ends.
+        private final Codes kept = new Codes();
+        private final Codes lists = new Codes();
+        private int number;
+        private int base;
+        private int[] remembered = new int[0];
+        private final Codes todo = new Codes();
 
         Reckoner(Units units) {
             tokens = new Tokens(units);
@@ -2550,11 +2573,11 @@ public final class Twopassworks {
         }
 
         int number() {
-            return count > 0 && count <= MOST_NUMBERS ? (int) (numbers[count - 1] >> 16) : 0;
+            return number;
         }
 
         int base() {
-            return count > 0 && count <= MOST_NUMBERS ? (int) (numbers[count - 1] & 65535) - 1 : NONE;
+            return base;
         }
 
         private int miss(int code, long itsPlace) {
@@ -2651,243 +2674,432 @@ public final class Twopassworks {
          * the SYMBOLS for a FLAT line at that OFFSET in that PART.
          */
         boolean reckon(Row row, boolean known, int offset, int part) {
-            forget();
-            place = tokens.placeOf(row, from);
-            int at = row.start + from;
-            int end = row.start + to;
-            for (long step = 0; step < MOST_WALKED && (at < end || visited.size() > 0); step++) {
-                if (at >= end) {
-                    end = visited.takeOut(visited.size() - 1);
-                    at = visited.takeOut(visited.size() - 1);
+            begin();
+            at = row.start + from;
+            end = row.start + to;
+            place = (int) Math.min(tokens.placeOf(row, from), MOST_INT);
+            for (long step = 0; step < MOST_WALKED && (visited.size() > 0 || at < end && !fails()); step++) {
+                int token = at < end && !fails() ? tokens.all.at(at) : 0;
+                int piece = token >> 3;
+                if (token == 0) {
                     leave();
-                    continue;
-                }
-                int token = tokens.all.at(at);
-                at++;
-                if ((token & 7) != PIECE) {
-                    missCode = endsProduct(token) ? settle(ADD) : 0;
-                    missCode = missCode == 0 ? take(token, known, offset, part) : missCode;
-                    missCode = missCode == 0 && !wants ? settle(MULTIPLY) : missCode;
-                    if (missCode != 0) {
-                        return false;
+                } else if ((token & 7) != PIECE) {
+                    int kind = kindOf(token, known, offset, part);
+                    add(kind, number, base, place);
+                    place = later(place, 1);
+                    at++;
+                } else if (!isKept(2 * piece + wants())) {
+                    enter(piece);
+                } else {
+                    int list = 3 * (2 * piece + wants());
+                    for (int i = lists.at(list + 1); i < lists.at(list + 2) && !fails(); i += ITEM_SIZE) {
+                        add(kept.at(i), kept.at(i + 1), kept.at(i + 2), later(place, kept.at(i + 3)));
                     }
-                    place++;
-                } else if (!recall(token >> 3)) {
-                    visited.add(at);
-                    visited.add(end);
-                    at = tokens.pieceAt(token >> 3).from;
-                    end = at + tokens.pieceAt(token >> 3).size;
+                    place = later(place, tokens.pieceAt(piece).tokens);
+                    at++;
                 }
             }
-            missCode = settle(ADD);
-            return missCode == 0;
+            return ends();
         }
 
-        void forget() {
-            count = 0;
-            waiting = 0;
-            waitingCount = 0;
-            wants = true;
-            place = 0;
+        /** Begins to reckon: as if all stood in parentheses, so that nothing stands ahead of it. */
+        void begin() {
+            itemCount = 0;
+            bottom = 0;
+            begun = 0;
+            nodeCount = 0;
             visited.cutTo(0);
-            if (visits > MOST_VISITS) {
-                remembered = new long[0];
-                visits = 0;
-            }
-            firstVisit = visits;
+            kept.cutTo(0);
+            reckonings++;
+            append(OPEN, 0, NONE, 0);
         }
 
-        private boolean endsProduct(int token) {
-            return !wants && (token == '+' * 8 + SIGN || token == '-' * 8 + SIGN || token == ')' * 8 + SIGN);
+        /** Ends the reckoning; answers whether there was no fault. */
+        boolean ends() {
+            settle();
+            int top = (itemCount - 1) * ITEM_SIZE;
+            boolean fails = fails();
+            missCode = fails ? items[top + 1] : 0;
+            missPlace = fails ? items[top + 3] : 0;
+            number = fails ? 0 : top > 0 ? items[top + 1] : 0;
+            base = fails ? NONE : top > 0 ? items[top + 2] : NONE;
+            return !fails;
         }
 
-        /** Takes a TOKEN in; answers the code of the fault. */
-        private int take(int token, boolean known, int offset, int part) {
-            int worth = token >> 3;
-            missPlace = place;
+        boolean fails() {
+            return kindAt(itemCount - 1) == FAULTY;
+        }
+
+        private static int later(int place, long distance) {
+            return (int) Math.min(place + distance, MOST_INT);
+        }
+
+        private int kindAt(int item) {
+            return item >= bottom && item < itemCount ? items[item * ITEM_SIZE] : 0;
+        }
+
+        /** Whether a FACTOR must follow (1) or not (0). */
+        private int wants() {
+            int kind = kindAt(itemCount - 1);
+            return kind == 0 ? begun & 1 : kind >= OPEN ? 1 : 0;
+        }
+
+        /** The kind of item that a TOKEN is; its number and BASE are left in the fields. */
+        private int kindOf(int token, boolean known, int offset, int part) {
+            number = token >> 3;
+            base = NONE;
             if ((token & 7) == NUMBER) {
-                push(worth, NONE);
-            } else if ((token & 7) == NAME) {
-                Name name = tokens.named(worth);
-                push(known ? name.told : name.number, known ? NONE : name.base);
-                return known ? name.known == LET_KNOWN ? 0 : FAULT_KNOWN : name.ready ? 0 : FAULT_UNKNOWN;
-            } else if (worth == '.') {
-                push(offset, part);
-                return known ? FAULT_KNOWN : 0;
-            } else if (worth == ')') {
-                drop();
-            } else if (wants) {
-                hold(worth == '(' ? OPEN : MINUS);
+                return VALUE;
+            }
+            if ((token & 7) == NAME) {
+                Name name = tokens.named(number);
+                boolean stands = known ? name.known == LET_KNOWN : name.ready;
+                number = known ? name.told : name.number;
+                base = known ? NONE : name.base;
+                return stands ? VALUE : faulty(known ? FAULT_KNOWN : FAULT_UNKNOWN);
+            }
+            switch (number) {
+                case '.':
+                    number = offset;
+                    base = part;
+                    return known ? faulty(FAULT_KNOWN) : VALUE;
+                case '(':
+                    return OPEN;
+                case ')':
+                    return CLOSED;
+                case '+':
+                    return PLUS;
+                case '-':
+                    return wants() == 1 ? MINUS : PLUS;
+                default:
+                    return TIMES;
+            }
+        }
+
+        private int faulty(int code) {
+            number = code;
+            return FAULTY;
+        }
+
+        private void append(int kind, int itsNumber, int itsBase, int itsPlace) {
+            int at = itemCount * ITEM_SIZE;
+            if (at + ITEM_SIZE > items.length && itemCount < MOST_ROOM) {
+                items = Arrays.copyOf(items, items.length * 2);
+            }
+            if (at + ITEM_SIZE <= items.length) {
+                items[at] = kind;
+                items[at + 1] = itsNumber;
+                items[at + 2] = itsBase;
+                items[at + 3] = itsPlace;
+                itemCount++;
+            }
+        }
+
+        /** Adds an item to the list, and reckons what can be reckoned now. */
+        void add(int kind, int itsNumber, int itsBase, int itsPlace) {
+            if (kind == PLUS || kind == CLOSED || kind == TERMS) {
+                settle();
+            }
+            if (fails()) {
+                return;
+            }
+            if (kind == VALUE) {
+                arrive(itsNumber, itsBase);
+            } else if (kind == FACTORS) {
+                multiply(itsNumber, itsPlace);
+            } else if (kind == TERMS) {
+                sumUp(itsNumber, itsPlace);
+            } else if (kind == CLOSED && kindAt(itemCount - 1) == VALUE && kindAt(itemCount - 2) == OPEN) {
+                int top = (itemCount - 1) * ITEM_SIZE;
+                itemCount -= 2;
+                arrive(items[top + 1], items[top + 2]);
             } else {
-                hold(OPERATIONS.indexOf((char) worth));
-                wants = true;
-            }
-            return 0;
-        }
-
-        private void hold(int operation) {
-            if (waitingCount >= 0 && waitingCount < MOST_WAITING) {
-                places[waitingCount] = place;
-                waiting = waiting << 3 | operation;
-                waitingCount++;
+                append(kind, itsNumber, itsBase, itsPlace);
             }
         }
 
-        private void drop() {
-            if (waitingCount > 0) {
-                waiting >>= 3;
-                waitingCount--;
-                leastWaiting = Math.min(leastWaiting, waitingCount);
-            }
-        }
-
-        /** Reckons what waits last and binds at least so tightly; answers the code of the fault. */
-        private int settle(int least) {
+        /** Takes a FACTOR in: each "-" ahead of it is reckoned, then what it is to be multiplied with. */
+        private void arrive(int itsNumber, int itsBase) {
             int code = 0;
-            while (code == 0 && waitingCount > 0 && waitingCount <= MOST_WAITING && (waiting & 7) >= least) {
-                int operation = (int) waiting & 7;
-                missPlace = places[waitingCount - 1];
-                drop();
-                code = operation == MINUS ? negate() : join(OPERATIONS.charAt(operation));
+            int top = (itemCount - 1) * ITEM_SIZE;
+            number = itsNumber;
+            base = itsBase;
+            while (code == 0 && kindAt(itemCount - 1) == MINUS) {
+                code = base != NONE ? FAULT_BASE : 0;
+                number = -number;
+                itemCount--;
+                top -= ITEM_SIZE;
             }
-            return code;
+            if (code != 0) {
+                append(FAULTY, code, NONE, items[top + ITEM_SIZE + 3]);
+                return;
+            }
+            if (kindAt(itemCount - 1) != TIMES) {
+                append(VALUE, number, base, 0);
+                return;
+            }
+            int its = items[top + 3];
+            if (kindAt(itemCount - 2) == VALUE && kindAt(itemCount - 3) >= OPEN) {
+                int left = top - ITEM_SIZE;
+                itemCount -= 2;
+                code = join(items[top + 1], items[left + 1], items[left + 2], number, base);
+                append(code == 0 ? VALUE : FAULTY, code == 0 ? number : code, base, its);
+                return;
+            }
+            itemCount--;
+            int leaf = addLeaf(items[top + 1], number, base);
+            if (!joins(FACTORS, leaf, its)) {
+                append(FACTORS, leaf, NONE, its);
+            }
         }
 
-        void push(int number, int base) {
-            wants = false;
-            if (count >= 0 && count < MOST_NUMBERS) {
-                numbers[count] = ((long) number << 16) + base + 1;
-                count++;
+        /** A PRODUCT is whole: the + or - ahead of it is reckoned. */
+        private void settle() {
+            if (kindAt(itemCount - 1) != VALUE || kindAt(itemCount - 2) != PLUS) {
+                return;
+            }
+            int top = (itemCount - 1) * ITEM_SIZE;
+            int sign = items[top - ITEM_SIZE + 1];
+            int its = items[top - ITEM_SIZE + 3];
+            if (kindAt(itemCount - 3) == VALUE && kindAt(itemCount - 4) == OPEN) {
+                int left = top - 2 * ITEM_SIZE;
+                itemCount -= 3;
+                int code = join(sign, items[left + 1], items[left + 2], items[top + 1], items[top + 2]);
+                append(code == 0 ? VALUE : FAULTY, code == 0 ? number : code, base, its);
+                return;
+            }
+            itemCount -= 2;
+            int leaf = addLeaf(sign, items[top + 1], items[top + 2]);
+            if (!joins(TERMS, leaf, its)) {
+                append(TERMS, leaf, NONE, its);
             }
         }
 
-        /** Reckons a "-" before a FACTOR; answers the code of the fault. */
-        int negate() {
-            if (count < 1 || count > MOST_NUMBERS) {
-                return 0;
-            }
-            long value = numbers[count - 1];
-            numbers[count - 1] = -(value >> 16) << 16;
-            return (value & 65535) != 0 ? FAULT_BASE : 0;
-        }
-
-        /** Reckons what a sign joins; answers the code of the fault. */
-        int join(int sign) {
-            if (count < 2 || count > MOST_NUMBERS) {
-                return 0;
-            }
-            count--;
-            long leftBase = numbers[count - 1] & 65535;
-            long rightBase = numbers[count] & 65535;
-            if (sign == '+' ? leftBase != 0 && rightBase != 0
-                : sign == '-' ? rightBase != 0 && rightBase != leftBase : leftBase != 0 || rightBase != 0) {
+        /** Reckons what a sign joins; it is left in the fields. Answers the code of the fault. */
+        private int join(int sign, int left, int leftBase, int right, int rightBase) {
+            boolean adds = sign == '+';
+            boolean takes = sign == '-';
+            if (adds ? leftBase != NONE && rightBase != NONE
+                : takes ? rightBase != NONE && rightBase != leftBase : leftBase != NONE || rightBase != NONE) {
                 return FAULT_BASE;
             }
-            long left = numbers[count - 1] >> 16;
-            long right = numbers[count] >> 16;
             if (sign == '/' && right == 0) {
                 return FAULT_ZERO;
             }
-            long number = sign == '+' ? left + right : sign == '-' ? left - right
-                : sign == '*' || right == 0 ? left * right : left / right;
-            if (number > MOST_NUMBER || number < -MOST_NUMBER) {
+            long joined = adds ? (long) left + right : takes ? (long) left - right
+                : sign == '*' || right == 0 ? (long) left * right : left / right;
+            if (joined > MOST_NUMBER || joined < -MOST_NUMBER) {
                 return FAULT_RANGE;
             }
-            long base = rightBase == 0 ? leftBase : sign == '-' ? 0 : rightBase;
-            numbers[count - 1] = (number << 16) + base;
+            number = (int) joined;
+            base = rightBase == NONE ? leftBase : takes ? NONE : rightBase;
             return 0;
         }
 
-        // ---- what PIECES make of what waits: each is gone through once for the same numbers that wait
+        // ---- lists of PIECES
 
-        /** Makes what a PIECE makes of what waits now, if that is remembered; otherwise the PIECE is begun. */
-        private boolean recall(int piece) {
-            int slot = slotOf(piece);
-            if (!isRemembered(slot, piece)) {
-                visits++;
-                visited.add(slot);
-                visited.add(visits);
-                visited.add(leastWaiting);
-                begin(slot, piece);
-                return false;
-            }
-            int kept = (int) remembered[slot + LEAST_WAITING];
-            waiting = remembered[slot + WAITING_NOW];
-            waitingCount = (int) remembered[slot + WAITING_COUNT_NOW];
-            leastWaiting = Math.min(leastWaiting, kept);
-            for (int i = Math.max(kept, 0); i < waitingCount && i < MOST_WAITING; i++) {
-                places[i] = place + remembered[slot + PLACES_NOW + i];
-            }
-            wants = remembered[slot + WANTS_NOW] != 0;
-            count = (int) remembered[slot + COUNT_NOW];
-            for (int i = 0; i < count && i < MOST_NUMBERS; i++) {
-                numbers[i] = remembered[slot + NUMBERS_NOW + i];
-            }
-            place = Math.min(place + tokens.pieceAt(piece).tokens, MOST_COUNTED);
-            return true;
+        private boolean isKept(int list) {
+            return lists.at(3 * list) == reckonings;
         }
 
-        /** Where it is remembered what a PIECE makes of what waits now. */
-        private int slotOf(int piece) {
-            if (remembered.length == 0) {
-                remembered = new long[SLOTS * SLOT_SIZE];
-            }
-            long mixed = piece * 31L + waiting;
-            for (int i = 0; i < count && i < MOST_NUMBERS; i++) {
-                mixed = mixed * 1000003 + numbers[i];
-            }
-            mixed ^= mixed >>> 32;
-            return ((int) (mixed ^ mixed >>> 13) & SLOTS - 1) * SLOT_SIZE;
+        private void enter(int piece) {
+            visited.add(at);
+            visited.add(end);
+            visited.add(place);
+            visited.add(bottom);
+            visited.add(begun);
+            begun = 2 * piece + wants();
+            bottom = itemCount;
+            at = tokens.pieceAt(piece).from;
+            end = at + tokens.pieceAt(piece).size;
+            place = 0;
         }
 
-        private boolean isRemembered(int slot, int piece) {
-            if (remembered[slot + IS_LEFT] == 0 || remembered[slot + VISIT] <= firstVisit
-                || remembered[slot + PIECE_BEGUN] != piece || remembered[slot + WAITING_THEN] != waiting
-                || remembered[slot + COUNT_THEN] != count) {
-                return false;
-            }
-            for (int i = 0; i < count && i < MOST_NUMBERS; i++) {
-                if (remembered[slot + NUMBERS_THEN + i] != numbers[i]) {
-                    return false;
-                }
-            }
-            return true;
-        }
-
-        private void begin(int slot, int piece) {
-            remembered[slot + PIECE_BEGUN] = piece;
-            remembered[slot + VISIT] = visits;
-            remembered[slot + IS_LEFT] = 0;
-            remembered[slot + WAITING_THEN] = waiting;
-            remembered[slot + COUNT_THEN] = count;
-            for (int i = 0; i < count && i < MOST_NUMBERS; i++) {
-                remembered[slot + NUMBERS_THEN + i] = numbers[i];
-            }
-            leastWaiting = waitingCount;
-        }
-
-        /** Remembers what the PIECE begun last made of what waited then. */
+        /** Keeps the list of the PIECE entered last, and goes on where that stands. */
         private void leave() {
-            int outer = visited.takeOut(visited.size() - 1);
-            int visit = visited.takeOut(visited.size() - 1);
-            int slot = visited.takeOut(visited.size() - 1);
-            // Another PIECE may have been begun in its slot meanwhile.
-            if (slot >= 0 && slot <= remembered.length - SLOT_SIZE && remembered[slot + VISIT] == visit) {
-                long begun = place - tokens.pieceAt((int) remembered[slot + PIECE_BEGUN]).tokens;
-                remembered[slot + IS_LEFT] = 1;
-                remembered[slot + LEAST_WAITING] = leastWaiting;
-                remembered[slot + WAITING_NOW] = waiting;
-                remembered[slot + WAITING_COUNT_NOW] = waitingCount;
-                remembered[slot + WANTS_NOW] = wants ? 1 : 0;
-                remembered[slot + COUNT_NOW] = count;
-                for (int i = 0; i < count && i < MOST_NUMBERS; i++) {
-                    remembered[slot + NUMBERS_NOW + i] = numbers[i];
+            int list = 3 * begun;
+            for (int size = lists.size(); size < list + 3; size++) {
+                lists.add(0);
+            }
+            lists.set(list, reckonings);
+            lists.set(list + 1, kept.size());
+            for (int i = bottom * ITEM_SIZE; i < itemCount * ITEM_SIZE; i++) {
+                kept.add(items[i]);
+            }
+            lists.set(list + 2, kept.size());
+            itemCount = bottom;
+            begun = visited.takeOut(visited.size() - 1);
+            bottom = visited.takeOut(visited.size() - 1);
+            place = visited.takeOut(visited.size() - 1);
+            end = visited.takeOut(visited.size() - 1);
+            at = visited.takeOut(visited.size() - 1);
+        }
+
+        // ---- NODES
+
+        private int nodeAt(int node, int what) {
+            return node >= 0 && node < nodeCount ? nodes[node * NODE_SIZE + what] : 0;
+        }
+
+        /** Makes a NODE of a sign and what stands behind it. */
+        private int addLeaf(int sign, int itsNumber, int itsBase) {
+            int leaf = nodeCount * NODE_SIZE;
+            if (leaf + NODE_SIZE > nodes.length) {
+                nodes = Arrays.copyOf(nodes, nodes.length * 2);
+            }
+            int adds = sign == '-' ? -itsNumber : itsNumber;
+            nodes[leaf + JOINED] = 0;
+            nodes[leaf + SIGN_OR_FIRST] = sign;
+            nodes[leaf + NUMBER_OR_SECOND] = itsNumber;
+            nodes[leaf + BASE_OR_DISTANCE] = itsBase;
+            nodes[leaf + ADDS] = adds;
+            nodes[leaf + LEAST] = adds;
+            nodes[leaf + MOST] = adds;
+            nodes[leaf + ASKS] = itsBase == NONE ? ANY_BASE : sign == '-' ? itsBase : NONE;
+            nodes[leaf + MAKES] = sign == '-' ? NONE : itsBase;
+            nodeCount++;
+            return nodeCount - 1;
+        }
+
+        /** Makes one NODE of the last item's, if that is of a kind, and of another one behind it. */
+        private boolean joins(int kind, int node, int itsPlace) {
+            int top = (itemCount - 1) * ITEM_SIZE;
+            if (itemCount <= bottom || items[top] != kind) {
+                return false;
+            }
+            int whole = nodeCount * NODE_SIZE;
+            if (whole + NODE_SIZE > nodes.length) {
+                nodes = Arrays.copyOf(nodes, nodes.length * 2);
+            }
+            int first = items[top + 1] * NODE_SIZE;
+            int second = node * NODE_SIZE;
+            int adds = nodes[first + ADDS];
+            int least = Math.min(nodes[first + LEAST], adds + nodes[second + LEAST]);
+            int most = Math.max(nodes[first + MOST], adds + nodes[second + MOST]);
+            int asks = nodes[first + ASKS];
+            int then = nodes[second + ASKS];
+            boolean never = asks == NEVER || then == NEVER || asks != ANY_BASE && then != ANY_BASE
+                && then != nodes[first + MAKES] || most > MOST_APART || least < -MOST_APART || most - least > MOST_APART;
+            nodes[whole + JOINED] = 1;
+            nodes[whole + SIGN_OR_FIRST] = items[top + 1];
+            nodes[whole + NUMBER_OR_SECOND] = node;
+            nodes[whole + BASE_OR_DISTANCE] = itsPlace - items[top + 3];
+            nodes[whole + ADDS] = adds + nodes[second + ADDS];
+            nodes[whole + LEAST] = least;
+            nodes[whole + MOST] = most;
+            nodes[whole + ASKS] = never ? NEVER : asks == ANY_BASE ? then : asks;
+            nodes[whole + MAKES] = nodes[(then == ANY_BASE ? first : second) + MAKES];
+            items[top + 1] = nodeCount;
+            nodeCount++;
+            return true;
+        }
+
+        /** Whether TERMS can be added to the number and BASE in the fields without a fault. */
+        private boolean canAdd(int node) {
+            int its = node * NODE_SIZE;
+            int asks = nodes[its + ASKS];
+            return (asks == ANY_BASE || asks == base) && number + nodes[its + LEAST] >= -MOST_NUMBER
+                && number + nodes[its + MOST] <= MOST_NUMBER;
+        }
+
+        private void addAll(int node) {
+            int its = node * NODE_SIZE;
+            number += nodes[its + ADDS];
+            base = nodes[its + ASKS] == ANY_BASE ? base : nodes[its + MAKES];
+        }
+
+        /** Adds TERMS to the sum; if that brings a fault, it is looked for. */
+        private void sumUp(int node, int itsPlace) {
+            if (kindAt(itemCount - 1) != VALUE || kindAt(itemCount - 2) != OPEN) {
+                if (!joins(TERMS, node, itsPlace)) {
+                    append(TERMS, node, NONE, itsPlace);
                 }
-                for (int i = Math.max(leastWaiting, 0); i < waitingCount && i < MOST_WAITING; i++) {
-                    remembered[slot + PLACES_NOW + i] = places[i] - begun;
+                return;
+            }
+            int one = node;
+            int its = itsPlace;
+            int code = 0;
+            itemCount--;
+            number = items[itemCount * ITEM_SIZE + 1];
+            base = items[itemCount * ITEM_SIZE + 2];
+            for (int step = 0; step < nodeCount && !canAdd(one) && nodeAt(one, JOINED) != 0; step++) {
+                int first = nodeAt(one, SIGN_OR_FIRST);
+                if (canAdd(first)) {
+                    addAll(first);
+                    its = later(its, nodeAt(one, BASE_OR_DISTANCE));
+                    one = nodeAt(one, NUMBER_OR_SECOND);
+                } else {
+                    one = first;
                 }
             }
-            leastWaiting = Math.min(leastWaiting, outer);
+            if (canAdd(one)) {
+                addAll(one);
+            } else {
+                code = join(nodeAt(one, SIGN_OR_FIRST), number, base, nodeAt(one, NUMBER_OR_SECOND),
+                    nodeAt(one, BASE_OR_DISTANCE));
+            }
+            append(code == 0 ? VALUE : FAULTY, code == 0 ? number : code, base, its);
+        }
+
+        /** Multiplies and divides the PRODUCT by FACTORS; what these make of a number is remembered. */
+        private void multiply(int node, int itsPlace) {
+            if (kindAt(itemCount - 1) != VALUE || kindAt(itemCount - 2) < OPEN) {
+                if (!joins(FACTORS, node, itsPlace)) {
+                    append(FACTORS, node, NONE, itsPlace);
+                }
+                return;
+            }
+            itemCount--;
+            number = items[itemCount * ITEM_SIZE + 1];
+            base = items[itemCount * ITEM_SIZE + 2];
+            int code = base == NONE ? 0 : FAULT_BASE;
+            int its = itsPlace;
+            todo.cutTo(0);
+            todo.add(node);
+            todo.add(itsPlace);
+            for (long step = 0; step < MOST_WALKED && code == 0 && todo.size() > 0; step++) {
+                its = todo.takeOut(todo.size() - 1);
+                int one = todo.takeOut(todo.size() - 1);
+                if (one < 0) {
+                    remember(slotOf(~one, its), ~one, its);
+                } else if (nodeAt(one, JOINED) == 0) {
+                    code = join(nodeAt(one, SIGN_OR_FIRST), number, base, nodeAt(one, NUMBER_OR_SECOND),
+                        nodeAt(one, BASE_OR_DISTANCE));
+                } else if (!recall(slotOf(one, number), one)) {
+                    todo.add(~one);
+                    todo.add(number);
+                    todo.add(nodeAt(one, NUMBER_OR_SECOND));
+                    todo.add(later(its, nodeAt(one, BASE_OR_DISTANCE)));
+                    todo.add(nodeAt(one, SIGN_OR_FIRST));
+                    todo.add(its);
+                }
+            }
+            append(code == 0 ? VALUE : FAULTY, code == 0 ? number : code, base, its);
+        }
+
+        /** What a NODE makes of the number in the fields, if that is remembered. */
+        private boolean recall(int slot, int node) {
+            if (slot + SLOT_SIZE > remembered.length || remembered[slot] != reckonings
+                || remembered[slot + 1] != node || remembered[slot + 2] != number) {
+                return false;
+            }
+            number = remembered[slot + 3];
+            return true;
+        }
+
+        private void remember(int slot, int node, int ofNumber) {
+            if (remembered.length == 0) {
+                remembered = new int[SLOTS * SLOT_SIZE];
+            }
+            remembered[slot] = reckonings;
+            remembered[slot + 1] = node;
+            remembered[slot + 2] = ofNumber;
+            remembered[slot + 3] = number;
+        }
+
+        private static int slotOf(int node, int ofNumber) {
+            int mixed = (node * 131 + ofNumber) * 0x9E3779B1;
+            return (mixed >>> 16 & SLOTS - 1) * SLOT_SIZE;
         }
     }
 
@@ -3207,12 +3419,17 @@ public final class Twopassworks {
                 callMacro(row, order, name, frame);
             } else if (expressionsOf(row.word) > 0 ? !expressionsAreRight(row, order) : !nameIsRight(row, order)) {
                 return;
-            } else if (hadToBeKnown(row.word) && !isKnownWithin(row, order)) {
-                return;
-            } else if (row.word <= WEAK) {
-                addOrder(row, order, frame.expansion);
             } else {
-                openBlock(at, order, frame);
+                boolean had = hadToBeKnown(row.word);
+                boolean known = (had || row.word == LET) && reckoner.reckon(row, true, 0, NONE);
+                if (had && !isWithinBounds(row, order, known)) {
+                    return;
+                }
+                if (row.word <= WEAK) {
+                    addOrder(row, order, frame.expansion, known);
+                } else {
+                    openBlock(at, order, frame);
+                }
             }
         }
 
@@ -3287,7 +3504,7 @@ public final class Twopassworks {
         }
 
         /** Makes the FLAT line of a row with one of the words byte to weak. */
-        private void addOrder(Row row, int order, int expansion) {
+        private void addOrder(Row row, int order, int expansion, boolean known) {
             if (row.word == PART) {
                 part = reckoner.number();
             }
@@ -3301,7 +3518,6 @@ public final class Twopassworks {
             }
             // Just the first let of a NAME can make it KNOWN.
             if (row.word == LET && flat.label != null && flat.label.known == NOT_LET) {
-                boolean known = reckoner.reckon(row, true, 0, NONE);
                 flat.label.known = known ? LET_KNOWN : LET_UNKNOWN;
                 flat.label.told = known ? reckoner.number() : 0;
             }
@@ -3311,9 +3527,9 @@ public final class Twopassworks {
             return word == ROOM || word == PART || word == FROM || word == ALIGN || word == REPEAT || word == IF;
         }
 
-        /** Reckons what had to be KNOWN; answers whether it could be and is as the word asks. */
-        private boolean isKnownWithin(Row row, int order) {
-            if (!reckoner.reckon(row, true, 0, NONE)) {
+        /** Whether what had to be KNOWN could be reckoned and is as the word asks. */
+        private boolean isWithinBounds(Row row, int order, boolean known) {
+            if (!known) {
                 fail(reckoner.missCode(), row, reckoner.missPlace());
                 return false;
             }
@@ -3969,6 +4185,7 @@ public final class Twopassworks {
         }
 
         private void reckonEquates() {
+            Reckoner reckoner = expander.reckoner;
             for (int round = 0; round <= MOST_LINES && stands(); round++) {
                 int brought = 0;
                 Flat left = null;
@@ -3978,7 +4195,8 @@ public final class Twopassworks {
                         continue;
                     }
                     if (!waits(flat.usedLow, flat.usedHigh, flat.unknown)) {
-                        reckonInto(flat, flat.operands, 0);
+                        reckoner.parse(flat.row, flat.operands);
+                        takeValue(flat, 0, reckoner.reckon(flat.row, false, flat.offset, flat.part));
                         flat.label.become(flat.number(0), flat.base(0));
                         waitingLow &= ~lowBit(flat.label.symbol);
                         waitingHigh &= ~highBit(flat.label.symbol);
@@ -4024,21 +4242,20 @@ public final class Twopassworks {
             }
         }
 
-        /** Reckons an EXPRESSION of a FLAT line; answers the place behind it. */
-        private int reckonInto(Flat flat, int place, int which) {
+        /** Takes the VALUE that was reckoned last for a FLAT line, or its fault. */
+        private void takeValue(Flat flat, int which, boolean stands) {
             Reckoner reckoner = expander.reckoner;
-            int behind = reckoner.parse(flat.row, place);
-            if (!reckoner.reckon(flat.row, false, flat.offset, flat.part)) {
+            if (stands) {
+                flat.become(which, reckoner.number(), reckoner.base());
+            } else {
                 expander.fail(reckoner.missCode(), flat.row, reckoner.missPlace());
-                return behind;
             }
-            flat.become(which, reckoner.number(), reckoner.base());
-            return behind;
         }
 
         // ---- section 6
 
         private void askValues() {
+            Reckoner reckoner = expander.reckoner;
             for (int i = 0; i < flatCount() && stands(); i++) {
                 Flat flat = expander.flatAt(i);
                 if (flat.word == SHARE) {
@@ -4050,7 +4267,8 @@ public final class Twopassworks {
                 int place = flat.operands;
                 int asked = isAsked(flat.word) ? flat.expressions : 0;
                 for (int which = 0; which < asked && stands(); which++) {
-                    int behind = reckonInto(flat, place, which);
+                    int behind = reckoner.parse(flat.row, place);
+                    takeValue(flat, which, reckoner.reckon(flat.row, false, flat.offset, flat.part));
                     int fault = stands() ? askedOf(flat, which) : 0;
                     if (fault != 0) {
                         expander.fail(fault, flat.row, expander.tokens.placeOf(flat.row, place));
