@@ -24,8 +24,9 @@ public final class Twopassworks {
     private static final long MOST_WALKED = 1L << 40;
     // A row or text may be longer than can be counted: it counts as so long then.
     private static final long MOST_COUNTED = 1L << 60;
-    // More signs than all calls of a run have room for are not told.
-    private static final int MOST_TOLD = 1 << 26;
+    // More signs are not told: all calls of a run have room for far fewer. And so long a text is not kept at hand.
+    private static final int MOST_TOLD = 9 << 24;
+    private static final int MOST_AT_HAND = 1 << 20;
 
     private static final int NAME = 1;
     private static final int LOCAL = 2;
@@ -43,8 +44,9 @@ public final class Twopassworks {
     private static final int MOST_WRITTEN = 640;
     private static final int MOST_HEAD = 4;
     private static final int STATES = 32;
-    // A count that may be above all that a long tells has so many digits to such a base, the lowest one first.
-    private static final int DIGITS = 4;
+    // How often a UNIT follows itself: so many digits to such a base, the lowest one first. A NAME gets longer by rub()
+    // alone, at a column that an int tells, so it has less than 2^41 signs.
+    private static final int DIGITS = 2;
     private static final int DIGIT_BITS = 30;
     private static final int HIGHEST_DIGIT = (1 << DIGIT_BITS) - 1;
 
@@ -130,7 +132,7 @@ public final class Twopassworks {
     private final Tokens scan = new Tokens(units);
     private final Row scanned = new Row();
     private final Codes out = new Codes();
-    private final StringBuilder builder = new StringBuilder();
+    private StringBuilder builder = new StringBuilder();
     private String told = "";
 
     public Twopassworks() {
@@ -322,7 +324,7 @@ public final class Twopassworks {
         if (!hasLine(at)) {
             throw new IndexOutOfBoundsException();
         }
-        return tokensOf(at);
+        return clipped(tokensOf(at));
     }
 
     public int fault(int what) throws IllegalArgumentException {
@@ -599,7 +601,7 @@ public final class Twopassworks {
             d = mix(d, lengthOf(i));
             writeFormOf(textOf(lines, i));
             d = scan.mixed(d, out);
-            d = mix(d, tokensOf(i));
+            d = mix(d, clipped(tokensOf(i)));
         }
         d = mix(mix(mix(d, faultCode), faultLine), faultColumn);
         d = mix(d, made ? 1 : 0);
@@ -692,7 +694,7 @@ public final class Twopassworks {
     }
 
     private boolean hasSign(int at, int column) {
-        return hasLine(at) && column >= 0 && column < lengthOf(at);
+        return hasLine(at) && column >= 0 && column < scan.lengthOf(textOf(lines, at));
     }
 
     private boolean hasFlat(int at) {
@@ -749,6 +751,11 @@ public final class Twopassworks {
     private String tell(Tokens tokens, Codes text) {
         int size = (int) Math.min(tokens.lengthOf(text), MOST_TOLD);
         tokens.tell(text, builder, size);
+        if (size > MOST_AT_HAND) {
+            String all = builder.toString();
+            builder = new StringBuilder();
+            return all;
+        }
         boolean same = told.length() == size;
         for (int i = 0; i < size && same; i++) {
             same = told.charAt(i) == builder.charAt(i);
@@ -760,9 +767,9 @@ public final class Twopassworks {
     }
 
     /** Reads the TOKENS of a line; answers how many, or minus the code of the fault. */
-    private int tokensOf(int at) {
+    private long tokensOf(int at) {
         int ill = readTokens(textOf(lines, at));
-        return ill < 0 ? ill : clipped(scan.placeOf(scanned, scanned.count));
+        return ill < 0 ? ill : scan.placeOf(scanned, scanned.count);
     }
 
     /** Reads the TOKENS of a text; answers minus the code of the fault, or 0 or more. */
@@ -1171,7 +1178,7 @@ public final class Twopassworks {
         private long length;
         private long sum;
         private long power;
-        // What a long NAME is among all that are alike in no sign (see Units).
+        // The UNIT that all its signs are, if it is long (see Units).
         private int unit;
         private boolean marked;
         private int known;
@@ -2260,7 +2267,7 @@ public final class Twopassworks {
      * NAME was put together, and unlike signs never do.
      *
      * A part of a NAME that is a NAME itself is drawn together but once: at each step it gives up, on its left and on
-     * its right, what may be drawn to its neighbours. That are its edges.
+     * its right, what might be drawn to its neighbours there. These are its edges.
      */
     private static final class Units {
         private static final int SLOTS = 4096;
@@ -2393,8 +2400,12 @@ public final class Twopassworks {
             }
         }
 
-        /** On which side of a pair a UNIT may stand at a step: by chance, but always the same. */
+        /** On which side of a pair a UNIT may stand at a step: for each step about half of them on each side. */
         private static boolean isOnTheRight(int unit, int step) {
+            // At some steps a digit of its number decides, so that no two stay on the same side for ever.
+            if ((step & 14) == 14) {
+                return (unit >> (step >> 4) & 1) == (step >> 9 & 1);
+            }
             long mixed = unit * 0x9E3779B97F4A7C15L + step * 0xD1B54A32D192ED03L;
             mixed = (mixed ^ mixed >>> 32) * 0xBF58476D1CE4E5B9L;
             mixed = (mixed ^ mixed >>> 29) * 0x94D049BB133111EBL;
@@ -2498,9 +2509,10 @@ public final class Twopassworks {
     }
 
     /**
-     * Reads EXPRESSIONS and reckons them. A row is reckoned into a list of items: what waits, and VALUES. What a PIECE
-     * does to what stands ahead of it, whatever that is, is such a list, too, which is found but once: FACTORS are all
-     * * and / that go on an open PRODUCT, TERMS all PRODUCTS that go on an open sum.
+     * Reads EXPRESSIONS and reckons them. A row is reckoned into a list of items: VALUES, and signs that wait. A PIECE
+     * is reckoned but once, into such a list, too, which tells what it does to anything that stands ahead of it:
+     * FACTORS are a run of "*" and "/" that goes on with a PRODUCT begun there, TERMS a run of "+" and "-" that goes on
+     * with a sum begun there. What TERMS do is told by a few numbers, what FACTORS do is remembered.
      */
     private static final class Reckoner {
         private static final int VALUE = 1;
@@ -2541,7 +2553,7 @@ public final class Twopassworks {
         private long missPlace;
         private int[] items = new int[64 * ITEM_SIZE];
         private int itemCount;
-        // Where the list begins that is made now; it is that of a PIECE: 2 * PIECE + whether a FACTOR must follow first.
+        // Where the list begins that is made now, and of what PIECE it is: 2 * that + whether it begins with a FACTOR.
         private int bottom;
         private int begun;
         private int at;
@@ -2944,8 +2956,11 @@ public final class Twopassworks {
         /** Makes a NODE of a sign and what stands behind it. */
         private int addLeaf(int sign, int itsNumber, int itsBase) {
             int leaf = nodeCount * NODE_SIZE;
-            if (leaf + NODE_SIZE > nodes.length) {
+            if (leaf + NODE_SIZE > nodes.length && nodes.length < MOST_ROOM) {
                 nodes = Arrays.copyOf(nodes, nodes.length * 2);
+            }
+            if (leaf + NODE_SIZE > nodes.length) {
+                return NONE;
             }
             int adds = sign == '-' ? -itsNumber : itsNumber;
             nodes[leaf + JOINED] = 0;
@@ -2964,12 +2979,13 @@ public final class Twopassworks {
         /** Makes one NODE of the last item's, if that is of a kind, and of another one behind it. */
         private boolean joins(int kind, int node, int itsPlace) {
             int top = (itemCount - 1) * ITEM_SIZE;
-            if (itemCount <= bottom || items[top] != kind) {
-                return false;
-            }
             int whole = nodeCount * NODE_SIZE;
-            if (whole + NODE_SIZE > nodes.length) {
+            if (whole + NODE_SIZE > nodes.length && nodes.length < MOST_ROOM) {
                 nodes = Arrays.copyOf(nodes, nodes.length * 2);
+            }
+            if (itemCount <= bottom || items[top] != kind || items[top + 1] < 0 || node < 0
+                || whole + NODE_SIZE > nodes.length) {
+                return false;
             }
             int first = items[top + 1] * NODE_SIZE;
             int second = node * NODE_SIZE;
@@ -2978,8 +2994,9 @@ public final class Twopassworks {
             int most = Math.max(nodes[first + MOST], adds + nodes[second + MOST]);
             int asks = nodes[first + ASKS];
             int then = nodes[second + ASKS];
-            boolean never = asks == NEVER || then == NEVER || asks != ANY_BASE && then != ANY_BASE
-                && then != nodes[first + MAKES] || most > MOST_APART || least < -MOST_APART || most - least > MOST_APART;
+            boolean fits = asks == ANY_BASE || then == ANY_BASE || then == nodes[first + MAKES];
+            boolean never = asks == NEVER || then == NEVER || !fits || most > MOST_APART || least < -MOST_APART
+                || most - least > MOST_APART;
             nodes[whole + JOINED] = 1;
             nodes[whole + SIGN_OR_FIRST] = items[top + 1];
             nodes[whole + NUMBER_OR_SECOND] = node;
@@ -2996,6 +3013,9 @@ public final class Twopassworks {
 
         /** Whether TERMS can be added to the number and BASE in the fields without a fault. */
         private boolean canAdd(int node) {
+            if (node < 0 || node >= nodeCount) {
+                return false;
+            }
             int its = node * NODE_SIZE;
             int asks = nodes[its + ASKS];
             return (asks == ANY_BASE || asks == base) && number + nodes[its + LEAST] >= -MOST_NUMBER
@@ -3003,9 +3023,11 @@ public final class Twopassworks {
         }
 
         private void addAll(int node) {
-            int its = node * NODE_SIZE;
-            number += nodes[its + ADDS];
-            base = nodes[its + ASKS] == ANY_BASE ? base : nodes[its + MAKES];
+            if (node >= 0 && node < nodeCount) {
+                int its = node * NODE_SIZE;
+                number += nodes[its + ADDS];
+                base = nodes[its + ASKS] == ANY_BASE ? base : nodes[its + MAKES];
+            }
         }
 
         /** Adds TERMS to the sum; if that brings a fault, it is looked for. */
