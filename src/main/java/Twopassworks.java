@@ -2153,20 +2153,17 @@ public final class Twopassworks {
         }
 
         /**
-         * Whether a text is its FORM, in which each NAME stands as in the text: then they differ in nothing but in how
-         * far PIECES are written out, and go on to be.
+         * Whether a text is its FORM, in which each NAME stands as in the text. If it is, both have the same codes but
+         * for PIECES at the head, which are written out in the FORM alone.
          */
         boolean isForm(Codes text, Codes form) {
             int at = 0;
             for (long step = 0; step < MOST_WALKED && (at < text.size() || at < form.size()); step++) {
                 int code = text.at(at);
-                int its = form.at(at);
-                if (code == its) {
+                if (code == form.at(at)) {
                     at++;
-                } else if (isPiece(code) && (!isPiece(its) || lengthOfCode(code) >= lengthOfCode(its))) {
+                } else if (isPiece(code)) {
                     unfold(text, at);
-                } else if (isPiece(its)) {
-                    unfold(form, at);
                 } else {
                     return false;
                 }

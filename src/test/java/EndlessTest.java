@@ -294,21 +294,14 @@ public final class EndlessTest {
 
     /** Arguments inside of arguments, a number ahead of each. */
     private static void oneInsideTheOther() {
-        Twopassworks w = Due.source("word 1+1+1+1+1");
-        for (int round = 0; round < 12; round++) {
-            for (int times = 0; times < 3; times++) {
-                w.rub(0, 0);
-            }
-            for (int level = 0; level < 4; level++) {
-                w.put(3 * level, 4 + level, 15, 0, 0, 0);
-                w.put(3 * level + 1, 0, level == 3 ? 2 : 105 + level, 3, level, 1201);
-                w.put(3 * level + 2, 0, 16, 0, 0, 0);
-            }
-            Due.same("flatten()", 0, w.flatten());
+        Twopassworks w = ones(8);
+        for (int round = 0; round < 24; round++) {
+            callAgain(w, 1, "word 1+2-%1");
         }
         Due.same("assemble()", 0, w.assemble());
-        Due.same("number", 5 + 12 * (1 + 2 + 3), w.ofFlat(0, 10));
-        Due.same("text", "word " + "3+2+1+0+".repeat(12) + "1+1+1+1+1", w.text(0));
+        // 1+2-1+2-1 .. +2-0+1+0+1 ..
+        Due.same("number", 3 + 23 + 256, w.ofFlat(0, 10));
+        Due.same("text", "word " + "1+2-".repeat(24) + "0+1" + "+0+1".repeat(255), w.text(0));
     }
 
     private static int times(int number, int[] with) {

@@ -12,6 +12,7 @@ public final class LongTest {
         reckonedAnew();
         tidied();
         tidiedNames();
+        tidiedHeads();
         namesWrittenOutOrNot();
         headsOfArguments();
         readAgain();
@@ -416,6 +417,36 @@ public final class LongTest {
         then = "word 5 " + name + name + many("+5*" + name, "", 574);
         Due.same("text behind that", then, w.text(0));
         Due.same("length behind that", then.length(), w.length(0));
+    }
+
+    /** What macros share comes to stand at a text's head when the first 12 terms, which do not, are rubbed out. */
+    private static void tidiedHeads() {
+        String sum = many("b+c", "+", 1728);
+        for (int gone = 40; gone <= 52; gone++) {
+            for (int head = 0; head < 5; head++) {
+                String first = head == 3 ? "aa: word " : head == 4 ? "aa: load =" : "word ";
+                Twopassworks w = handedOn(12, "+", first, 3, "m b+c");
+                Due.same("flatten()", 0, w.flatten());
+                int from = w.text(0).indexOf(sum);
+                for (int i = 0; i < gone; i++) {
+                    w.rub(0, from);
+                }
+                if (head == 1) {
+                    w.rub(0, 4);
+                }
+                for (int i = 0; head == 2 && i < 5; i++) {
+                    w.rub(0, 0);
+                }
+                Twopassworks plain = Due.source(w.text(0).substring(0, 60));
+                String form = plain.form(0) + w.text(0).substring(60);
+                String text = w.text(0);
+                Due.same("form of " + text.substring(0, 30), form, w.form(0));
+                Due.same("tidy() of " + text.substring(0, 30), form.equals(text) ? 0 : 1, w.tidy());
+                Due.same("text then", form, w.text(0));
+                Due.same("tidy() again", 0, w.tidy());
+                Due.same("digest()", Digest.of(w), w.digest());
+            }
+        }
     }
 
     /** The same NAME stands in one place as macros have handed it on, in another one as it was rubbed. */
