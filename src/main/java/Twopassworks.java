@@ -24,8 +24,8 @@ public final class Twopassworks {
     private static final long MOST_WALKED = 1L << 40;
     // A row or text may be longer than can be counted: it counts as so long then.
     private static final long MOST_COUNTED = 1L << 60;
-    // More signs are not told: all calls of a run have room for far fewer. And so long a text is not kept at hand.
-    private static final int MOST_TOLD = 9 << 24;
+    // Of more signs just the first ones are told: all calls of a run have room for far fewer.
+    private static final int MOST_TOLD = 13 << 24;
     private static final int MOST_AT_HAND = 1 << 20;
 
     private static final int NAME = 1;
@@ -117,9 +117,8 @@ public final class Twopassworks {
 
     private final Codes[] lines = new Codes[MOST_LINES];
     private int lineCount;
-    private final Units units = new Units();
-    private Assembly image = new Assembly(units);
-    private Assembly spare = new Assembly(units);
+    private Assembly image = new Assembly();
+    private Assembly spare = new Assembly();
     private boolean made;
     private final Memory old = new Memory();
     private final Memory before = new Memory();
@@ -129,7 +128,7 @@ public final class Twopassworks {
     private int faultColumn;
     private int refused;
     // The texts of the SOURCE are its; it reads one of them at a time.
-    private final Tokens scan = new Tokens(units);
+    private final Tokens scan = new Tokens();
     private final Row scanned = new Row();
     private final Codes out = new Codes();
     private StringBuilder builder = new StringBuilder();
@@ -749,7 +748,8 @@ public final class Twopassworks {
 
     /** The signs of a text; the same ones are told by the same String, which takes no more room. */
     private String tell(Tokens tokens, Codes text) {
-        int size = (int) Math.min(tokens.lengthOf(text), MOST_TOLD);
+        long length = tokens.lengthOf(text);
+        int size = length <= MOST_TOLD ? (int) length : MOST_AT_HAND;
         tokens.tell(text, builder, size);
         if (size > MOST_AT_HAND) {
             String all = builder.toString();
@@ -1310,11 +1310,7 @@ public final class Twopassworks {
         private final Codes lentPieces = new Codes();
         // Which NAME each one is.
         private final Codes united = new Codes();
-        private final Units units;
-
-        Tokens(Units theUnits) {
-            units = theUnits;
-        }
+        private final Units units = new Units();
 
         /** Wipes all but what is kept. */
         void restart() {
@@ -2278,7 +2274,7 @@ public final class Twopassworks {
         private static final int EDGE_SIZE = 2 * ITEM_SIZE + 1;
         private final Codes units = new Codes();
         private final Codes counts = new Codes();
-        private final int[] heads = new int[SLOTS];
+        private int[] heads = new int[0];
         // Where the edges of each NAME begin.
         private final Codes starts = new Codes();
         private final Codes edges = new Codes();
@@ -2411,6 +2407,9 @@ public final class Twopassworks {
 
         /** The UNIT of two others, or (without a right one) of one of them as often as a count in wide tells. */
         private int unitFor(int left, int right, int count, int step) {
+            if (heads.length == 0) {
+                heads = new int[SLOTS];
+            }
             int slot = left * 31 + right;
             for (int i = 0; right < 0 && i < DIGITS; i++) {
                 slot = slot * 31 + wide.at(count + i);
@@ -2543,7 +2542,7 @@ public final class Twopassworks {
         private static final int SLOTS = 8192;
         private static final int SLOT_SIZE = 4;
 
-        private final Tokens tokens;
+        private final Tokens tokens = new Tokens();
         private int from;
         private int to;
         private int missCode;
@@ -2568,10 +2567,6 @@ public final class Twopassworks {
         private int base;
         private int[] remembered = new int[0];
         private final Codes todo = new Codes();
-
-        Reckoner(Units units) {
-            tokens = new Tokens(units);
-        }
 
         int missCode() {
             return missCode;
@@ -3192,8 +3187,8 @@ public final class Twopassworks {
 
     /** From a source to FLAT lines (section 3); it keeps the fault that was met, here or later. */
     private static final class Expander {
-        private final Reckoner reckoner;
-        private final Tokens tokens;
+        private final Reckoner reckoner = new Reckoner();
+        private final Tokens tokens = reckoner.tokens;
         private final ArrayList<Row> rows = new ArrayList<Row>();
         private int rowCount;
         private final ArrayList<Flat> flats = new ArrayList<Flat>();
@@ -3212,11 +3207,6 @@ public final class Twopassworks {
         private long faultPlace;
         private final Row noRow = new Row();
         private final Flat noFlat = new Flat();
-
-        Expander(Units units) {
-            reckoner = new Reckoner(units);
-            tokens = reckoner.tokens;
-        }
 
         int faultCode() {
             return faultCode;
@@ -3910,7 +3900,7 @@ public final class Twopassworks {
 
     /** One assembly: what sections 4 to 7 make of FLAT lines. */
     private static final class Assembly {
-        private final Expander expander;
+        private final Expander expander = new Expander();
         private final Memory memory = new Memory();
         private final int[] sizes = new int[MOST_LINES];
         private final int[] otherSizes = new int[MOST_LINES];
@@ -3930,10 +3920,6 @@ public final class Twopassworks {
         private final Codes literalPlaces = new Codes();
         private final Codes literalNumbers = new Codes();
         private final Codes literalBases = new Codes();
-
-        Assembly(Units units) {
-            expander = new Expander(units);
-        }
 
         /** Goes on behind section 3, if that brought no fault. */
         void finish() {
