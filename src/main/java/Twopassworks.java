@@ -1277,6 +1277,25 @@ public final class Twopassworks {
         private int count;
         private int line;
         private int word;
+        // While a BODY is HANDLED for it: which rows are still to be HANDLED, and in which EXPANSION; how many rounds
+        // are still to begin, and with which rows; where its ORDER WORD stands. (A row is HANDLED but once.)
+        private int next;
+        private int end;
+        private int expansion;
+        private int rounds;
+        private int from;
+        private int to;
+        private boolean called;
+        private int order;
+
+        void beginBody(int itsOrder) {
+            next = 0;
+            end = 0;
+            expansion = 0;
+            rounds = 0;
+            called = false;
+            order = itsOrder;
+        }
     }
 
     /**
@@ -2538,13 +2557,11 @@ public final class Twopassworks {
         private static final int ANY_BASE = -2;
         private static final int NEVER = -3;
         private static final int MOST_APART = 2 * MOST_NUMBER;
-        // What FACTORS make of a number: the reckoning for which that is so, NODE, number, what it becomes.
-        private static final int SLOTS = 8192;
-        private static final int SLOT_SIZE = 4;
+        // What FACTORS make of a number: NODE, number, what it becomes, where the next one with the same slot stands.
+        private static final int SLOTS = 4096;
+        private static final int MEMORY_SIZE = 4;
 
         private final Tokens tokens = new Tokens();
-        private int from;
-        private int to;
         private int missCode;
         private long missPlace;
         private int[] items = new int[64 * ITEM_SIZE];
@@ -2555,8 +2572,8 @@ public final class Twopassworks {
         private int at;
         private int end;
         private int place;
-        // What was begun and is to be gone on with.
-        private final Codes visited = new Codes();
+        // What was begun and is to be gone on with, that which was begun last behind all else.
+        private final Codes waiting = new Codes();
         private int reckonings;
         private int[] nodes = new int[64 * NODE_SIZE];
         private int nodeCount;
@@ -2565,8 +2582,9 @@ public final class Twopassworks {
         private final Codes lists = new Codes();
         private int number;
         private int base;
+        // For each slot where the last one stands, and what is remembered.
         private int[] remembered = new int[0];
-        private final Codes todo = new Codes();
+        private int rememberedSize;
 
         int missCode() {
             return missCode;
@@ -2628,17 +2646,16 @@ public final class Twopassworks {
         /** Reads the EXPRESSION that begins at a place of a row; answers where it ends, or NONE with a fault. */
         int parse(Row row, int begin) {
             int state = 3;
-            from = begin;
-            for (to = begin; to < row.count; to++) {
-                int token = tokens.tokenAt(row, to);
+            for (int at = begin; at < row.count; at++) {
+                int token = tokens.tokenAt(row, at);
                 int next = tokens.stateAfter(state, token);
                 if (next == 0) {
                     boolean ends = isWhole(state) && (token & 7) != PIECE;
-                    return ends ? to : missIn(row, state, tokens.placeOf(row, to));
+                    return ends ? at : missIn(row, at, state, tokens.placeOf(row, at));
                 }
                 state = next;
             }
-            return isWhole(state) ? to : miss(FAULT_LINE, tokens.placeOf(row, to));
+            return isWhole(state) ? row.count : miss(FAULT_LINE, tokens.placeOf(row, row.count));
         }
 
         /** Whether an EXPRESSION may end there. */
@@ -2646,10 +2663,10 @@ public final class Twopassworks {
             return state == 2;
         }
 
-        /** Finds the TOKEN where a parse could not go on. */
-        private int missIn(Row row, int begun, long firstPlace) {
+        /** Finds the TOKEN where a parse could not go on, from a place to which it had got. */
+        private int missIn(Row row, int begin, int begun, long firstPlace) {
             int state = begun;
-            int at = row.start + to;
+            int at = row.start + begin;
             int end = row.start + row.count;
             long itsPlace = firstPlace;
             for (long step = 0; step < MOST_WALKED && at < end; step++) {
@@ -2658,7 +2675,7 @@ public final class Twopassworks {
                 int next = inner == null ? step(state, token) : inner.stateAfter(state);
                 if (next != 0) {
                     state = next;
-                    itsPlace += inner == null ? 1 : inner.tokens;
+                    itsPlace = Math.min(itsPlace + (inner == null ? 1 : inner.tokens), MOST_COUNTED);
                     at++;
                 } else if (inner != null) {
                     at = inner.from;
@@ -2674,15 +2691,15 @@ public final class Twopassworks {
         // ---- reckoning
 
         /**
-         * Reckons what was read last; answers whether there was no fault. It is reckoned by KNOWN NAMES alone, or by
-         * the SYMBOLS for a FLAT line at that OFFSET in that PART.
+         * Reckons an EXPRESSION of a row that was read without a fault; answers whether there is none in reckoning. It
+         * is reckoned by KNOWN NAMES alone, or by the SYMBOLS for a FLAT line at that OFFSET in that PART.
          */
-        boolean reckon(Row row, boolean known, int offset, int part) {
+        boolean reckon(Row row, int from, int to, boolean known, int offset, int part) {
             begin();
             at = row.start + from;
             end = row.start + to;
             place = (int) Math.min(tokens.placeOf(row, from), MOST_INT);
-            for (long step = 0; step < MOST_WALKED && (visited.size() > 0 || at < end && !fails()); step++) {
+            for (long step = 0; step < MOST_WALKED && (waiting.size() > 0 || at < end && !fails()); step++) {
                 int token = at < end && !fails() ? tokens.all.at(at) : 0;
                 int piece = token >> 3;
                 if (token == 0) {
@@ -2712,9 +2729,13 @@ public final class Twopassworks {
             bottom = 0;
             begun = 0;
             nodeCount = 0;
-            visited.cutTo(0);
+            waiting.cutTo(0);
             kept.cutTo(0);
             reckonings++;
+            if (rememberedSize > SLOTS) {
+                Arrays.fill(remembered, 0, SLOTS, 0);
+                rememberedSize = SLOTS;
+            }
             append(OPEN, 0, NONE, 0);
         }
 
@@ -2907,11 +2928,11 @@ public final class Twopassworks {
         }
 
         private void enter(int piece) {
-            visited.add(at);
-            visited.add(end);
-            visited.add(place);
-            visited.add(bottom);
-            visited.add(begun);
+            waiting.add(at);
+            waiting.add(end);
+            waiting.add(place);
+            waiting.add(bottom);
+            waiting.add(begun);
             begun = 2 * piece + wants();
             bottom = itemCount;
             at = tokens.pieceAt(piece).from;
@@ -2932,11 +2953,11 @@ public final class Twopassworks {
             }
             lists.set(list + 2, kept.size());
             itemCount = bottom;
-            begun = visited.takeOut(visited.size() - 1);
-            bottom = visited.takeOut(visited.size() - 1);
-            place = visited.takeOut(visited.size() - 1);
-            end = visited.takeOut(visited.size() - 1);
-            at = visited.takeOut(visited.size() - 1);
+            begun = waiting.takeOut(waiting.size() - 1);
+            bottom = waiting.takeOut(waiting.size() - 1);
+            place = waiting.takeOut(waiting.size() - 1);
+            end = waiting.takeOut(waiting.size() - 1);
+            at = waiting.takeOut(waiting.size() - 1);
         }
 
         // ---- NODES
@@ -3068,52 +3089,64 @@ public final class Twopassworks {
             base = items[itemCount * ITEM_SIZE + 2];
             int code = base == NONE ? 0 : FAULT_BASE;
             int its = itsPlace;
-            todo.cutTo(0);
-            todo.add(node);
-            todo.add(itsPlace);
-            for (long step = 0; step < MOST_WALKED && code == 0 && todo.size() > 0; step++) {
-                its = todo.takeOut(todo.size() - 1);
-                int one = todo.takeOut(todo.size() - 1);
+            int others = waiting.size();
+            waiting.add(node);
+            waiting.add(itsPlace);
+            for (long step = 0; step < MOST_WALKED && code == 0 && waiting.size() > others; step++) {
+                its = waiting.takeOut(waiting.size() - 1);
+                int one = waiting.takeOut(waiting.size() - 1);
                 if (one < 0) {
                     remember(slotOf(~one, its), ~one, its);
                 } else if (nodeAt(one, JOINED) == 0) {
                     code = join(nodeAt(one, SIGN_OR_FIRST), number, base, nodeAt(one, NUMBER_OR_SECOND),
                         nodeAt(one, BASE_OR_DISTANCE));
                 } else if (!recall(slotOf(one, number), one)) {
-                    todo.add(~one);
-                    todo.add(number);
-                    todo.add(nodeAt(one, NUMBER_OR_SECOND));
-                    todo.add(later(its, nodeAt(one, BASE_OR_DISTANCE)));
-                    todo.add(nodeAt(one, SIGN_OR_FIRST));
-                    todo.add(its);
+                    waiting.add(~one);
+                    waiting.add(number);
+                    waiting.add(nodeAt(one, NUMBER_OR_SECOND));
+                    waiting.add(later(its, nodeAt(one, BASE_OR_DISTANCE)));
+                    waiting.add(nodeAt(one, SIGN_OR_FIRST));
+                    waiting.add(its);
                 }
             }
+            waiting.cutTo(others);
             append(code == 0 ? VALUE : FAULTY, code == 0 ? number : code, base, its);
         }
 
-        /** What a NODE makes of the number in the fields, if that is remembered. */
+        /** Makes of the number in the fields what a NODE makes of it, if that is remembered. */
         private boolean recall(int slot, int node) {
-            if (slot + SLOT_SIZE > remembered.length || remembered[slot] != reckonings
-                || remembered[slot + 1] != node || remembered[slot + 2] != number) {
-                return false;
+            int at = slot < remembered.length ? remembered[slot] : 0;
+            for (int step = 0; step < rememberedSize && at >= SLOTS && at + MEMORY_SIZE <= rememberedSize; step++) {
+                if (remembered[at] == node && remembered[at + 1] == number) {
+                    number = remembered[at + 2];
+                    return true;
+                }
+                at = remembered[at + 3];
             }
-            number = remembered[slot + 3];
-            return true;
+            return false;
         }
 
         private void remember(int slot, int node, int ofNumber) {
             if (remembered.length == 0) {
-                remembered = new int[SLOTS * SLOT_SIZE];
+                remembered = new int[2 * SLOTS];
+                rememberedSize = SLOTS;
             }
-            remembered[slot] = reckonings;
-            remembered[slot + 1] = node;
-            remembered[slot + 2] = ofNumber;
-            remembered[slot + 3] = number;
+            if (rememberedSize + MEMORY_SIZE > remembered.length && remembered.length < MOST_ROOM) {
+                remembered = Arrays.copyOf(remembered, remembered.length * 2);
+            }
+            if (slot < SLOTS && rememberedSize + MEMORY_SIZE <= remembered.length) {
+                remembered[rememberedSize] = node;
+                remembered[rememberedSize + 1] = ofNumber;
+                remembered[rememberedSize + 2] = number;
+                remembered[rememberedSize + 3] = remembered[slot];
+                remembered[slot] = rememberedSize;
+                rememberedSize += MEMORY_SIZE;
+            }
         }
 
         private static int slotOf(int node, int ofNumber) {
             int mixed = (node * 131 + ofNumber) * 0x9E3779B1;
-            return (mixed >>> 16 & SLOTS - 1) * SLOT_SIZE;
+            return mixed >>> 16 & SLOTS - 1;
         }
     }
 
@@ -3172,19 +3205,6 @@ public final class Twopassworks {
         }
     }
 
-    /** Rows that are being HANDLED one after the other: the SOURCE, or a BODY and the rounds still to begin. */
-    private static final class Frame {
-        private int next;
-        private int end;
-        private int expansion;
-        private int rounds;
-        private int from;
-        private int to;
-        private boolean called;
-        private Row row;
-        private int order;
-    }
-
     /** From a source to FLAT lines (section 3); it keeps the fault that was met, here or later. */
     private static final class Expander {
         private final Reckoner reckoner = new Reckoner();
@@ -3193,7 +3213,8 @@ public final class Twopassworks {
         private int rowCount;
         private final ArrayList<Flat> flats = new ArrayList<Flat>();
         private int flatCount;
-        private final Frame[] frames = new Frame[MOST_BODIES + 1];
+        // The rows for which BODIES are being HANDLED, inside each other; the first one stands for the SOURCE.
+        private final Row[] callers = new Row[MOST_BODIES + 1];
         private int depth;
         private int expansions;
         private int macros;
@@ -3279,20 +3300,19 @@ public final class Twopassworks {
                 }
             }
             tokens.unite();
-            Frame frame = pushFrame(noRow, 0);
-            if (frame != null) {
-                frame.end = rowCount;
+            if (beginsBody(noRow, 0)) {
+                noRow.end = rowCount;
             }
             for (int step = 0; step < MOST_STEPS && depth > 0 && faultCode == 0; step++) {
-                frame = depth <= frames.length ? frames[depth - 1] : null;
-                if (frame == null) {
+                Row caller = depth <= callers.length ? callers[depth - 1] : null;
+                if (caller == null) {
                     return;
                 }
-                if (frame.next < frame.end) {
-                    frame.next++;
-                    handle(frame.next - 1, frame);
-                } else if (frame.rounds > 0) {
-                    beginRound(frame);
+                if (caller.next < caller.end) {
+                    caller.next++;
+                    handle(caller.next - 1, caller);
+                } else if (caller.rounds > 0) {
+                    beginRound(caller);
                 } else {
                     depth--;
                 }
@@ -3333,51 +3353,41 @@ public final class Twopassworks {
             return at >= 0 && at < rowCount && at < rows.size() ? rows.get(at) : noRow;
         }
 
-        /** Takes a frame for the SOURCE, or for a BODY that a row asks for; answers null with a fault. */
-        private Frame pushFrame(Row row, int order) {
-            if (depth < 0 || depth >= frames.length) {
+        /** Begins with the SOURCE, or with a BODY that a row asks for, if there are not too many inside each other. */
+        private boolean beginsBody(Row row, int order) {
+            if (depth < 0 || depth >= callers.length) {
                 fail(FAULT_DEEP, row, order);
-                return null;
+                return false;
             }
-            Frame frame = frames[depth];
-            if (frame == null) {
-                frame = new Frame();
-                frames[depth] = frame;
-            }
+            callers[depth] = row;
             depth++;
-            frame.next = 0;
-            frame.end = 0;
-            frame.expansion = 0;
-            frame.rounds = 0;
-            frame.called = false;
-            frame.row = row;
-            frame.order = order;
-            return frame;
+            row.beginBody(order);
+            return true;
         }
 
         /** Begins a new EXPANSION: makes the rows of a BODY ready, to be HANDLED next. */
-        private void beginRound(Frame frame) {
-            frame.rounds--;
+        private void beginRound(Row caller) {
+            caller.rounds--;
             if (expansions >= MOST_EXPANSIONS) {
-                fail(FAULT_DEEP, frame.row, frame.order);
+                fail(FAULT_DEEP, caller, caller.order);
                 return;
             }
             expansions++;
-            frame.expansion = expansions;
-            frame.next = rowCount;
-            for (int i = frame.from; i < frame.to && faultCode == 0; i++) {
-                makeReady(rowAt(i), frame);
+            caller.expansion = expansions;
+            caller.next = rowCount;
+            for (int i = caller.from; i < caller.to && faultCode == 0; i++) {
+                makeReady(rowAt(i), caller);
             }
-            frame.end = rowCount;
+            caller.end = rowCount;
         }
 
-        private void makeReady(Row row, Frame frame) {
+        private void makeReady(Row row, Row caller) {
             int start = tokens.size();
             boolean changes = false;
             for (int at = 0; at < row.count; at++) {
                 int token = tokens.tokenAt(row, at);
                 int worth = token >> 3;
-                if ((token & 7) == PARAMETER && frame.called) {
+                if ((token & 7) == PARAMETER && caller.called) {
                     if (worth < 1 || 2 * worth > arguments.size()) {
                         fail(FAULT_ARGUMENT, row, tokens.placeOf(row, at));
                         return;
@@ -3385,7 +3395,7 @@ public final class Twopassworks {
                     tokens.addAgain(arguments.at(2 * worth - 2), arguments.at(2 * worth - 1));
                     changes = true;
                 } else if ((token & 7) == LOCAL) {
-                    Codes text = tokens.localText(worth, frame.expansion);
+                    Codes text = tokens.localText(worth, caller.expansion);
                     tokens.add(tokens.nameOf(text, 0, text.size()) * 8 + NAME);
                     changes = true;
                 } else {
@@ -3400,9 +3410,9 @@ public final class Twopassworks {
             }
         }
 
-        private void handle(int at, Frame frame) {
+        private void handle(int at, Row caller) {
             Row row = rowAt(at);
-            if (frame.expansion == 0) {
+            if (caller.expansion == 0) {
                 tokens.nameLocals(row, 0);
             }
             int parameter = tokens.firstOfKind(row, PARAMETER);
@@ -3413,7 +3423,7 @@ public final class Twopassworks {
             int order = tokens.orderPlace(row);
             if (order >= row.count) {
                 if (order > 0) {
-                    addFlat(row, order, frame.expansion);
+                    addFlat(row, order, caller.expansion);
                 }
                 return;
             }
@@ -3425,19 +3435,19 @@ public final class Twopassworks {
             } else if (!labelStandsRight(row, order)) {
                 return;
             } else if (row.word == 0) {
-                callMacro(row, order, name, frame);
+                callMacro(row, order, name, caller.expansion);
             } else if (expressionsOf(row.word) > 0 ? !expressionsAreRight(row, order) : !nameIsRight(row, order)) {
                 return;
             } else {
                 boolean had = hadToBeKnown(row.word);
-                boolean known = (had || row.word == LET) && reckoner.reckon(row, true, 0, NONE);
+                boolean known = (had || row.word == LET) && reckoner.reckon(row, order + 1, row.count, true, 0, NONE);
                 if (had && !isWithinBounds(row, order, known)) {
                     return;
                 }
                 if (row.word <= WEAK) {
-                    addOrder(row, order, frame.expansion, known);
+                    addOrder(row, order, caller.expansion, known);
                 } else {
-                    openBlock(at, order, frame);
+                    openBlock(at, order, caller);
                 }
             }
         }
@@ -3589,22 +3599,21 @@ public final class Twopassworks {
             return flat;
         }
 
-        private void callMacro(Row row, int order, Name name, Frame frame) {
+        private void callMacro(Row row, int order, Name name, int expansion) {
             if (!argumentsAreRight(row, order + 1)) {
                 return;
             }
             if (order > 0) {
                 Row label = addRow(row.start, order, row.line);
-                if (addFlat(label, order, frame.expansion) == null) {
+                if (addFlat(label, order, expansion) == null) {
                     return;
                 }
             }
-            Frame body = pushFrame(row, order);
-            if (body != null) {
-                body.from = name.bodyFrom;
-                body.to = name.bodyTo;
-                body.rounds = 1;
-                body.called = true;
+            if (beginsBody(row, order)) {
+                row.from = name.bodyFrom;
+                row.to = name.bodyTo;
+                row.rounds = 1;
+                row.called = true;
                 // A long argument becomes one PIECE, which then stands for each PARAMETER.
                 for (int i = 0; i < arguments.size(); i += 2) {
                     int size = arguments.at(i + 1) - arguments.at(i);
@@ -3634,41 +3643,37 @@ public final class Twopassworks {
             return true;
         }
 
-        private void openBlock(int at, int order, Frame frame) {
+        private void openBlock(int at, int order, Row caller) {
             Row row = rowAt(at);
-            int end = row.word == END || row.word == ELSE ? NONE : endOf(at + 1, frame.end);
+            int end = row.word == END || row.word == ELSE ? NONE : endOf(at + 1, caller.end);
             if (end == NONE) {
                 fail(FAULT_BLOCK, row, order);
                 return;
             }
-            frame.next = end + 1;
+            caller.next = end + 1;
             if (row.word == MACRO) {
                 defineMacro(row, at + 1, end);
                 return;
             }
             int number = reckoner.number();
-            if (row.word == REPEAT && number == 0) {
-                return;
-            }
-            Frame body = pushFrame(row, order);
-            if (body == null) {
+            if (row.word == REPEAT && number == 0 || !beginsBody(row, order)) {
                 return;
             }
             if (row.word == REPEAT) {
-                body.from = at + 1;
-                body.to = end;
-                body.rounds = number;
+                row.from = at + 1;
+                row.to = end;
+                row.rounds = number;
                 return;
             }
             int parting = elseOf(at + 1, end);
             if (number != 0) {
-                body.next = at + 1;
-                body.end = parting == NONE ? end : parting;
+                row.next = at + 1;
+                row.end = parting == NONE ? end : parting;
             } else {
-                body.next = parting == NONE ? end : parting + 1;
-                body.end = end;
+                row.next = parting == NONE ? end : parting + 1;
+                row.end = end;
             }
-            body.expansion = frame.expansion;
+            row.expansion = caller.expansion;
         }
 
         private static boolean opens(int word) {
@@ -4200,8 +4205,9 @@ public final class Twopassworks {
                         continue;
                     }
                     if (!waits(flat.usedLow, flat.usedHigh, flat.unknown)) {
-                        reckoner.parse(flat.row, flat.operands);
-                        takeValue(flat, 0, reckoner.reckon(flat.row, false, flat.offset, flat.part));
+                        Row row = flat.row;
+                        takeValue(flat, 0,
+                            reckoner.reckon(row, flat.operands, row.count, false, flat.offset, flat.part));
                         flat.label.become(flat.number(0), flat.base(0));
                         waitingLow &= ~lowBit(flat.label.symbol);
                         waitingHigh &= ~highBit(flat.label.symbol);
@@ -4242,7 +4248,7 @@ public final class Twopassworks {
                     expander.fail(known ? FAULT_ROUND : FAULT_UNKNOWN, row, place);
                     return;
                 }
-                place += piece == null ? 1 : piece.tokens;
+                place = Math.min(place + (piece == null ? 1 : piece.tokens), MOST_COUNTED);
                 at++;
             }
         }
@@ -4273,7 +4279,8 @@ public final class Twopassworks {
                 int asked = isAsked(flat.word) ? flat.expressions : 0;
                 for (int which = 0; which < asked && stands(); which++) {
                     int behind = reckoner.parse(flat.row, place);
-                    takeValue(flat, which, reckoner.reckon(flat.row, false, flat.offset, flat.part));
+                    takeValue(flat, which,
+                        reckoner.reckon(flat.row, place, behind, false, flat.offset, flat.part));
                     int fault = stands() ? askedOf(flat, which) : 0;
                     if (fault != 0) {
                         expander.fail(fault, flat.row, expander.tokens.placeOf(flat.row, place));
